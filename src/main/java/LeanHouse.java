@@ -62,7 +62,8 @@ public final class LeanHouse {
     private static final int CELL_COLLECTIONS = CELLS + 3;
     private static final int CELL_OUT = CELLS + 4;
     private static final int CELL_INPUTS = CELLS + 5;
-    private static final int CELL_SAVED = CELLS + 6;
+    private static final int CELL_STEPS = CELLS + 6;
+    private static final int CELL_SAVED = CELLS + 7;
 
     // A value is one word: numbers are odd, addresses of objects end in 00, constants in 10.
     private static final int CONSTANT = 2;
@@ -3631,6 +3632,1425 @@ public final class LeanHouse {
         }
     }
 
+    private static final int AT = 1;
+    private static final int V0 = 2;
+    private static final int V1 = 3;
+    private static final int A0 = 4;
+    private static final int A1 = 5;
+    private static final int A2 = 6;
+    private static final int T0 = 8;
+    private static final int T1 = 9;
+    private static final int T2 = 10;
+    private static final int T3 = 11;
+    private static final int T4 = 12;
+    private static final int T5 = 13;
+    private static final int T6 = 14;
+    private static final int T7 = 15;
+    private static final int T8 = 24;
+    private static final int T9 = 25;
+    private static final int K0 = 26;
+    private static final int K1 = 27;
+    private static final int RA = 31;
+    // Registers that keep one meaning through a run: the pile's end, the frame, the free heap and
+    // its limit, the steps left, the innermost handle, the greatest pile, and how far it may go.
+    private static final int PP = 16;
+    private static final int FP = 17;
+    private static final int FREE = 18;
+    private static final int LIMIT = 19;
+    private static final int LEFT = 20;
+    private static final int TRIES = 21;
+    private static final int MOST = 22;
+    private static final int FULL = 23;
+
+    private static final int I_BLTZ_GEZ = 1;
+    private static final int I_J = 2;
+    private static final int I_JAL = 3;
+    private static final int I_BEQ = 4;
+    private static final int I_BNE = 5;
+    private static final int I_ADDIU = 9;
+    private static final int I_SLTIU = 11;
+    private static final int I_ANDI = 12;
+    private static final int I_ORI = 13;
+    private static final int I_XORI = 14;
+    private static final int I_LUI = 15;
+    private static final int I_LW = 35;
+    private static final int I_LBU = 36;
+    private static final int I_SB = 40;
+    private static final int I_SW = 43;
+    private static final int F_SLL = 0;
+    private static final int F_SRL = 2;
+    private static final int F_SRA = 3;
+    private static final int F_JR = 8;
+    private static final int F_SYSCALL = 12;
+    private static final int F_MFHI = 16;
+    private static final int F_MFLO = 18;
+    private static final int F_MULT = 24;
+    private static final int F_DIV = 26;
+    private static final int F_DIVU = 27;
+    private static final int F_ADDU = 33;
+    private static final int F_SUBU = 35;
+    private static final int F_XOR = 38;
+    private static final int F_SLT = 42;
+    private static final int F_SLTU = 43;
+
+    /** Lays words of MIPS I into the memory, and minds the slots behind jumps and loads. */
+    private static final class Assembler {
+        private static final int LABELS = Coder.ORDERS + 512;
+        private static final int FIXES = 65536;
+        private static final int FILLING = 2;
+
+        private final int[] memory;
+        private final int[] labels = new int[LABELS];
+        private final int[] fixAt = new int[FIXES];
+        private final int[] fixTo = new int[FIXES];
+        private int fixes;
+        private int here;
+        private int blockStart;
+        private int loading;
+        private int how;
+        private int ownLabels;
+
+        Assembler(int[] memory) {
+            this.memory = memory;
+        }
+
+        void open(int way) {
+            how = way;
+            here = WORDS;
+            blockStart = WORDS;
+            loading = 0;
+            fixes = 0;
+            ownLabels = Coder.ORDERS;
+        }
+
+        int label() {
+            int k = ownLabels;
+            if (ownLabels < LABELS - 1) ownLabels++;
+            return k;
+        }
+
+        /** A label that is here. */
+        int labelHere() {
+            int k = label();
+            land(k);
+            return k;
+        }
+
+        void land(int label) {
+            if (loading != 0) slot();
+            put(labels, label, here);
+            blockStart = here;
+        }
+
+        int addressOf(int label) {
+            return at(labels, label) * 4;
+        }
+
+        private void lay(int word) {
+            if (here >= MEMORY) return;
+            put(memory, here, word);
+            here++;
+        }
+
+        private void slot() {
+            lay(0);
+            loading = 0;
+        }
+
+        private static boolean isLoad(int word) {
+            int kind = word >>> 26;
+            return kind == I_LW || kind == I_LBU;
+        }
+
+        private static boolean isStore(int word) {
+            int kind = word >>> 26;
+            return kind == I_SW || kind == I_SB;
+        }
+
+        private static int target(int word) {
+            return word >> 16 & 31;
+        }
+
+        /** The register that a word writes, or 0; of a jump and a store none. */
+        private static int written(int word) {
+            int kind = word >>> 26;
+            if (kind == 0) return word >> 11 & 31;
+            return isStore(word) ? 0 : target(word);
+        }
+
+        private static boolean touches(int word, int register) {
+            int kind = word >>> 26;
+            if (kind == I_J || kind == I_JAL) return false;
+            return (word >> 21 & 31) == register || target(word) == register || kind == 0 && (word >> 11 & 31) == register;
+        }
+
+        private void emit(int word) {
+            if (loading != 0 && touches(word, loading)) {
+                if (how == FILLING && canFillLoad()) {
+                    int load = at(memory, here - 1);
+                    put(memory, here - 1, at(memory, here - 2));
+                    put(memory, here - 2, load);
+                    loading = 0;
+                } else {
+                    slot();
+                }
+            }
+            lay(word);
+            loading = isLoad(word) ? target(word) : 0;
+            if (how != FILLING && loading != 0) slot();
+        }
+
+        /** Whether the word ahead of the load that was laid last can as well stand behind it. */
+        private boolean canFillLoad() {
+            if (here - 2 < blockStart) return false;
+            int load = at(memory, here - 1);
+            int word = at(memory, here - 2);
+            if (word == 0 || isLoad(word) || isStore(word) || touches(word, target(load))) return false;
+            if (written(word) == (load >> 21 & 31)) return false;
+            int ahead = here - 3 >= blockStart ? at(memory, here - 3) : 0;
+            return !isLoad(ahead) || !touches(load, target(ahead));
+        }
+
+        /** A jump or branch with its slot. */
+        private void leap(int word, int label) {
+            if (loading != 0 && touches(word, loading)) slot();
+            boolean fills = how == FILLING && canFillLeap(word);
+            int filler = fills ? at(memory, here - 1) : 0;
+            if (fills) here--;
+            if (label >= 0) {
+                put(fixAt, fixes, here);
+                put(fixTo, fixes, label);
+                fixes++;
+            }
+            lay(word);
+            lay(filler);
+            loading = 0;
+            blockStart = here;
+        }
+
+        /** Whether the word laid last can as well stand in the slot behind the jump. */
+        private boolean canFillLeap(int word) {
+            if (here - 1 < blockStart) return false;
+            int last = at(memory, here - 1);
+            if (last == 0 || isLoad(last)) return false;
+            int own = written(last);
+            if (own != 0 && touches(word, own)) return false;
+            if (word >>> 26 == I_JAL && touches(last, RA)) return false;
+            int ahead = here - 2 >= blockStart ? at(memory, here - 2) : 0;
+            return !isLoad(ahead) || !touches(word, target(ahead));
+        }
+
+        void three(int function, int to, int a, int b) {
+            emit(a << 21 | b << 16 | to << 11 | function);
+        }
+
+        void shift(int function, int to, int from, int by) {
+            emit(from << 16 | to << 11 | by << 6 | function);
+        }
+
+        void immediate(int kind, int to, int from, int number) {
+            emit(kind << 26 | from << 21 | to << 16 | number & 65535);
+        }
+
+        void lw(int to, int offset, int base) {
+            immediate(I_LW, to, base, offset);
+        }
+
+        void sw(int from, int offset, int base) {
+            immediate(I_SW, from, base, offset);
+        }
+
+        void add(int to, int from, int number) {
+            immediate(I_ADDIU, to, from, number);
+        }
+
+        void move(int to, int from) {
+            three(F_ADDU, to, from, 0);
+        }
+
+        /** A number into a register. */
+        void set(int to, int number) {
+            if (number >= -32768 && number <= 32767) {
+                add(to, 0, number);
+                return;
+            }
+            immediate(I_LUI, to, 0, number >>> 16);
+            if ((number & 65535) != 0) immediate(I_ORI, to, to, number);
+        }
+
+        /** The address of the words of an order, made odd, into a register. */
+        void setCode(int to, int label) {
+            if (loading != 0) slot();
+            for (int n = 0; n < 2; n++) {
+                put(fixAt, fixes, here);
+                put(fixTo, fixes, label);
+                fixes++;
+                if (n == 0) immediate(I_LUI, to, 0, 0);
+                else immediate(I_ORI, to, to, 0);
+            }
+            blockStart = here;
+        }
+
+        void branch(int kind, int a, int b, int label) {
+            leap(kind << 26 | a << 21 | b << 16, label);
+        }
+
+        void branchNotBelow(int a, int label) {
+            leap(I_BLTZ_GEZ << 26 | a << 21 | 1 << 16, label);
+        }
+
+        /** Goes over the next jump, if the two are equal (or not). */
+        void over(int kind, int a, int b) {
+            leap(kind << 26 | a << 21 | b << 16 | 3, NONE);
+        }
+
+        void jump(int label) {
+            leap(I_J << 26, label);
+        }
+
+        void jumpAndLink(int label) {
+            leap(I_JAL << 26, label);
+        }
+
+        void back(int register) {
+            leap(register << 21 | F_JR, NONE);
+        }
+
+        void stop() {
+            if (loading != 0) slot();
+            lay(F_SYSCALL);
+            blockStart = here;
+        }
+
+        /** Puts the places of labels into the words that lead to them. */
+        void close() {
+            for (int k = 0; k < fixes && k < FIXES; k++) {
+                int where = at(fixAt, k);
+                int to = at(labels, at(fixTo, k));
+                int word = at(memory, where);
+                int kind = word >>> 26;
+                int says = kind == I_J || kind == I_JAL ? to : kind == I_LUI ? to * 4 >> 16
+                    : kind == I_ORI ? to * 4 + 1 & 65535 : to - where - 1 & 65535;
+                put(memory, where, word | says);
+            }
+        }
+    }
+
+    /** The words that all programs share: the pile, the heap with its collector, calls, what is known ahead. */
+    private static final class Library {
+        private static final int SAVED = CELL_SAVED * 4;
+        private static final int SAVED_RETURN = CELL_SAVED * 4 + 4;
+        private static final int SAVED_SIZE = CELL_SAVED * 4 + 8;
+        private static final int FIGURES_END = DIGITS * 4 + 16;
+
+        private final Assembler a;
+        int push;
+        int need;
+        int literal;
+        int tuple;
+        int cons;
+        int divide;
+        int join;
+        int apply;
+        int applyLast;
+        int giveBack;
+        int copy;
+        int open;
+        int opened;
+        int raise;
+        int bind;
+        int noSteps;
+        int finish;
+        private int newString;
+        private int figures;
+        private int result;
+
+        Library(Assembler assembler) {
+            a = assembler;
+        }
+
+        /** All routines; the program's words follow. */
+        void lay() {
+            start();
+            ends();
+            layPush();
+            layNeed();
+            layObjects();
+            layStrings();
+            layDivide();
+            layRaise();
+            layCalls();
+        }
+
+        private void start() {
+            int program = 0;
+            a.set(PP, PILE_BASE * 4);
+            a.set(FREE, HEAP_A * 4);
+            a.lw(T0, CELL_SIZE * 4, 0);
+            a.set(T1, HEAP_B * 4);
+            a.move(FP, PP);
+            a.move(MOST, PP);
+            a.three(F_ADDU, LIMIT, FREE, T0);
+            a.lw(LEFT, CELL_STEPS * 4, 0);
+            a.sw(FREE, CELL_SPACE * 4, 0);
+            a.sw(T1, CELL_OTHER * 4, 0);
+            a.sw(0, CELL_COLLECTIONS * 4, 0);
+            a.sw(0, CELL_OUT * 4, 0);
+            a.set(FULL, PILE_END * 4);
+            a.set(TRIES, 0);
+            a.jump(program);
+        }
+
+        private void ends() {
+            noSteps = a.labelHere();
+            a.set(V0, STEPS);
+            finish = a.labelHere();
+            a.stop();
+        }
+
+        private void layPush() {
+            int room = a.label();
+            int done = a.label();
+            push = a.labelHere();
+            a.branch(I_BNE, PP, FULL, room);
+            a.set(V0, PILE);
+            a.jump(finish);
+            a.land(room);
+            a.sw(A0, 0, PP);
+            a.add(PP, PP, 4);
+            a.three(F_SLTU, AT, MOST, PP);
+            a.branch(I_BEQ, AT, 0, done);
+            a.move(MOST, PP);
+            a.land(done);
+            a.back(RA);
+        }
+
+        /** So many free bytes (A0): their address in V0. Keeps A0, A1 and T9. */
+        private void layNeed() {
+            int moved = layMoved();
+            int collect = layCollect(moved);
+            int room = a.label();
+            int enough = a.label();
+            int steps = a.label();
+            need = a.labelHere();
+            a.three(F_SUBU, T0, LIMIT, FREE);
+            a.three(F_SLTU, T0, T0, A0);
+            a.branch(I_BEQ, T0, 0, room);
+            a.branch(I_BNE, LEFT, 0, steps);
+            a.jump(noSteps);
+            a.land(steps);
+            a.lw(T1, CELL_COLLECTIONS * 4, 0);
+            a.add(LEFT, LEFT, -1);
+            a.add(T1, T1, 1);
+            a.sw(T1, CELL_COLLECTIONS * 4, 0);
+            a.move(K1, RA);
+            a.jumpAndLink(collect);
+            a.move(RA, K1);
+            a.three(F_SUBU, T0, LIMIT, FREE);
+            a.three(F_SLTU, T0, T0, A0);
+            a.branch(I_BEQ, T0, 0, enough);
+            a.set(V0, HEAP);
+            a.jump(finish);
+            a.land(room);
+            a.land(enough);
+            a.move(V0, FREE);
+            a.three(F_ADDU, FREE, FREE, A0);
+            a.back(RA);
+        }
+
+        /** The bytes of the object whose head is in T6, into T5. */
+        private void size() {
+            int words = a.label();
+            int sized = a.label();
+            a.immediate(I_ANDI, T0, T6, 7);
+            a.set(T1, HEAD_CON);
+            a.set(T5, 8);
+            a.branch(I_BEQ, T0, T1, sized);
+            a.set(T1, HEAD_STRING);
+            a.shift(F_SRL, T5, T6, 3);
+            a.branch(I_BNE, T0, T1, words);
+            a.add(T5, T5, 3);
+            a.shift(F_SRL, T5, T5, 2);
+            a.land(words);
+            a.add(T5, T5, 1);
+            a.shift(F_SLL, T5, T5, 2);
+            a.land(sized);
+        }
+
+        /** The word for the word in A2 after the collection, into V1. */
+        private int layMoved() {
+            int gone = a.label();
+            int copies = a.label();
+            int moved = a.labelHere();
+            a.immediate(I_ANDI, T0, A2, 3);
+            a.move(V1, A2);
+            a.branch(I_BNE, T0, 0, gone);
+            a.lw(T6, 0, A2);
+            a.immediate(I_ANDI, T0, T6, 1);
+            a.branch(I_BNE, T0, 0, copies);
+            a.move(V1, T6);
+            a.jump(gone);
+            a.land(copies);
+            size();
+            a.move(V1, FREE);
+            a.three(F_ADDU, T4, FREE, T5);
+            a.move(T3, A2);
+            int next = a.labelHere();
+            a.lw(T0, 0, T3);
+            a.add(T3, T3, 4);
+            a.sw(T0, 0, FREE);
+            a.add(FREE, FREE, 4);
+            a.branch(I_BNE, FREE, T4, next);
+            a.sw(V1, 0, A2);
+            a.land(gone);
+            a.back(RA);
+            return moved;
+        }
+
+        private int layCollect(int moved) {
+            int scan = a.label();
+            int fields = a.label();
+            int done = a.label();
+            int collect = a.labelHere();
+            a.move(K0, RA);
+            a.lw(T0, CELL_SPACE * 4, 0);
+            a.lw(T1, CELL_OTHER * 4, 0);
+            a.lw(T2, CELL_SIZE * 4, 0);
+            a.sw(T1, CELL_SPACE * 4, 0);
+            a.sw(T0, CELL_OTHER * 4, 0);
+            a.move(FREE, T1);
+            a.three(F_ADDU, LIMIT, T1, T2);
+            a.move(T8, T1);
+            a.set(T7, PILE_BASE * 4);
+            int words = a.labelHere();
+            a.branch(I_BEQ, T7, PP, scan);
+            a.lw(A2, 0, T7);
+            a.jumpAndLink(moved);
+            a.sw(V1, 0, T7);
+            a.add(T7, T7, 4);
+            a.jump(words);
+            a.land(scan);
+            a.branch(I_BEQ, T8, FREE, done);
+            a.lw(T6, 0, T8);
+            size();
+            a.three(F_ADDU, T7, T8, T5);
+            a.add(T8, T8, 4);
+            a.immediate(I_ANDI, T0, T6, 7);
+            a.set(T1, HEAD_STRING);
+            a.branch(I_BNE, T0, T1, fields);
+            a.move(T8, T7);
+            a.jump(scan);
+            a.land(fields);
+            a.branch(I_BEQ, T8, T7, scan);
+            a.lw(A2, 0, T8);
+            a.jumpAndLink(moved);
+            a.sw(V1, 0, T8);
+            a.add(T8, T8, 4);
+            a.jump(fields);
+            a.land(done);
+            a.back(K0);
+            return collect;
+        }
+
+        /** Words from T2 on into those from T3 on, up to T4. */
+        private void copyWords() {
+            int next = a.labelHere();
+            a.lw(T5, 0, T2);
+            a.add(T2, T2, 4);
+            a.sw(T5, 0, T3);
+            a.add(T3, T3, 4);
+            a.branch(I_BNE, T3, T4, next);
+        }
+
+        private void layObjects() {
+            literal = a.labelHere();
+            a.lw(T6, 0, A1);
+            a.move(T9, RA);
+            size();
+            a.move(A0, T5);
+            a.jumpAndLink(need);
+            a.move(T2, A1);
+            a.move(T3, V0);
+            a.three(F_ADDU, T4, V0, A0);
+            copyWords();
+            a.move(A0, V0);
+            a.move(RA, T9);
+            a.jump(push);
+            tuple = a.labelHere();
+            a.move(T9, RA);
+            a.shift(F_SLL, A0, A1, 2);
+            a.add(A0, A0, 4);
+            a.jumpAndLink(need);
+            a.shift(F_SLL, T0, A1, 3);
+            a.add(T0, T0, HEAD_TUPLE);
+            a.sw(T0, 0, V0);
+            a.shift(F_SLL, T1, A1, 2);
+            a.three(F_SUBU, PP, PP, T1);
+            a.move(T2, PP);
+            a.add(T3, V0, 4);
+            a.three(F_ADDU, T4, T3, T1);
+            copyWords();
+            a.sw(V0, 0, PP);
+            a.add(PP, PP, 4);
+            a.back(T9);
+            layCons();
+            copy = a.labelHere();
+            a.lw(T2, 0, FP);
+            a.lw(T3, -4, PP);
+            a.add(T2, T2, 8);
+            a.add(T3, T3, 8);
+            a.three(F_ADDU, T4, T3, A1);
+            copyWords();
+            a.back(RA);
+            bind = a.labelHere();
+            a.move(T9, RA);
+            a.set(T2, 0);
+            int next = a.labelHere();
+            a.lw(A0, KEPT * 4, T2);
+            a.jumpAndLink(push);
+            a.add(T2, T2, 4);
+            a.branch(I_BNE, T2, A1, next);
+            a.back(T9);
+        }
+
+        private void layCons() {
+            cons = a.labelHere();
+            a.move(T9, RA);
+            a.set(A0, 20);
+            a.jumpAndLink(need);
+            a.set(T0, 2 * 8 + HEAD_TUPLE);
+            a.lw(T1, -8, PP);
+            a.lw(T2, -4, PP);
+            a.sw(T0, 0, V0);
+            a.sw(T1, 4, V0);
+            a.sw(T2, 8, V0);
+            a.set(T3, CON_CONS * 8 + HEAD_CON);
+            a.sw(T3, 12, V0);
+            a.sw(V0, 16, V0);
+            a.add(T4, V0, 12);
+            a.sw(T4, -8, PP);
+            a.add(PP, PP, -4);
+            a.back(T9);
+        }
+
+        private void layStrings() {
+            newString = a.labelHere();
+            a.sw(RA, SAVED_RETURN, 0);
+            a.sw(T3, SAVED_SIZE, 0);
+            a.add(A0, T3, 3);
+            a.shift(F_SRL, A0, A0, 2);
+            a.shift(F_SLL, A0, A0, 2);
+            a.add(A0, A0, 4);
+            a.jumpAndLink(need);
+            a.lw(T3, SAVED_SIZE, 0);
+            a.lw(RA, SAVED_RETURN, 0);
+            a.shift(F_SLL, T0, T3, 3);
+            a.add(T0, T0, HEAD_STRING);
+            a.sw(T0, 0, V0);
+            a.back(RA);
+            int copied = a.label();
+            int copyString = a.labelHere();
+            a.lw(T1, 0, T0);
+            a.add(T0, T0, 4);
+            a.shift(F_SRL, T1, T1, 3);
+            a.three(F_ADDU, T1, T0, T1);
+            int next = a.labelHere();
+            a.branch(I_BEQ, T0, T1, copied);
+            a.immediate(I_LBU, T2, T0, 0);
+            a.add(T0, T0, 1);
+            a.immediate(I_SB, T2, T4, 0);
+            a.add(T4, T4, 1);
+            a.jump(next);
+            a.land(copied);
+            a.back(RA);
+            join = a.labelHere();
+            a.move(T9, RA);
+            a.lw(T0, -8, PP);
+            a.lw(T1, -4, PP);
+            a.lw(T0, 0, T0);
+            a.lw(T1, 0, T1);
+            a.shift(F_SRL, T0, T0, 3);
+            a.shift(F_SRL, T1, T1, 3);
+            a.three(F_ADDU, T3, T0, T1);
+            a.jumpAndLink(newString);
+            a.lw(T0, -8, PP);
+            a.add(T4, V0, 4);
+            a.jumpAndLink(copyString);
+            a.lw(T0, -4, PP);
+            a.jumpAndLink(copyString);
+            a.add(PP, PP, -4);
+            a.sw(V0, -4, PP);
+            a.back(T9);
+            layFigures();
+        }
+
+        /** The figures of the number in A1: they begin at T1 and end ahead of T2. */
+        private void layFigures() {
+            int above = a.label();
+            int done = a.label();
+            figures = a.labelHere();
+            a.shift(F_SRA, T0, A1, 1);
+            a.move(T3, T0);
+            a.branchNotBelow(T0, above);
+            a.three(F_SUBU, T3, 0, T0);
+            a.land(above);
+            a.set(T2, FIGURES_END);
+            a.move(T1, T2);
+            a.set(T4, 10);
+            int next = a.labelHere();
+            a.three(F_DIVU, 0, T3, T4);
+            a.three(F_MFHI, T5, 0, 0);
+            a.three(F_MFLO, T3, 0, 0);
+            a.add(T5, T5, '0');
+            a.add(T1, T1, -1);
+            a.immediate(I_SB, T5, T1, 0);
+            a.branch(I_BNE, T3, 0, next);
+            a.branchNotBelow(T0, done);
+            a.set(T5, '~');
+            a.add(T1, T1, -1);
+            a.immediate(I_SB, T5, T1, 0);
+            a.land(done);
+            a.back(RA);
+        }
+
+        /** div (A1 0) and mod (A1 1), rounded down. */
+        private void layDivide() {
+            int byZero = a.label();
+            int exact = a.label();
+            int quotient = a.label();
+            raise = a.label();
+            divide = a.labelHere();
+            a.lw(T0, -8, PP);
+            a.lw(T1, -4, PP);
+            a.shift(F_SRA, T0, T0, 1);
+            a.shift(F_SRA, T1, T1, 1);
+            a.branch(I_BEQ, T1, 0, byZero);
+            a.three(F_DIV, 0, T0, T1);
+            a.three(F_MFLO, T2, 0, 0);
+            a.three(F_MFHI, T3, 0, 0);
+            a.branch(I_BEQ, T3, 0, exact);
+            a.three(F_XOR, T4, T3, T1);
+            a.branchNotBelow(T4, exact);
+            a.add(T2, T2, -1);
+            a.three(F_ADDU, T3, T3, T1);
+            a.land(exact);
+            a.branch(I_BEQ, A1, 0, quotient);
+            a.move(T2, T3);
+            a.land(quotient);
+            a.shift(F_SLL, T2, T2, 1);
+            a.add(T2, T2, 1);
+            a.add(PP, PP, -4);
+            a.sw(T2, -4, PP);
+            a.back(RA);
+            a.land(byZero);
+            a.set(A0, CON_DIV * 4 + CONSTANT);
+            a.jump(raise);
+        }
+
+        private void layRaise() {
+            int handled = a.label();
+            a.land(raise);
+            a.branch(I_BNE, TRIES, 0, handled);
+            a.move(V1, A0);
+            a.set(V0, RAISED);
+            a.jump(finish);
+            a.land(handled);
+            a.move(PP, TRIES);
+            a.lw(T0, 0, PP);
+            a.lw(T1, 4, PP);
+            a.lw(T2, 8, PP);
+            a.sw(A0, 0, PP);
+            a.add(PP, PP, 4);
+            a.add(TRIES, T0, -1);
+            a.add(T1, T1, -1);
+            a.add(FP, T2, -1);
+            a.back(T1);
+            open = a.labelHere();
+            a.move(T9, RA);
+            a.add(A0, TRIES, 1);
+            a.jumpAndLink(push);
+            a.move(A0, A1);
+            a.jumpAndLink(push);
+            a.add(A0, FP, 1);
+            a.jumpAndLink(push);
+            a.add(TRIES, PP, -12);
+            a.back(T9);
+            opened = a.labelHere();
+            a.lw(T0, -16, PP);
+            a.lw(T1, -4, PP);
+            a.add(TRIES, T0, -1);
+            a.add(PP, PP, -12);
+            a.sw(T1, -4, PP);
+            a.back(RA);
+        }
+
+        private void layCalls() {
+            int known = a.label();
+            int object = a.label();
+            int objectLast = a.label();
+            apply = a.labelHere();
+            step();
+            a.lw(T0, -8, PP);
+            a.immediate(I_ANDI, T1, T0, 3);
+            a.branch(I_BEQ, T1, 0, object);
+            a.jump(known);
+            a.land(object);
+            a.add(A0, RA, 1);
+            a.jumpAndLink(push);
+            a.add(A0, FP, 1);
+            a.jumpAndLink(push);
+            a.lw(T0, -16, PP);
+            a.add(FP, PP, -16);
+            enterObject();
+            applyLast = a.labelHere();
+            step();
+            a.lw(T0, -8, PP);
+            a.immediate(I_ANDI, T1, T0, 3);
+            a.branch(I_BEQ, T1, 0, objectLast);
+            a.jump(known);
+            a.land(objectLast);
+            a.lw(T2, -4, PP);
+            a.sw(T0, 0, FP);
+            a.sw(T2, 4, FP);
+            a.add(PP, FP, 16);
+            enterObject();
+            giveBack = a.labelHere();
+            a.lw(T0, -4, PP);
+            a.lw(T1, 8, FP);
+            a.lw(T2, 12, FP);
+            a.add(PP, FP, 4);
+            a.sw(T0, 0, FP);
+            a.add(T1, T1, -1);
+            a.add(FP, T2, -1);
+            a.back(T1);
+            layKnown(known);
+        }
+
+        void step() {
+            a.over(I_BNE, LEFT, 0);
+            a.jump(noSteps);
+            a.add(LEFT, LEFT, -1);
+        }
+
+        private void enterObject() {
+            a.lw(T1, 4, T0);
+            a.add(T1, T1, -1);
+            a.back(T1);
+        }
+
+        /** What is known ahead: the argument in A1, where to go on in T9, the value into A0. */
+        private void layKnown(int known) {
+            int table = a.labelHere();
+            int first = a.label();
+            for (int k = 1; k <= FUN_REF; k++) a.label();
+            for (int k = 0; k <= FUN_REF; k++) a.jump(first + k);
+            result = a.labelHere();
+            a.sw(A0, -8, PP);
+            a.add(PP, PP, -4);
+            a.back(T9);
+            int box = layBox();
+            a.land(known);
+            int function = a.label();
+            a.move(T9, RA);
+            a.lw(A1, -4, PP);
+            a.shift(F_SRL, T1, T0, 12);
+            a.set(T2, CON_FUNCTION >> 12);
+            a.immediate(I_ANDI, T3, T0, 4095);
+            a.shift(F_SRL, T3, T3, 2);
+            a.branch(I_BNE, T1, T2, function);
+            a.jump(box);
+            a.land(function);
+            a.set(T2, a.addressOf(table));
+            a.shift(F_SLL, T3, T3, 3);
+            a.three(F_ADDU, T2, T2, T3);
+            a.back(T2);
+            a.land(first + FUN_REF);
+            a.set(T3, REF_CON);
+            a.jump(box);
+            layPlain(first);
+            layOutput(first);
+            layPartial(first);
+        }
+
+        private int layBox() {
+            int box = a.labelHere();
+            a.sw(T3, SAVED, 0);
+            a.set(A0, 8);
+            a.jumpAndLink(need);
+            a.lw(T3, SAVED, 0);
+            a.lw(T0, -4, PP);
+            a.shift(F_SLL, T3, T3, 3);
+            a.add(T3, T3, HEAD_CON);
+            a.sw(T3, 0, V0);
+            a.sw(T0, 4, V0);
+            a.move(A0, V0);
+            a.jump(result);
+            return box;
+        }
+
+        private void layPlain(int first) {
+            a.land(first + FUN_NEGATE);
+            a.set(T0, 2);
+            a.three(F_SUBU, A0, T0, A1);
+            a.jump(result);
+            a.land(first + FUN_FETCH);
+            a.lw(A0, 4, A1);
+            a.jump(result);
+            a.land(first + FUN_NOT);
+            a.set(T0, TRUE_WORD + FALSE_WORD);
+            a.three(F_SUBU, A0, T0, A1);
+            a.jump(result);
+            a.land(first + FUN_SIZE);
+            a.lw(T0, 0, A1);
+            a.shift(F_SRL, T0, T0, 3);
+            a.shift(F_SLL, T0, T0, 1);
+            a.add(A0, T0, 1);
+            a.jump(result);
+            a.land(first + FUN_MANY);
+            a.lw(T0, CELL_INPUTS * 4, 0);
+            a.shift(F_SLL, T0, T0, 1);
+            a.add(A0, T0, 1);
+            a.jump(result);
+        }
+
+        private void layOutput(int first) {
+            int out = a.labelHere();
+            int kept = a.label();
+            a.lw(T5, CELL_OUT * 4, 0);
+            a.immediate(I_SLTIU, T6, T5, KEPT_MOST);
+            a.branch(I_BEQ, T6, 0, kept);
+            a.immediate(I_SB, A0, T5, OUTPUT * 4);
+            a.land(kept);
+            a.add(T5, T5, 1);
+            a.sw(T5, CELL_OUT * 4, 0);
+            a.back(RA);
+            int put = a.label();
+            a.land(first + FUN_PRINT);
+            a.lw(T0, 0, A1);
+            a.add(T1, A1, 4);
+            a.shift(F_SRL, T0, T0, 3);
+            a.three(F_ADDU, T2, T1, T0);
+            int next = a.labelHere();
+            a.branch(I_BEQ, T1, T2, put);
+            a.immediate(I_LBU, A0, T1, 0);
+            a.jumpAndLink(out);
+            a.add(T1, T1, 1);
+            a.jump(next);
+            a.land(first + FUN_PUT);
+            a.jumpAndLink(figures);
+            a.set(T5, '\n');
+            a.immediate(I_SB, T5, T2, 0);
+            a.add(T2, T2, 1);
+            a.jump(next);
+            a.land(put);
+            a.set(A0, UNIT_WORD);
+            a.jump(result);
+        }
+
+        private void layPartial(int first) {
+            int subscript = a.label();
+            int noByte = a.label();
+            a.land(first + FUN_STR);
+            a.jumpAndLink(figures);
+            a.three(F_SUBU, T3, T2, T1);
+            a.jumpAndLink(newString);
+            a.set(T2, FIGURES_END);
+            a.three(F_SUBU, T1, T2, T3);
+            a.add(T4, V0, 4);
+            int next = a.labelHere();
+            a.immediate(I_LBU, T5, T1, 0);
+            a.add(T1, T1, 1);
+            a.immediate(I_SB, T5, T4, 0);
+            a.add(T4, T4, 1);
+            a.branch(I_BNE, T1, T2, next);
+            a.move(A0, V0);
+            a.jump(result);
+            a.land(first + FUN_CHR);
+            a.shift(F_SRA, T0, A1, 1);
+            a.immediate(I_SLTIU, T1, T0, 256);
+            a.branch(I_BEQ, T1, 0, noByte);
+            a.set(T3, 1);
+            a.jumpAndLink(newString);
+            a.lw(T0, -4, PP);
+            a.move(A0, V0);
+            a.shift(F_SRA, T0, T0, 1);
+            a.immediate(I_SB, T0, V0, 4);
+            a.jump(result);
+            a.land(first + FUN_SUB);
+            a.lw(T0, 4, A1);
+            a.lw(T1, 8, A1);
+            a.lw(T2, 0, T0);
+            a.shift(F_SRA, T1, T1, 1);
+            a.shift(F_SRL, T2, T2, 3);
+            a.three(F_SLTU, T3, T1, T2);
+            a.branch(I_BEQ, T3, 0, subscript);
+            a.three(F_ADDU, T0, T0, T1);
+            a.immediate(I_LBU, T0, T0, 4);
+            a.shift(F_SLL, T0, T0, 1);
+            a.add(A0, T0, 1);
+            a.jump(result);
+            layGiven(first + FUN_GIVEN, subscript);
+            a.land(noByte);
+            a.set(A0, CON_CHR * 4 + CONSTANT);
+            a.jump(raise);
+        }
+
+        private void layGiven(int given, int subscript) {
+            a.land(given);
+            a.lw(T2, CELL_INPUTS * 4, 0);
+            a.shift(F_SRA, T1, A1, 1);
+            a.three(F_SLTU, T3, T1, T2);
+            a.branch(I_BEQ, T3, 0, subscript);
+            a.shift(F_SLL, T1, T1, 2);
+            a.lw(A0, INPUT * 4, T1);
+            a.jump(result);
+            a.land(subscript);
+            a.set(A0, CON_SUBSCRIPT * 4 + CONSTANT);
+            a.jump(raise);
+        }
+    }
+
+    /** Orders into words of MIPS I, each order into its few. */
+    private static final class Compiler {
+        private final Coder coder;
+        private final Assembler a;
+        private final Library library;
+
+        Compiler(Coder coder, int[] memory) {
+            this.coder = coder;
+            a = new Assembler(memory);
+            library = new Library(a);
+        }
+
+        void compile(int how) {
+            a.open(how);
+            library.lay();
+            for (int k = 0; k < coder.size; k++) {
+                a.land(k);
+                int order = at(coder.op, k);
+                int say = at(coder.one, k);
+                int more = at(coder.two, k);
+                if (order >= O_MATCH) match(order, say, more);
+                else if (order >= O_JUMP) control(order, say, more, k);
+                else simple(order, say);
+            }
+            a.close();
+        }
+
+        private void with(int number, int routine) {
+            a.set(A1, number);
+            a.jumpAndLink(routine);
+        }
+
+        private void simple(int order, int say) {
+            switch (order) {
+                case O_CONSTANT:
+                    a.set(A0, say);
+                    a.jumpAndLink(library.push);
+                    break;
+                case O_LITERAL:
+                    with(say, library.literal);
+                    break;
+                case O_LOCAL:
+                    a.lw(A0, say * 4, FP);
+                    a.jumpAndLink(library.push);
+                    break;
+                case O_HELD:
+                    a.lw(T0, 0, FP);
+                    a.lw(A0, 8 + say * 4, T0);
+                    a.jumpAndLink(library.push);
+                    break;
+                case O_TUPLE:
+                    with(say, library.tuple);
+                    break;
+                case O_CONS:
+                    a.jumpAndLink(library.cons);
+                    break;
+                default:
+                    operator(say);
+                    break;
+            }
+        }
+
+        private void operator(int kind) {
+            if (kind == W_DIV || kind == W_MOD) {
+                with(kind == W_DIV ? 0 : 1, library.divide);
+                return;
+            }
+            if (kind == K_JOIN) {
+                a.jumpAndLink(library.join);
+                return;
+            }
+            a.lw(T0, -8, PP);
+            a.lw(T1, -4, PP);
+            a.add(PP, PP, -4);
+            switch (kind) {
+                case K_PLUS:
+                    a.three(F_ADDU, T2, T0, T1);
+                    a.add(T2, T2, -1);
+                    break;
+                case K_MINUS:
+                    a.three(F_SUBU, T2, T0, T1);
+                    a.add(T2, T2, 1);
+                    break;
+                case K_STAR:
+                    a.add(T0, T0, -1);
+                    a.shift(F_SRA, T1, T1, 1);
+                    a.three(F_MULT, 0, T0, T1);
+                    a.three(F_MFLO, T2, 0, 0);
+                    a.add(T2, T2, 1);
+                    break;
+                case K_ASSIGN:
+                    a.sw(T1, 4, T0);
+                    a.set(T2, UNIT_WORD);
+                    break;
+                default:
+                    comparison(kind);
+                    break;
+            }
+            a.sw(T2, -4, PP);
+        }
+
+        private void comparison(int kind) {
+            boolean turned = kind == K_MORE || kind == K_ATMOST;
+            if (kind == K_EQUAL || kind == K_DIFFERS) {
+                a.three(F_XOR, T2, T0, T1);
+                a.immediate(I_SLTIU, T2, T2, 1);
+            } else {
+                a.three(F_SLT, T2, turned ? T1 : T0, turned ? T0 : T1);
+            }
+            if (kind == K_DIFFERS || kind == K_ATMOST || kind == K_ATLEAST) a.immediate(I_XORI, T2, T2, 1);
+            a.set(T3, FALSE_WORD);
+            a.shift(F_SLL, T2, T2, 2);
+            a.three(F_SUBU, T2, T3, T2);
+        }
+
+        private void control(int order, int say, int more, int k) {
+            switch (order) {
+                case O_JUMP:
+                    a.jump(say);
+                    break;
+                case O_IF_FALSE:
+                    a.lw(T0, -4, PP);
+                    a.add(PP, PP, -4);
+                    a.set(T1, FALSE_WORD);
+                    a.over(I_BNE, T0, T1);
+                    a.jump(say);
+                    break;
+                case O_DROP:
+                    a.add(PP, PP, -4);
+                    break;
+                case O_SLIDE:
+                    a.lw(T0, -4, PP);
+                    a.add(PP, PP, -4 * say);
+                    a.sw(T0, -4, PP);
+                    break;
+                case O_APPLY:
+                    a.jumpAndLink(say != 0 ? library.applyLast : library.apply);
+                    break;
+                case O_RETURN:
+                    a.jump(library.giveBack);
+                    break;
+                case O_NEED:
+                    a.set(A0, say * 4);
+                    a.jumpAndLink(library.need);
+                    break;
+                case O_FUNCTION:
+                    a.set(T0, (more + 1) * 8 + HEAD_FUNCTION);
+                    a.sw(T0, 0, V0);
+                    a.setCode(T1, say);
+                    a.sw(T1, 4, V0);
+                    a.move(A0, V0);
+                    a.add(V0, V0, 8 + 4 * more);
+                    a.jumpAndLink(library.push);
+                    break;
+                case O_FILL:
+                    fill(say, more, k);
+                    break;
+                case O_COPY:
+                    with(say * 4, library.copy);
+                    break;
+                default:
+                    trouble(order, say);
+                    break;
+            }
+        }
+
+        /** Orders that fill the same function stand together: its address is taken once. */
+        private void fill(int say, int more, int k) {
+            boolean again = at(coder.op, k - 1) == O_FILL && at(coder.two, k - 1) >> 8 == more >> 8;
+            if (!again) {
+                a.lw(T3, 0, FP);
+                a.lw(T2, (more >> 8) * 4, FP);
+            }
+            if (say >= 0) a.lw(T0, say * 4, FP);
+            else a.lw(T0, 8 + 4 * ~say, T3);
+            a.sw(T0, 8 + 4 * (more & 255), T2);
+        }
+
+        private void trouble(int order, int say) {
+            switch (order) {
+                case O_TRY:
+                    a.setCode(A1, say);
+                    a.jumpAndLink(library.open);
+                    break;
+                case O_TRIED:
+                    a.jumpAndLink(library.opened);
+                    break;
+                case O_RAISE:
+                    a.lw(A0, -4, PP);
+                    a.jump(library.raise);
+                    break;
+                case O_THROW:
+                    a.set(A0, say);
+                    a.jump(library.raise);
+                    break;
+                case O_STEP:
+                    library.step();
+                    break;
+                default:
+                    a.lw(V1, -4, PP);
+                    a.set(V0, VALUE);
+                    a.jump(library.finish);
+                    break;
+            }
+        }
+
+        private void match(int order, int say, int more) {
+            int temp = (TEMPS + (more & 255)) * 4;
+            switch (order) {
+                case O_MATCH:
+                    a.lw(T0, say * 4, FP);
+                    a.sw(T0, TEMPS * 4, 0);
+                    break;
+                case O_MATCH_HELD:
+                    a.lw(T1, 0, FP);
+                    a.lw(T0, 8 + say * 4, T1);
+                    a.sw(T0, TEMPS * 4, 0);
+                    break;
+                case O_FIELD:
+                    a.lw(T0, (TEMPS + (say >> 16)) * 4, 0);
+                    a.lw(T1, 4 + (say & 255) * 4, T0);
+                    a.sw(T1, (TEMPS + (say >> 8 & 255)) * 4, 0);
+                    break;
+                case O_CON:
+                    a.lw(T0, temp, 0);
+                    a.immediate(I_ANDI, T1, T0, 3);
+                    a.over(I_BEQ, T1, 0);
+                    a.jump(more >> 8);
+                    a.lw(T2, 0, T0);
+                    a.set(T3, say);
+                    a.over(I_BEQ, T2, T3);
+                    a.jump(more >> 8);
+                    a.lw(T2, 4, T0);
+                    a.sw(T2, temp, 0);
+                    break;
+                case O_SAME:
+                    a.lw(T0, temp, 0);
+                    a.set(T1, say);
+                    a.over(I_BEQ, T0, T1);
+                    a.jump(more >> 8);
+                    break;
+                case O_KEEP:
+                    a.lw(T0, (TEMPS + say) * 4, 0);
+                    a.sw(T0, (KEPT + more) * 4, 0);
+                    break;
+                default:
+                    with(say * 4, library.bind);
+                    break;
+            }
+        }
+    }
+
+    /** A processor as that of MIPS I: a slot behind each jump, and a loaded register a word late. */
+    private static final class Processor {
+        private static final long TURNS_MOST = 1L << 44;
+        private static final int DIFFERS = 9;
+
+        private final int[] memory;
+        private final int[] register = new int[32];
+        private int here;
+        private int next;
+        private int after;
+        private int high;
+        private int low;
+        private int late;
+        private int lateWord;
+        private boolean stopped;
+
+        Processor(int[] memory) {
+            this.memory = memory;
+        }
+
+        int registerOf(int k) {
+            return at(register, k);
+        }
+
+        /** Runs the words from the first one on till they stop it: what they leave in V0. */
+        int go() {
+            for (int k = 0; k < 32; k++) put(register, k, 0);
+            here = WORDS * 4;
+            next = here + 4;
+            late = 0;
+            stopped = false;
+            for (long n = 0; n < TURNS_MOST && !stopped; n++) {
+                int word = at(memory, here >> 2);
+                after = next + 4;
+                int due = late;
+                int dueWord = lateWord;
+                late = 0;
+                int kind = word >>> 26;
+                if (kind == 0) special(word);
+                else if (kind >= 32) transfer(kind, word);
+                else if (kind >= 8) immediate(kind, word);
+                else leap(kind, word);
+                if (due != 0) put(register, due, dueWord);
+                here = next;
+                next = after;
+            }
+            return stopped ? at(register, V0) : DIFFERS;
+        }
+
+        private void write(int k, int word) {
+            if (k != 0) put(register, k, word);
+        }
+
+        private void special(int word) {
+            int a = at(register, word >> 21 & 31);
+            int b = at(register, word >> 16 & 31);
+            int to = word >> 11 & 31;
+            int by = word >> 6 & 31;
+            switch (word & 63) {
+                case F_SLL:
+                    write(to, b << by);
+                    break;
+                case F_SRL:
+                    write(to, b >>> by);
+                    break;
+                case F_SRA:
+                    write(to, b >> by);
+                    break;
+                case F_JR:
+                    after = a;
+                    break;
+                case F_SYSCALL:
+                    stopped = true;
+                    break;
+                case F_ADDU:
+                    write(to, a + b);
+                    break;
+                case F_SUBU:
+                    write(to, a - b);
+                    break;
+                case F_XOR:
+                    write(to, a ^ b);
+                    break;
+                case F_SLT:
+                    write(to, a < b ? 1 : 0);
+                    break;
+                case F_SLTU:
+                    write(to, a + Integer.MIN_VALUE < b + Integer.MIN_VALUE ? 1 : 0);
+                    break;
+                case F_MFHI:
+                    write(to, high);
+                    break;
+                case F_MFLO:
+                    write(to, low);
+                    break;
+                default:
+                    longOne(word & 63, a, b);
+                    break;
+            }
+        }
+
+        private void longOne(int function, int a, int b) {
+            if (function == F_MULT) {
+                long product = (long) a * b;
+                low = (int) product;
+                high = (int) (product >> 32);
+            } else if (function == F_DIV && b != 0) {
+                low = a / b;
+                high = a % b;
+            } else if (function == F_DIVU && b != 0) {
+                low = Integer.divideUnsigned(a, b);
+                high = Integer.remainderUnsigned(a, b);
+            }
+        }
+
+        private void immediate(int kind, int word) {
+            int a = at(register, word >> 21 & 31);
+            int to = word >> 16 & 31;
+            int number = (short) word;
+            switch (kind) {
+                case I_ADDIU:
+                    write(to, a + number);
+                    break;
+                case I_SLTIU:
+                    write(to, a + Integer.MIN_VALUE < number + Integer.MIN_VALUE ? 1 : 0);
+                    break;
+                case I_ANDI:
+                    write(to, a & word & 65535);
+                    break;
+                case I_ORI:
+                    write(to, a | word & 65535);
+                    break;
+                case I_XORI:
+                    write(to, a ^ word & 65535);
+                    break;
+                case I_LUI:
+                    write(to, word << 16);
+                    break;
+                default:
+                    break;
+            }
+        }
+
+        private void leap(int kind, int word) {
+            int a = at(register, word >> 21 & 31);
+            int b = at(register, word >> 16 & 31);
+            int near = next + ((short) word) * 4;
+            switch (kind) {
+                case I_J:
+                    after = (word & 0x3ffffff) * 4;
+                    break;
+                case I_JAL:
+                    write(RA, here + 8);
+                    after = (word & 0x3ffffff) * 4;
+                    break;
+                case I_BEQ:
+                    if (a == b) after = near;
+                    break;
+                case I_BNE:
+                    if (a != b) after = near;
+                    break;
+                case I_BLTZ_GEZ:
+                    if (a < 0 == ((word >> 16 & 31) == 0)) after = near;
+                    break;
+                default:
+                    break;
+            }
+        }
+
+        private void transfer(int kind, int word) {
+            int address = at(register, word >> 21 & 31) + (short) word;
+            int k = address >> 2;
+            int shift = 24 - 8 * (address & 3);
+            int to = word >> 16 & 31;
+            int there = at(memory, k);
+            if (kind == I_LW) {
+                late = to;
+                lateWord = there;
+            } else if (kind == I_LBU) {
+                late = to;
+                lateWord = there >> shift & 255;
+            } else if (kind == I_SW) {
+                put(memory, k, at(register, to));
+            } else if (kind == I_SB) {
+                put(memory, k, there & ~(255 << shift) | (at(register, to) & 255) << shift);
+            }
+        }
+    }
+
     /** Writes types and values as bytes of the RESULT. */
     private static final class Writer {
         private static final int ITEMS = 425984;
@@ -3919,6 +5339,8 @@ public final class LeanHouse {
     private final Scope scope;
     private final Coder coder;
     private final Machine machine;
+    private final Compiler compiler;
+    private final Processor processor;
     private final Writer writer;
     private int textSize;
     private int inputSize;
@@ -3927,6 +5349,7 @@ public final class LeanHouse {
     private int ending;
     private int value;
     private int outputKept;
+    private int compiled;
     private boolean isProgram;
 
     public LeanHouse() {
@@ -3938,6 +5361,8 @@ public final class LeanHouse {
         checker = new Checker(tree, types, scope);
         coder = new Coder(tree, scope, lexer, memory);
         machine = new Machine(coder, memory);
+        compiler = new Compiler(coder, memory);
+        processor = new Processor(memory);
         writer = new Writer(types, scope, lexer, memory);
         foundPlace = NONE;
         ending = NOT_ENDED;
@@ -3981,6 +5406,7 @@ public final class LeanHouse {
             foundPlace = checker.place;
         } else {
             coder.code();
+            compiled = 0;
             isProgram = true;
         }
         return isProgram;
@@ -4010,15 +5436,33 @@ public final class LeanHouse {
         if (heap < HEAP_LEAST || heap > HEAP_MOST) throw new IllegalArgumentException("no such heap");
         if (!isProgram) throw new IllegalStateException("there is no program");
         put(memory, CELL_INPUTS, inputSize);
+        if (how == 0) interpret(steps, heap);
+        else process(how, steps, heap);
+        put(counts, 4, at(memory, CELL_OUT));
+        outputKept = Math.min(KEPT_MOST, at(counts, 4));
+        return ending;
+    }
+
+    private void interpret(int steps, int heap) {
         ending = machine.go(steps, heap);
         value = machine.value;
         put(counts, 0, machine.steps);
         put(counts, 1, machine.collections);
         put(counts, 2, machine.used());
         put(counts, 3, machine.pileMost - PILE_BASE);
-        put(counts, 4, at(memory, CELL_OUT));
-        outputKept = Math.min(KEPT_MOST, at(counts, 4));
-        return ending;
+    }
+
+    private void process(int how, int steps, int heap) {
+        if (compiled != how) compiler.compile(how);
+        compiled = how;
+        put(memory, CELL_SIZE, heap * 4);
+        put(memory, CELL_STEPS, steps);
+        ending = processor.go();
+        value = processor.registerOf(V1);
+        put(counts, 0, steps - processor.registerOf(LEFT));
+        put(counts, 1, at(memory, CELL_COLLECTIONS));
+        put(counts, 2, (processor.registerOf(FREE) - at(memory, CELL_SPACE)) / 4);
+        put(counts, 3, processor.registerOf(MOST) / 4 - PILE_BASE);
     }
 
     public int seen(int what) throws IndexOutOfBoundsException, IllegalStateException {
