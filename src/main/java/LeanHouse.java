@@ -570,37 +570,19 @@ public final class LeanHouse {
         }
     }
 
-    /** The row of marks of a program: what it is, what it says, its place, and what was found of it. */
-    private static final class Tree {
-        private static final int MARKS = 10240;
+    /** Tokens into a row of marks (what each is, what it says, its place, what was found of it), or the first fault. */
+    private static final class Parser {
+        static final int MARKS = 10240;
+        private static final int WAITING = 1024;
 
         final int[] op = new int[MARKS];
         final int[] says = new int[MARKS];
-        final int[] place = new int[MARKS];
+        final int[] places = new int[MARKS];
         final int[] link = new int[MARKS];
         final int[] home = new int[MARKS];
-        int size;
-
-        int add(int kind, int say, int where) {
-            int k = size;
-            if (k >= MARKS) return k;
-            put(op, k, kind);
-            put(says, k, say);
-            put(place, k, where);
-            put(link, k, NONE);
-            put(home, k, NONE);
-            size++;
-            return k;
-        }
-    }
-
-    /** Tokens into marks, or the first fault by tokens. */
-    private static final class Parser {
-        private static final int WAITING = 1024;
-        private static final int APPLIED = 9;
+        int marks;
 
         private final Lexer lexer;
-        private final Tree tree;
         private final int[] waiting = new int[WAITING];
         private final int[] waitingAt = new int[WAITING];
         private int waits;
@@ -610,13 +592,12 @@ public final class LeanHouse {
         int fault;
         int place;
 
-        Parser(Lexer lexer, Tree tree) {
+        Parser(Lexer lexer) {
             this.lexer = lexer;
-            this.tree = tree;
         }
 
         boolean parse(int size) {
-            tree.size = 0;
+            marks = 0;
             waits = 0;
             open = 0;
             cons = 0;
@@ -627,10 +608,22 @@ public final class LeanHouse {
             step();
             decs(true);
             need(W_IN);
-            tree.add(E_LAST, 0, 0);
+            add(E_LAST, 0, 0);
             exp();
             if (lexer.kind != K_TEXT_END) fail(SYNTAX);
             return fault == 0;
+        }
+
+        private int add(int kind, int say, int where) {
+            int k = marks;
+            if (k >= MARKS) return k;
+            put(op, k, kind);
+            put(says, k, say);
+            put(places, k, where);
+            put(link, k, NONE);
+            put(home, k, NONE);
+            marks++;
+            return k;
         }
 
         private void step() {
@@ -701,89 +694,89 @@ public final class LeanHouse {
                 recDec(first);
                 return;
             }
-            int dec = tree.add(D_VAL, first, lexer.start);
+            int dec = add(D_VAL, first, lexer.start);
             pat();
-            put(tree.link, dec, tree.add(D_VAL_EQUAL, 0, lexer.start));
+            put(link, dec, add(D_VAL_EQUAL, 0, lexer.start));
             int equal = lexer.start;
             need(K_EQUAL);
             exp();
-            tree.add(D_VAL_END, first, equal);
+            add(D_VAL_END, first, equal);
         }
 
         private void recDec(int first) {
             step();
-            int dec = tree.add(D_REC, lexer.meaning, lexer.start);
-            put(tree.link, dec, first);
+            int dec = add(D_REC, lexer.meaning, lexer.start);
+            put(link, dec, first);
             need(K_NAME);
             int equal = lexer.start;
             need(K_EQUAL);
             if (lexer.kind == W_FN) exp();
             else fail(SYNTAX);
-            put(tree.link, tree.add(D_REC_END, first, equal), dec);
+            put(link, add(D_REC_END, first, equal), dec);
         }
 
         private void funDec(boolean outermost) {
             int first = outermost ? 1 : 0;
-            int dec = tree.add(D_FUN, first, lexer.start);
+            int dec = add(D_FUN, first, lexer.start);
             int last = NONE;
             for (int n = 0; n <= TOKENS_MOST; n++) {
                 step();
-                int fun = tree.add(D_FUNCTION, lexer.meaning, lexer.start);
-                put(tree.link, last < 0 ? dec : last, fun);
+                int fun = add(D_FUNCTION, lexer.meaning, lexer.start);
+                put(link, last < 0 ? dec : last, fun);
                 last = fun;
                 for (int m = 0; m <= TOKENS_MOST; m++) {
                     int equal = clauseHead();
                     exp();
-                    tree.add(C_END, 0, equal);
+                    add(C_END, 0, equal);
                     if (lexer.kind != K_BAR) break;
                     step();
                 }
-                put(tree.link, tree.add(D_FUNCTION_END, 0, 0), fun);
+                put(link, add(D_FUNCTION_END, 0, 0), fun);
                 if (lexer.kind != W_AND) break;
             }
-            put(tree.link, tree.add(D_FUN_END, first, 0), dec);
+            put(link, add(D_FUN_END, first, 0), dec);
         }
 
         /** NAME, ATPATs and the = of a clause: the place of the =. */
         private int clauseHead() {
             int name = lexer.start;
-            int clause = tree.add(C_CLAUSE, lexer.meaning, name);
+            int clause = add(C_CLAUSE, lexer.meaning, name);
             need(K_NAME);
             int atpats = 0;
             for (int n = 0; n <= ATPATS_MOST && beginsAtpat(lexer.kind); n++) {
                 if (atpats == ATPATS_MOST) {
                     fail(MANY);
                 } else {
-                    tree.add(C_ARGUMENT, atpats, 0);
+                    add(C_ARGUMENT, atpats, 0);
                     atpat();
-                    tree.add(C_ATPAT, atpats, name);
+                    add(C_ATPAT, atpats, name);
                     atpats++;
                 }
             }
-            put(tree.link, clause, atpats);
+            put(link, clause, atpats);
             if (atpats == 0) fail(SYNTAX);
             if (lexer.kind == K_COLON) {
                 step();
                 type();
-                tree.add(C_TYPE, 0, name);
+                add(C_TYPE, 0, name);
             }
             int equal = lexer.start;
             need(K_EQUAL);
-            tree.add(C_EQUAL, 0, equal);
+            add(C_EQUAL, 0, equal);
             return equal;
         }
 
         private void datatypeDec() {
-            int dec = tree.add(D_DATATYPE, 0, lexer.start);
+            int dec = add(D_DATATYPE, 0, lexer.start);
             int last = dec;
             for (int n = 0; n <= TOKENS_MOST; n++) {
                 step();
-                int kind = tree.add(D_TYPE, 0, 0);
-                put(tree.link, last, kind);
+                int kind = add(D_TYPE, 0, 0);
+                put(link, last, kind);
                 last = kind;
                 typeVariables(kind);
-                put(tree.says, kind, lexer.meaning);
-                put(tree.place, kind, lexer.start);
+                put(says, kind, lexer.meaning);
+                put(places, kind, lexer.start);
                 if (lexer.kind == K_NAME && types++ >= TYPES_MOST) fail(MANY);
                 need(K_NAME);
                 if (lexer.kind != K_EQUAL) fail(SYNTAX);
@@ -798,19 +791,19 @@ public final class LeanHouse {
         private void typeVariables(int kind) {
             int variables = 0;
             if (lexer.kind == K_VARIABLE) {
-                tree.add(D_VARIABLE, lexer.meaning, lexer.start);
+                add(D_VARIABLE, lexer.meaning, lexer.start);
                 step();
                 variables = 1;
             } else if (lexer.kind == K_OPEN) {
                 for (int n = 0; n <= TOKENS_MOST && (n == 0 || lexer.kind == K_COMMA); n++) {
                     step();
-                    tree.add(D_VARIABLE, lexer.meaning, lexer.start);
+                    add(D_VARIABLE, lexer.meaning, lexer.start);
                     need(K_VARIABLE);
                     variables++;
                 }
                 need(K_CLOSE);
             }
-            put(tree.home, kind, variables);
+            put(home, kind, variables);
         }
 
         private void exceptionDec() {
@@ -819,7 +812,7 @@ public final class LeanHouse {
         }
 
         private void con(int begin, int end) {
-            int con = tree.add(begin, lexer.meaning, lexer.start);
+            int con = add(begin, lexer.meaning, lexer.start);
             if (lexer.kind == K_NAME && cons++ >= CONS_MOST) fail(MANY);
             need(K_NAME);
             int argument = 0;
@@ -828,8 +821,8 @@ public final class LeanHouse {
                 type();
                 argument = 1;
             }
-            put(tree.home, con, argument);
-            put(tree.link, tree.add(end, argument, 0), con);
+            put(home, con, argument);
+            put(link, add(end, argument, 0), con);
         }
 
         private void type() {
@@ -837,7 +830,7 @@ public final class LeanHouse {
             if (lexer.kind == K_ARROW && enter()) {
                 step();
                 type();
-                tree.add(T_ARROW, 0, 0);
+                add(T_ARROW, 0, 0);
                 open--;
             }
         }
@@ -851,13 +844,13 @@ public final class LeanHouse {
                 typeAtom();
                 parts++;
             }
-            if (parts > 1) tree.add(T_PRODUCT, parts, 0);
+            if (parts > 1) add(T_PRODUCT, parts, 0);
         }
 
         private void typeAtom() {
             int kind = lexer.kind;
             if (kind == K_VARIABLE) {
-                tree.add(T_VARIABLE, lexer.meaning, lexer.start);
+                add(T_VARIABLE, lexer.meaning, lexer.start);
                 step();
             } else if (kind == K_NAME || kind == W_REF) {
                 typeName(0);
@@ -882,7 +875,7 @@ public final class LeanHouse {
                 fail(SYNTAX);
                 return;
             }
-            put(tree.link, tree.add(T_NAME, lexer.meaning, lexer.start), types);
+            put(link, add(T_NAME, lexer.meaning, lexer.start), types);
             step();
         }
 
@@ -892,20 +885,20 @@ public final class LeanHouse {
                 int colon = lexer.start;
                 step();
                 type();
-                tree.add(P_TYPED, 0, colon);
+                add(P_TYPED, 0, colon);
             }
         }
 
         private void consPat() {
-            int mark = tree.add(P_MARK, 0, 0);
+            int mark = add(P_MARK, 0, 0);
             pat2();
             if (lexer.kind == K_CONS && enter()) {
                 int sign = lexer.start;
-                put(tree.op, mark, P_CONS);
-                tree.add(P_CONS_MID, 0, sign);
+                put(op, mark, P_CONS);
+                add(P_CONS_MID, 0, sign);
                 step();
                 consPat();
-                tree.add(P_CONS_END, 0, sign);
+                add(P_CONS_END, 0, sign);
                 open--;
             }
         }
@@ -920,17 +913,17 @@ public final class LeanHouse {
             step();
             if (lexer.kind == W_AS) {
                 if (!enter()) return;
-                tree.add(P_AS, name, where);
+                add(P_AS, name, where);
                 step();
                 pat();
-                tree.add(P_AS_END, 0, where);
+                add(P_AS_END, 0, where);
                 open--;
             } else if (beginsAtpat(lexer.kind)) {
-                tree.add(P_CON, name, where);
+                add(P_CON, name, where);
                 atpat();
-                tree.add(P_CON_END, 0, where);
+                add(P_CON_END, 0, where);
             } else {
-                tree.add(P_NAME, name, where);
+                add(P_NAME, name, where);
             }
         }
 
@@ -938,15 +931,15 @@ public final class LeanHouse {
             int where = lexer.start;
             switch (lexer.kind) {
                 case K_UNDER:
-                    tree.add(P_ANY, 0, where);
+                    add(P_ANY, 0, where);
                     step();
                     break;
                 case K_NAME:
-                    tree.add(P_NAME, lexer.meaning, where);
+                    add(P_NAME, lexer.meaning, where);
                     step();
                     break;
                 case K_NUMBER:
-                    tree.add(P_NUMBER, lexer.meaning, where);
+                    add(P_NUMBER, lexer.meaning, where);
                     step();
                     break;
                 case K_OPEN:
@@ -964,40 +957,40 @@ public final class LeanHouse {
         private void roundPat() {
             step();
             if (lexer.kind == K_CLOSE) {
-                tree.add(P_UNIT, 0, 0);
+                add(P_UNIT, 0, 0);
             } else {
-                int mark = tree.add(P_OPEN, 1, 0);
+                int mark = add(P_OPEN, 1, 0);
                 pat();
                 int fields = 1;
                 for (int n = 0; n <= TOKENS_MOST && lexer.kind == K_COMMA; n++) {
                     step();
                     if (fields == FIELDS_MOST && beginsAtpat(lexer.kind)) fail(MANY);
-                    tree.add(P_FIELD, fields, 0);
+                    add(P_FIELD, fields, 0);
                     pat();
                     fields++;
                 }
-                put(tree.says, mark, fields);
-                tree.add(P_CLOSE, fields, 0);
+                put(says, mark, fields);
+                add(P_CLOSE, fields, 0);
             }
             need(K_CLOSE);
             open--;
         }
 
         private void listPat() {
-            tree.add(P_LIST, 0, 0);
+            add(P_LIST, 0, 0);
             step();
             int items = 0;
             if (lexer.kind != K_LISTED) {
                 for (int n = 0; n <= TOKENS_MOST && (n == 0 || lexer.kind == K_COMMA); n++) {
                     if (n > 0) step();
                     int where = lexer.start;
-                    tree.add(P_ITEM, n, where);
+                    add(P_ITEM, n, where);
                     pat();
-                    tree.add(P_ITEM_END, n, where);
+                    add(P_ITEM_END, n, where);
                     items++;
                 }
             }
-            tree.add(P_LIST_END, items, 0);
+            add(P_LIST_END, items, 0);
             need(K_LISTED);
             open--;
         }
@@ -1005,13 +998,13 @@ public final class LeanHouse {
         private void match() {
             for (int n = 0; n <= TOKENS_MOST; n++) {
                 int patAt = lexer.start;
-                tree.add(R_BEGIN, n, 0);
+                add(R_BEGIN, n, 0);
                 pat();
-                tree.add(R_GIVES, n, patAt);
+                add(R_GIVES, n, patAt);
                 need(K_GIVES);
                 int expAt = lexer.start;
                 exp();
-                tree.add(R_END, n, expAt);
+                add(R_END, n, expAt);
                 if (lexer.kind != K_BAR) return;
                 step();
             }
@@ -1035,14 +1028,14 @@ public final class LeanHouse {
                     raiseExp();
                     break;
                 default:
-                    int mark = tree.add(E_LOW, 0, 0);
+                    int mark = add(E_LOW, 0, 0);
                     low();
                     if (lexer.kind == W_HANDLE && enter()) {
-                        put(tree.op, mark, E_TRY);
-                        tree.add(E_HANDLE, 0, 0);
+                        put(op, mark, E_TRY);
+                        add(E_HANDLE, 0, 0);
                         step();
                         match();
-                        tree.add(E_HANDLE_END, 0, 0);
+                        add(E_HANDLE_END, 0, 0);
                         open--;
                     }
                     break;
@@ -1051,10 +1044,10 @@ public final class LeanHouse {
 
         private void fnExp() {
             if (!enter()) return;
-            int mark = tree.add(E_FN, 0, 0);
+            int mark = add(E_FN, 0, 0);
             step();
             match();
-            put(tree.link, tree.add(E_FN_END, 0, 0), mark);
+            put(link, add(E_FN_END, 0, 0), mark);
             open--;
         }
 
@@ -1063,9 +1056,9 @@ public final class LeanHouse {
             step();
             exp();
             need(W_OF);
-            tree.add(E_CASE, 0, 0);
+            add(E_CASE, 0, 0);
             match();
-            tree.add(E_CASE_END, 0, 0);
+            add(E_CASE_END, 0, 0);
             open--;
         }
 
@@ -1075,26 +1068,26 @@ public final class LeanHouse {
             step();
             exp();
             need(W_THEN);
-            tree.add(E_THEN, 0, ifAt);
+            add(E_THEN, 0, ifAt);
             exp();
             int elseAt = lexer.start;
             need(W_ELSE);
-            tree.add(E_ELSE, 0, 0);
+            add(E_ELSE, 0, 0);
             exp();
-            tree.add(E_IF_END, 0, elseAt);
+            add(E_IF_END, 0, elseAt);
             open--;
         }
 
         private void whileExp() {
             if (!enter()) return;
             int whileAt = lexer.start;
-            tree.add(E_WHILE, 0, 0);
+            add(E_WHILE, 0, 0);
             step();
             exp();
             need(W_DO);
-            tree.add(E_DO, 0, whileAt);
+            add(E_DO, 0, whileAt);
             exp();
-            tree.add(E_WHILE_END, 0, 0);
+            add(E_WHILE_END, 0, 0);
             open--;
         }
 
@@ -1103,7 +1096,7 @@ public final class LeanHouse {
             int raiseAt = lexer.start;
             step();
             exp();
-            tree.add(E_RAISE, 0, raiseAt);
+            add(E_RAISE, 0, raiseAt);
             open--;
         }
 
@@ -1135,14 +1128,14 @@ public final class LeanHouse {
                 if (kind == K_COLON) {
                     step();
                     type();
-                    tree.add(E_TYPED, 0, where);
+                    add(E_TYPED, 0, where);
                 } else {
                     if (fromRight(kind) && !enter()) return;
                     put(waiting, waits, kind);
                     put(waitingAt, waits, where);
                     waits++;
-                    if (kind == W_ANDALSO) tree.add(E_AND_MID, 0, where);
-                    if (kind == W_ORELSE) tree.add(E_OR_MID, 0, where);
+                    if (kind == W_ANDALSO) add(E_AND_MID, 0, where);
+                    if (kind == W_ORELSE) add(E_OR_MID, 0, where);
                     step();
                     boolean wide = kind == W_ANDALSO || kind == W_ORELSE || kind == K_ASSIGN;
                     if (wide && beginsWide(lexer.kind)) exp();
@@ -1161,7 +1154,7 @@ public final class LeanHouse {
                 if (own < weakest || own == weakest && fromRight(kind)) return;
                 waits--;
                 int mark = kind == W_ANDALSO ? E_AND : kind == W_ORELSE ? E_OR : E_OPERATOR;
-                tree.add(mark, kind, at(waitingAt, waits));
+                add(mark, kind, at(waitingAt, waits));
                 if (fromRight(kind)) open--;
             }
         }
@@ -1184,22 +1177,22 @@ public final class LeanHouse {
                 } else {
                     leaf(kind, where);
                 }
-                if (n > 0) tree.add(E_APPLY, 0, where);
+                if (n > 0) add(E_APPLY, 0, where);
             }
         }
 
         private void leaf(int kind, int where) {
-            if (kind == K_NAME) tree.add(E_NAME, lexer.meaning, where);
-            else if (kind == K_NUMBER) tree.add(E_NUMBER, lexer.meaning, where);
-            else if (kind == K_STRING) tree.add(E_STRING, lexer.meaning, where);
-            else tree.add(E_KNOWN, kind == W_REF ? FUN_REF : kind == K_FETCH ? FUN_FETCH : FUN_NEGATE, where);
+            if (kind == K_NAME) add(E_NAME, lexer.meaning, where);
+            else if (kind == K_NUMBER) add(E_NUMBER, lexer.meaning, where);
+            else if (kind == K_STRING) add(E_STRING, lexer.meaning, where);
+            else add(E_KNOWN, kind == W_REF ? FUN_REF : kind == K_FETCH ? FUN_FETCH : FUN_NEGATE, where);
             step();
         }
 
         private void roundExp() {
             step();
             if (lexer.kind == K_CLOSE) {
-                tree.add(E_UNIT, 0, 0);
+                add(E_UNIT, 0, 0);
             } else {
                 exp();
                 if (lexer.kind == K_COMMA) {
@@ -1211,7 +1204,7 @@ public final class LeanHouse {
                         exp();
                         fields++;
                     }
-                    tree.add(E_TUPLE, fields, 0);
+                    add(E_TUPLE, fields, 0);
                 } else if (lexer.kind == K_SEMI) {
                     sequence();
                 }
@@ -1222,11 +1215,11 @@ public final class LeanHouse {
 
         private void sequence() {
             for (int n = 0; n <= TOKENS_MOST && lexer.kind == K_SEMI; n++) {
-                tree.add(E_PASSED, 0, 0);
+                add(E_PASSED, 0, 0);
                 step();
                 exp();
             }
-            tree.add(E_SEQUENCE, 0, 0);
+            add(E_SEQUENCE, 0, 0);
         }
 
         private void listExp() {
@@ -1237,28 +1230,28 @@ public final class LeanHouse {
                     if (n > 0) step();
                     int where = lexer.start;
                     exp();
-                    if (n > 0) tree.add(E_ELEMENT, n, where);
+                    if (n > 0) add(E_ELEMENT, n, where);
                     elements++;
                 }
             }
-            tree.add(E_LIST, elements, 0);
+            add(E_LIST, elements, 0);
             need(K_LISTED);
             open--;
         }
 
         private void letExp() {
-            tree.add(E_LET, 0, 0);
+            add(E_LET, 0, 0);
             step();
             decs(false);
             need(W_IN);
             exp();
             for (int n = 0; n <= TOKENS_MOST && lexer.kind == K_SEMI; n++) {
-                tree.add(E_PASSED, 0, 0);
+                add(E_PASSED, 0, 0);
                 step();
                 exp();
             }
             need(W_END);
-            tree.add(E_LET_END, 0, 0);
+            add(E_LET_END, 0, 0);
             open--;
         }
     }
@@ -1836,7 +1829,7 @@ public final class LeanHouse {
         private static final int IN_DATATYPE = 1;
         private static final int IN_EXCEPTION = 2;
 
-        private final Tree tree;
+        private final Parser parser;
         private final Types types;
         private final Scope scope;
         private final int[] stack = new int[STACK];
@@ -1856,8 +1849,8 @@ public final class LeanHouse {
         int place;
         int result;
 
-        Checker(Tree tree, Types types, Scope scope) {
-            this.tree = tree;
+        Checker(Parser parser, Types types, Scope scope) {
+            this.parser = parser;
             this.types = types;
             this.scope = scope;
         }
@@ -1872,8 +1865,8 @@ public final class LeanHouse {
             typeMode = IN_ANNOTATION;
             for (int k = 0; k < NAMES_MOST; k++) put(variableStamp, k, 0);
             stamp = 1;
-            for (int k = 0; k < tree.size && fault == 0; k++) {
-                int op = at(tree.op, k);
+            for (int k = 0; k < parser.marks && fault == 0; k++) {
+                int op = at(parser.op, k);
                 if (op < E_CASE) plain(op, k);
                 else if (op < P_MARK) rules(op, k);
                 else if (op < T_VARIABLE) pattern(op, k);
@@ -1917,8 +1910,8 @@ public final class LeanHouse {
         }
 
         private void plain(int op, int k) {
-            int say = at(tree.says, k);
-            int where = at(tree.place, k);
+            int say = at(parser.says, k);
+            int where = at(parser.places, k);
             switch (op) {
                 case E_NUMBER:
                     push(TYPE_INT, VALUED);
@@ -2002,13 +1995,13 @@ public final class LeanHouse {
         private void name(int name, int where, int k) {
             int con = scope.con(name);
             if (con >= 0) {
-                put(tree.link, k, FOR_CON + con);
+                put(parser.link, k, FOR_CON + con);
                 push(scope.conType(con), scope.hasArgument(con) ? VALUED | HEAD : VALUED);
                 return;
             }
             int variable = scope.variable(name);
             if (variable >= 0) {
-                put(tree.link, k, FOR_VARIABLE + scope.variableMark(variable));
+                put(parser.link, k, FOR_VARIABLE + scope.variableMark(variable));
                 scope.use(variable);
                 push(scope.typeOfVariable(variable), VALUED);
                 return;
@@ -2018,7 +2011,7 @@ public final class LeanHouse {
                 fail(NAME, where);
                 return;
             }
-            put(tree.link, k, FOR_FUNCTION + function);
+            put(parser.link, k, FOR_FUNCTION + function);
             push(knownType(function), VALUED);
         }
 
@@ -2128,7 +2121,7 @@ public final class LeanHouse {
 
         /** A MATCH holds the type of what is matched and that of what its rules give. */
         private void rules(int op, int k) {
-            int where = at(tree.place, k);
+            int where = at(parser.places, k);
             switch (op) {
                 case E_CASE:
                     hold(pop());
@@ -2139,9 +2132,9 @@ public final class LeanHouse {
                     hold(pop());
                     break;
                 case E_FN:
-                    int own = k > 0 && at(tree.op, k - 1) == D_REC ? k - 1 : NONE;
+                    int own = k > 0 && at(parser.op, k - 1) == D_REC ? k - 1 : NONE;
                     int function = scope.beginFunction(own);
-                    put(tree.link, k, function);
+                    put(parser.link, k, function);
                     scope.enter(function);
                     hold(NONE);
                     hold(NONE);
@@ -2202,8 +2195,8 @@ public final class LeanHouse {
         }
 
         private void pattern(int op, int k) {
-            int say = at(tree.says, k);
-            int where = at(tree.place, k);
+            int say = at(parser.says, k);
+            int where = at(parser.places, k);
             switch (op) {
                 case P_ANY:
                     push(types.fresh(types.level), 0);
@@ -2262,12 +2255,12 @@ public final class LeanHouse {
         private void patternName(int name, int where, int k) {
             int con = scope.con(name);
             if (con < 0) {
-                put(tree.link, k, FOR_VARIABLE);
+                put(parser.link, k, FOR_VARIABLE);
                 declare(name, where, k);
                 push(scope.variableType(scope.top - 1), 0);
                 return;
             }
-            put(tree.link, k, FOR_CON + con);
+            put(parser.link, k, FOR_CON + con);
             if (scope.hasArgument(con)) fail(ARITY, where);
             push(scope.conType(con), 0);
         }
@@ -2278,20 +2271,20 @@ public final class LeanHouse {
                 fail(NAME, where);
                 return;
             }
-            put(tree.link, k, FOR_CON + con);
+            put(parser.link, k, FOR_CON + con);
             if (!scope.hasArgument(con)) fail(ARITY, where);
             push(scope.conType(con), 0);
         }
 
         private void type(int op, int k) {
-            int say = at(tree.says, k);
-            int where = at(tree.place, k);
+            int say = at(parser.says, k);
+            int where = at(parser.places, k);
             switch (op) {
                 case T_VARIABLE:
                     push(typeVariable(say, where), 0);
                     break;
                 case T_NAME:
-                    int ahead = at(tree.link, k);
+                    int ahead = at(parser.link, k);
                     int type = scope.typeOf(say);
                     if (type < 0) fail(NAME, where);
                     else if (types.arityOf(type) != ahead) fail(ARITY, where);
@@ -2325,8 +2318,8 @@ public final class LeanHouse {
         }
 
         private void dec(int op, int k) {
-            int say = at(tree.says, k);
-            int where = at(tree.place, k);
+            int say = at(parser.says, k);
+            int where = at(parser.places, k);
             switch (op) {
                 case D_VAL:
                     beginDec(say);
@@ -2342,7 +2335,7 @@ public final class LeanHouse {
                     endVal(where);
                     break;
                 case D_REC:
-                    beginDec(at(tree.link, k));
+                    beginDec(at(parser.link, k));
                     patFrom = scope.top;
                     if (scope.con(say) >= 0) fail(AGAIN, where);
                     declare(say, where, k);
@@ -2357,7 +2350,7 @@ public final class LeanHouse {
                     declareFunctions(k);
                     break;
                 case D_FUNCTION:
-                    int function = at(tree.home, k);
+                    int function = at(parser.home, k);
                     current = k;
                     scope.enter(function);
                     break;
@@ -2365,7 +2358,7 @@ public final class LeanHouse {
                     scope.leave();
                     break;
                 case D_FUN_END:
-                    endFun(at(tree.link, k));
+                    endFun(at(parser.link, k));
                     break;
                 default:
                     clause(op, k);
@@ -2392,33 +2385,33 @@ public final class LeanHouse {
         }
 
         private void generalise(int variable) {
-            if (!scope.generalise(variable)) fail(MANY, at(tree.place, scope.variableMark(variable)));
+            if (!scope.generalise(variable)) fail(MANY, at(parser.places, scope.variableMark(variable)));
         }
 
         private void declareFunctions(int dec) {
             patFrom = scope.top;
-            int k = at(tree.link, dec);
-            for (int n = 0; n < tree.size && k >= 0; n++) {
-                int name = at(tree.says, k);
-                int where = at(tree.place, k);
+            int k = at(parser.link, dec);
+            for (int n = 0; n < parser.marks && k >= 0; n++) {
+                int name = at(parser.says, k);
+                int where = at(parser.places, k);
                 if (scope.con(name) >= 0) fail(AGAIN, where);
                 declare(name, where, k);
-                put(tree.home, k, scope.beginFunction(k));
+                put(parser.home, k, scope.beginFunction(k));
                 int type = types.fresh(types.level);
-                int atpats = at(tree.link, k + 1);
+                int atpats = at(parser.link, k + 1);
                 for (int a = 0; a < atpats; a++) type = types.arrow(types.fresh(types.level), type);
                 same(scope.variableType(scope.top - 1), type, where);
-                k = at(tree.link, k);
+                k = at(parser.link, k);
             }
         }
 
         private void endFun(int dec) {
             types.level--;
             int functions = 0;
-            int k = at(tree.link, dec);
-            for (int n = 0; n < tree.size && k >= 0; n++) {
+            int k = at(parser.link, dec);
+            for (int n = 0; n < parser.marks && k >= 0; n++) {
                 functions++;
-                k = at(tree.link, k);
+                k = at(parser.link, k);
             }
             for (int v = scope.top - functions; v < scope.top; v++) {
                 if (fault == 0) generalise(v);
@@ -2426,15 +2419,15 @@ public final class LeanHouse {
         }
 
         private void clause(int op, int k) {
-            int where = at(tree.place, k);
+            int where = at(parser.places, k);
             switch (op) {
                 case C_CLAUSE:
                     hold(current);
-                    boolean own = at(tree.says, k) == at(tree.says, current);
-                    if (!own || at(tree.link, k) != at(tree.link, current + 1)) fail(AGAIN, where);
+                    boolean own = at(parser.says, k) == at(parser.says, current);
+                    if (!own || at(parser.link, k) != at(parser.link, current + 1)) fail(AGAIN, where);
                     holdScope();
                     patFrom = scope.top;
-                    int function = scope.variable(at(tree.says, current));
+                    int function = scope.variable(at(parser.says, current));
                     cursor = types.find(scope.variableType(function));
                     break;
                 case C_ATPAT:
@@ -2459,8 +2452,8 @@ public final class LeanHouse {
         }
 
         private void outermost(int op, int k) {
-            int say = at(tree.says, k);
-            int where = at(tree.place, k);
+            int say = at(parser.says, k);
+            int where = at(parser.places, k);
             switch (op) {
                 case D_DATATYPE:
                     typeMode = IN_DATATYPE;
@@ -2474,13 +2467,13 @@ public final class LeanHouse {
                 case D_EXCEPTION:
                     if (op == D_EXCEPTION) typeMode = IN_EXCEPTION;
                     if (scope.con(say) >= 0) fail(AGAIN, where);
-                    else scope.addCon(say, at(tree.home, k));
+                    else scope.addCon(say, at(parser.home, k));
                     break;
                 case D_CON_END:
-                    endCon(say != 0 ? types.arrow(pop(), currentResult) : currentResult, at(tree.link, k));
+                    endCon(say != 0 ? types.arrow(pop(), currentResult) : currentResult, at(parser.link, k));
                     break;
                 case D_EXCEPTION_END:
-                    endCon(say != 0 ? types.arrow(pop(), TYPE_EXN) : TYPE_EXN, at(tree.link, k));
+                    endCon(say != 0 ? types.arrow(pop(), TYPE_EXN) : TYPE_EXN, at(parser.link, k));
                     break;
                 default:
                     break;
@@ -2489,32 +2482,32 @@ public final class LeanHouse {
         }
 
         private void endCon(int type, int mark) {
-            if (!scope.giveCon(scope.conCount - 1, type)) fail(MANY, at(tree.place, mark));
+            if (!scope.giveCon(scope.conCount - 1, type)) fail(MANY, at(parser.places, mark));
         }
 
         /** The names of all types of one datatype, each with its variables, ahead of their constructors. */
         private void declareTypes(int dec) {
-            int k = at(tree.link, dec);
-            for (int n = 0; n < tree.size && k >= 0 && fault == 0; n++) {
-                int variables = at(tree.home, k);
+            int k = at(parser.link, dec);
+            for (int n = 0; n < parser.marks && k >= 0 && fault == 0; n++) {
+                int variables = at(parser.home, k);
                 stamp++;
                 for (int v = 1; v <= variables; v++) {
-                    int name = at(tree.says, k + v);
-                    if (at(variableStamp, name) == stamp) fail(AGAIN, at(tree.place, k + v));
+                    int name = at(parser.says, k + v);
+                    if (at(variableStamp, name) == stamp) fail(AGAIN, at(parser.places, k + v));
                     put(variableStamp, name, stamp);
                 }
-                int name = at(tree.says, k);
-                if (scope.typeOf(name) >= 0) fail(AGAIN, at(tree.place, k));
+                int name = at(parser.says, k);
+                if (scope.typeOf(name) >= 0) fail(AGAIN, at(parser.places, k));
                 else scope.addType(name, variables);
-                k = at(tree.link, k);
+                k = at(parser.link, k);
             }
         }
 
         private int resultType(int k) {
-            int variables = at(tree.home, k);
+            int variables = at(parser.home, k);
             stamp++;
             for (int v = 1; v <= variables; v++) {
-                int name = at(tree.says, k + v);
+                int name = at(parser.says, k + v);
                 int node = types.fresh(1);
                 put(variableStamp, name, stamp);
                 put(variableNode, name, node);
@@ -2569,14 +2562,14 @@ public final class LeanHouse {
         final int[] two = new int[ORDERS];
         int size;
 
-        private final Tree tree;
+        private final Parser parser;
         private final Scope scope;
         private final Lexer lexer;
         private final int[] memory;
         private final int[] literal = new int[NAMES_MOST];
         private final int[] holds = new int[HOLDS];
-        private final int[] owner = new int[Tree.MARKS];
-        private final int[] where = new int[Tree.MARKS];
+        private final int[] owner = new int[Parser.MARKS];
+        private final int[] where = new int[Parser.MARKS];
         private final int[] bound = new int[VARIABLES_MOST + 1];
         private int literals;
         private int helds;
@@ -2586,8 +2579,8 @@ public final class LeanHouse {
         private int level;
         private int bounds;
 
-        Coder(Tree tree, Scope scope, Lexer lexer, int[] memory) {
-            this.tree = tree;
+        Coder(Parser parser, Scope scope, Lexer lexer, int[] memory) {
+            this.parser = parser;
             this.scope = scope;
             this.lexer = lexer;
             this.memory = memory;
@@ -2600,12 +2593,12 @@ public final class LeanHouse {
             depth = 0;
             literals = LITERALS;
             for (int k = 0; k < NAMES_MOST; k++) put(literal, k, NONE);
-            for (int k = 0; k < tree.size; k++) put(owner, k, NONE);
-            for (int k = 0; k < tree.size; k++) {
-                int kind = at(tree.op, k);
+            for (int k = 0; k < parser.marks; k++) put(owner, k, NONE);
+            for (int k = 0; k < parser.marks; k++) {
+                int kind = at(parser.op, k);
                 if (kind == D_VAL) {
                     hold(k);
-                    k = Math.max(k, at(tree.link, k));
+                    k = Math.max(k, at(parser.link, k));
                 } else if (kind < E_CASE) {
                     plain(kind, k);
                 } else if (kind < P_MARK) {
@@ -2666,7 +2659,7 @@ public final class LeanHouse {
         }
 
         private void plain(int kind, int k) {
-            int say = at(tree.says, k);
+            int say = at(parser.says, k);
             switch (kind) {
                 case E_TRY:
                     hold(add(O_TRY, 0, 0));
@@ -2683,7 +2676,7 @@ public final class LeanHouse {
                     constant(UNIT_WORD);
                     break;
                 case E_NAME:
-                    name(at(tree.link, k));
+                    name(at(parser.link, k));
                     break;
                 case E_KNOWN:
                     constant(say * 4 + KNOWN_FUNCTION);
@@ -2807,7 +2800,7 @@ public final class LeanHouse {
         }
 
         private int stages(int mark) {
-            return at(tree.op, mark) == D_FUNCTION ? at(tree.link, mark + 1) : 1;
+            return at(parser.op, mark) == D_FUNCTION ? at(parser.link, mark + 1) : 1;
         }
 
         private void bind(int mark, int place) {
@@ -2884,7 +2877,7 @@ public final class LeanHouse {
         }
 
         private void beginFn(int k) {
-            int inner = at(tree.link, k);
+            int inner = at(parser.link, k);
             int words = scope.holds(inner);
             if (scope.ownMark(inner) >= 0) bind(k - 1, depth);
             add(O_NEED, 2 + words, 0);
@@ -2970,10 +2963,10 @@ public final class LeanHouse {
         }
 
         private void pattern(int kind, int k) {
-            int say = at(tree.says, k);
+            int say = at(parser.says, k);
             switch (kind) {
                 case P_NAME:
-                    int con = at(tree.link, k) - Checker.FOR_CON;
+                    int con = at(parser.link, k) - Checker.FOR_CON;
                     if (con >= 0) test(O_SAME, con * 4 + CONSTANT);
                     else keep(k);
                     break;
@@ -2996,7 +2989,7 @@ public final class LeanHouse {
                     if (say > 1) level--;
                     break;
                 case P_CON:
-                    test(O_CON, (at(tree.link, k) - Checker.FOR_CON) * 8 + HEAD_CON);
+                    test(O_CON, (at(parser.link, k) - Checker.FOR_CON) * 8 + HEAD_CON);
                     break;
                 case P_CONS:
                 case P_ITEM:
@@ -3031,9 +3024,9 @@ public final class LeanHouse {
                     beginFun(k);
                     break;
                 case D_FUNCTION:
-                    function = at(tree.home, k);
+                    function = at(parser.home, k);
                     depth = FRAME;
-                    land(at(tree.place, k));
+                    land(at(parser.places, k));
                     stages();
                     break;
                 case C_CLAUSE:
@@ -3041,7 +3034,7 @@ public final class LeanHouse {
                     break;
                 case C_ARGUMENT:
                     level = 0;
-                    matchArgument(at(tree.says, k));
+                    matchArgument(at(parser.says, k));
                     break;
                 case C_EQUAL:
                     bindAll();
@@ -3067,8 +3060,8 @@ public final class LeanHouse {
             int from = release();
             beginPatterns();
             add(O_MATCH, depth - 1, 0);
-            for (int k = from + 1; k < at(tree.link, from); k++) {
-                int kind = at(tree.op, k);
+            for (int k = from + 1; k < at(parser.link, from); k++) {
+                int kind = at(parser.op, k);
                 if (kind < T_VARIABLE) pattern(kind, k);
             }
             bindAll();
@@ -3086,20 +3079,20 @@ public final class LeanHouse {
             int need = add(O_NEED, 0, 0);
             int words = 0;
             int first = depth;
-            int mark = at(tree.link, k);
-            for (int n = 0; n < tree.size && mark >= 0; n++) {
-                int holding = scope.holds(at(tree.home, mark));
+            int mark = at(parser.link, k);
+            for (int n = 0; n < parser.marks && mark >= 0; n++) {
+                int holding = scope.holds(at(parser.home, mark));
                 words += 2 + holding;
                 bind(mark, depth);
-                put(tree.place, mark, add(O_FUNCTION, 0, holding));
+                put(parser.places, mark, add(O_FUNCTION, 0, holding));
                 depth++;
-                mark = at(tree.link, mark);
+                mark = at(parser.link, mark);
             }
             put(one, need, words);
-            mark = at(tree.link, k);
+            mark = at(parser.link, k);
             for (int place = first; place < depth && mark >= 0; place++) {
-                fill(at(tree.home, mark), place);
-                mark = at(tree.link, mark);
+                fill(at(parser.home, mark), place);
+                mark = at(parser.link, mark);
             }
             beginBodies();
         }
@@ -5354,12 +5347,11 @@ public final class LeanHouse {
 
     public LeanHouse() {
         Lexer lexer = new Lexer(text);
-        Tree tree = new Tree();
         Types types = new Types();
         scope = new Scope(types);
-        parser = new Parser(lexer, tree);
-        checker = new Checker(tree, types, scope);
-        coder = new Coder(tree, scope, lexer, memory);
+        parser = new Parser(lexer);
+        checker = new Checker(parser, types, scope);
+        coder = new Coder(parser, scope, lexer, memory);
         machine = new Machine(coder, memory);
         compiler = new Compiler(coder, memory);
         processor = new Processor(memory);
