@@ -311,6 +311,7 @@ public final class LeanHouse {
         int start;
         int meaning;
         int trouble;
+        private int spelled;
 
         Lexer(byte[] text) {
             this.text = text;
@@ -361,7 +362,10 @@ public final class LeanHouse {
             hash &= HEADS - 1;
             int name = at(heads, hash);
             for (int n = 0; n < NAMES_MOST && name >= 0; n++) {
-                if (sameAsScratch(name, size)) return name;
+                int from = at(nameAt, name);
+                int same = 0;
+                while (same < size && byteIn(pool, from + same) == byteIn(scratch, same)) same++;
+                if (same == size && at(nameSize, name) == size) return name;
                 name = at(nexts, name);
             }
             name = names++;
@@ -374,17 +378,8 @@ public final class LeanHouse {
             return name;
         }
 
-        private boolean sameAsScratch(int name, int size) {
-            if (at(nameSize, name) != size) return false;
-            int from = at(nameAt, name);
-            for (int k = 0; k < size; k++) {
-                if (byteIn(pool, from + k) != byteIn(scratch, k)) return false;
-            }
-            return true;
-        }
-
         private int peek(int k) {
-            return k >= 0 && k < textSize ? byteIn(text, k) : NONE;
+            return k >= 0 && k < textSize && k < text.length ? text[k] & 255 : NONE;
         }
 
         private static boolean isLetter(int b) {
@@ -396,7 +391,7 @@ public final class LeanHouse {
         }
 
         private static boolean isNamePart(int b) {
-            return isLetter(b) || isDigit(b) || b == '_' || b == '\'';
+            return b >= 'a' && b <= 'z' || b >= 'A' && b <= 'Z' || b >= '0' && b <= '9' || b == '_' || b == '\'';
         }
 
         /** Comes to the next token; a fault is left in trouble, with its place in start. */
@@ -410,44 +405,40 @@ public final class LeanHouse {
                     kind = K_TEXT_END;
                     return;
                 }
-                if (isLetter(b)) word();
+                spelled = NONE;
+                if (isLetter(b)) word(K_NAME);
                 else if (isDigit(b) || b == '~' && beginsNumber()) number();
-                else if (b == '\'') typeVariable();
+                else if (b == '\'') word(K_VARIABLE);
                 else if (b == '"') string();
                 else symbol(b);
+                if (spelled >= 0) meaning = intern(spelled);
+                if (kind == K_NAME && meaning < WORDS_KNOWN) kind = meaning;
                 tokens++;
                 if (trouble == 0 && tokens > TOKENS_MOST) trouble = MANY;
             }
             if (trouble != 0) kind = K_STOP;
         }
 
+        /** Blanks and comments; of a comment that is open at the end the place is its begin. */
         private void skipBlanks() {
-            for (int n = 0; n <= TEXT_MOST && trouble == 0; n++) {
-                int b = peek(here);
-                if (b == 9 || b == 10 || b == 32) here++;
-                else if (b == '(' && peek(here + 1) == '*') skipComment();
-                else return;
-            }
-        }
-
-        private void skipComment() {
-            start = here;
             int open = 0;
-            for (int n = 0; n <= TEXT_MOST && here < textSize; n++) {
+            for (int n = 0; n <= TEXT_MOST; n++) {
                 int b = peek(here);
                 int c = peek(here + 1);
                 if (b == '(' && c == '*') {
+                    if (open == 0) start = here;
                     open++;
                     here += 2;
-                } else if (b == '*' && c == ')') {
+                } else if (open > 0 && b == '*' && c == ')') {
                     open--;
                     here += 2;
-                    if (open == 0) return;
-                } else {
+                } else if (b == 9 || b == 10 || b == 32 || open > 0 && b >= 0) {
                     here++;
+                } else {
+                    if (open > 0) trouble = TOKEN;
+                    return;
                 }
             }
-            trouble = TOKEN;
         }
 
         private boolean beginsNumber() {
@@ -455,29 +446,19 @@ public final class LeanHouse {
             return isDigit(peek(here + 1)) && !isNamePart(left) && left != ')';
         }
 
-        /** The name that begins here: its number, or NONE if it is too great. */
-        private int nameHere() {
+        /** A name into the scratch row; a type variable has a sign ahead of it. */
+        private void word(int what) {
+            kind = what;
+            if (what == K_VARIABLE) here++;
             int size = 0;
+            boolean none = !isLetter(peek(here));
             for (int n = 0; n <= TEXT_MOST && isNamePart(peek(here)); n++) {
                 putByte(scratch, size, peek(here));
                 size++;
                 here++;
             }
-            if (size <= NAME_MOST) return intern(size);
-            trouble = TOKEN;
-            return NONE;
-        }
-
-        private void word() {
-            meaning = nameHere();
-            kind = meaning < WORDS_KNOWN ? meaning : K_NAME;
-        }
-
-        private void typeVariable() {
-            here++;
-            kind = K_VARIABLE;
-            if (isLetter(peek(here))) meaning = nameHere();
-            else trouble = TOKEN;
+            if (none || size > NAME_MOST) trouble = TOKEN;
+            else spelled = size;
         }
 
         private void number() {
@@ -504,10 +485,17 @@ public final class LeanHouse {
                 if (b == '"') {
                     here++;
                     kind = K_STRING;
-                    meaning = intern(size);
+                    spelled = size;
                     return;
                 }
-                int meant = b == '\\' ? escaped() : b == 9 || b == 10 || b >= 32 && b <= 126 ? b : NONE;
+                int meant = b == 9 || b == 10 || b >= 32 && b <= 126 ? b : NONE;
+                if (b == '\\') {
+                    here++;
+                    int c = peek(here);
+                    int code = codeHere();
+                    meant = c == 'n' ? 10 : c == 't' ? 9 : c == '\\' || c == '"' ? c : code;
+                    if (meant == code) here += 2;
+                }
                 here++;
                 if (meant < 0 || size >= STRING_MOST) break;
                 putByte(scratch, size, meant);
@@ -516,18 +504,15 @@ public final class LeanHouse {
             trouble = TOKEN;
         }
 
-        /** What the escape that begins here means, or NONE; goes to its last byte. */
-        private int escaped() {
-            here++;
-            int b = peek(here);
-            if (b == 'n') return 10;
-            if (b == 't') return 9;
-            if (b == '\\' || b == '"') return b;
-            int c = peek(here + 1);
-            int d = peek(here + 2);
-            if (!isDigit(b) || !isDigit(c) || !isDigit(d)) return NONE;
-            here += 2;
-            int sum = (b - '0') * 100 + (c - '0') * 10 + (d - '0');
+        /** What three digits here mean, or NONE. */
+        private int codeHere() {
+            int sum = 0;
+            for (int k = 0; k < 3; k++) {
+                int where = here + k;
+                int b = where >= 0 && where < textSize && where < text.length ? text[where] : NONE;
+                if (b < '0' || b > '9') return NONE;
+                sum = sum * 10 + b - '0';
+            }
             return sum <= 255 ? sum : NONE;
         }
 
@@ -589,29 +574,32 @@ public final class LeanHouse {
         private int open;
         private int cons;
         private int types;
-        int fault;
-        int place;
 
         Parser(Lexer lexer) {
             this.lexer = lexer;
         }
 
+        /** Whether the text is a program by its tokens; else the lexer tells the trouble and where it starts. */
         boolean parse(int size) {
             marks = 0;
             waits = 0;
             open = 0;
             cons = 0;
             types = 0;
-            fault = 0;
-            place = NONE;
             lexer.open(size);
-            step();
-            decs(true);
+            lexer.step();
+            for (int n = 0; n <= TOKENS_MOST; n++) {
+                decs(1);
+                if (lexer.kind == W_DATATYPE) datatypeDec();
+                else if (lexer.kind == W_EXCEPTION) exceptionDec();
+                else break;
+                if (lexer.kind == K_SEMI) lexer.step();
+            }
             need(W_IN);
             add(E_LAST, 0, 0);
             exp();
             if (lexer.kind != K_TEXT_END) fail(SYNTAX);
-            return fault == 0;
+            return lexer.trouble == 0;
         }
 
         private int add(int kind, int say, int where) {
@@ -626,25 +614,13 @@ public final class LeanHouse {
             return k;
         }
 
-        private void step() {
-            if (fault != 0) return;
-            lexer.step();
-            if (lexer.trouble != 0) {
-                fault = lexer.trouble;
-                place = lexer.start;
-            }
-        }
-
         private void fail(int what) {
-            if (fault == 0) {
-                fault = what;
-                place = lexer.start;
-            }
+            if (lexer.trouble == 0) lexer.trouble = what;
             lexer.kind = K_STOP;
         }
 
         private void need(int kind) {
-            if (lexer.kind == kind) step();
+            if (lexer.kind == kind) lexer.step();
             else fail(SYNTAX);
         }
 
@@ -675,21 +651,18 @@ public final class LeanHouse {
             return kind == K_VARIABLE || kind == K_NAME || kind == W_REF || kind == K_OPEN;
         }
 
-        private void decs(boolean outermost) {
+        /** Declarations that may stand anywhere; first is 1 for outermost ones. */
+        private void decs(int first) {
             for (int n = 0; n <= TOKENS_MOST; n++) {
-                int kind = lexer.kind;
-                if (kind == W_VAL) valDec(outermost);
-                else if (kind == W_FUN) funDec(outermost);
-                else if (kind == W_DATATYPE && outermost) datatypeDec();
-                else if (kind == W_EXCEPTION && outermost) exceptionDec();
+                if (lexer.kind == W_VAL) valDec(first);
+                else if (lexer.kind == W_FUN) funDec(first);
                 else return;
-                if (lexer.kind == K_SEMI) step();
+                if (lexer.kind == K_SEMI) lexer.step();
             }
         }
 
-        private void valDec(boolean outermost) {
-            int first = outermost ? 1 : 0;
-            step();
+        private void valDec(int first) {
+            lexer.step();
             if (lexer.kind == W_REC) {
                 recDec(first);
                 return;
@@ -704,7 +677,7 @@ public final class LeanHouse {
         }
 
         private void recDec(int first) {
-            step();
+            lexer.step();
             int dec = add(D_REC, lexer.meaning, lexer.start);
             put(link, dec, first);
             need(K_NAME);
@@ -715,62 +688,52 @@ public final class LeanHouse {
             put(link, add(D_REC_END, first, equal), dec);
         }
 
-        private void funDec(boolean outermost) {
-            int first = outermost ? 1 : 0;
+        /** Each turn is a clause; the word ahead of it tells whether it begins a function. */
+        private void funDec(int first) {
             int dec = add(D_FUN, first, lexer.start);
-            int last = NONE;
+            int fun = dec;
+            int ahead = W_FUN;
             for (int n = 0; n <= TOKENS_MOST; n++) {
-                step();
-                int fun = add(D_FUNCTION, lexer.meaning, lexer.start);
-                put(link, last < 0 ? dec : last, fun);
-                last = fun;
-                for (int m = 0; m <= TOKENS_MOST; m++) {
-                    int equal = clauseHead();
-                    exp();
-                    add(C_END, 0, equal);
-                    if (lexer.kind != K_BAR) break;
-                    step();
+                lexer.step();
+                if (ahead != K_BAR) {
+                    put(link, fun, add(D_FUNCTION, lexer.meaning, lexer.start));
+                    fun = at(link, fun);
                 }
-                put(link, add(D_FUNCTION_END, 0, 0), fun);
-                if (lexer.kind != W_AND) break;
-            }
-            put(link, add(D_FUN_END, first, 0), dec);
-        }
-
-        /** NAME, ATPATs and the = of a clause: the place of the =. */
-        private int clauseHead() {
-            int name = lexer.start;
-            int clause = add(C_CLAUSE, lexer.meaning, name);
-            need(K_NAME);
-            int atpats = 0;
-            for (int n = 0; n <= ATPATS_MOST && beginsAtpat(lexer.kind); n++) {
-                if (atpats == ATPATS_MOST) {
-                    fail(MANY);
-                } else {
-                    add(C_ARGUMENT, atpats, 0);
+                int name = lexer.start;
+                int clause = add(C_CLAUSE, lexer.meaning, name);
+                need(K_NAME);
+                int atpats = 0;
+                for (int m = 0; m <= ATPATS_MOST && beginsAtpat(lexer.kind); m++) {
+                    if (m == ATPATS_MOST) fail(MANY);
+                    add(C_ARGUMENT, m, 0);
                     atpat();
-                    add(C_ATPAT, atpats, name);
+                    add(C_ATPAT, m, name);
                     atpats++;
                 }
+                put(link, clause, atpats);
+                if (atpats == 0) fail(SYNTAX);
+                if (lexer.kind == K_COLON) {
+                    lexer.step();
+                    type();
+                    add(C_TYPE, 0, name);
+                }
+                int equal = lexer.start;
+                need(K_EQUAL);
+                add(C_EQUAL, 0, equal);
+                exp();
+                add(C_END, 0, equal);
+                ahead = lexer.kind;
+                if (ahead != K_BAR) put(link, add(D_FUNCTION_END, 0, 0), fun);
+                if (ahead != K_BAR && ahead != W_AND) break;
             }
-            put(link, clause, atpats);
-            if (atpats == 0) fail(SYNTAX);
-            if (lexer.kind == K_COLON) {
-                step();
-                type();
-                add(C_TYPE, 0, name);
-            }
-            int equal = lexer.start;
-            need(K_EQUAL);
-            add(C_EQUAL, 0, equal);
-            return equal;
+            put(link, add(D_FUN_END, first, 0), dec);
         }
 
         private void datatypeDec() {
             int dec = add(D_DATATYPE, 0, lexer.start);
             int last = dec;
             for (int n = 0; n <= TOKENS_MOST; n++) {
-                step();
+                lexer.step();
                 int kind = add(D_TYPE, 0, 0);
                 put(link, last, kind);
                 last = kind;
@@ -781,7 +744,7 @@ public final class LeanHouse {
                 need(K_NAME);
                 if (lexer.kind != K_EQUAL) fail(SYNTAX);
                 for (int m = 0; m <= TOKENS_MOST && (m == 0 ? lexer.kind == K_EQUAL : lexer.kind == K_BAR); m++) {
-                    step();
+                    lexer.step();
                     con(D_CON, D_CON_END);
                 }
                 if (lexer.kind != W_AND) return;
@@ -792,11 +755,11 @@ public final class LeanHouse {
             int variables = 0;
             if (lexer.kind == K_VARIABLE) {
                 add(D_VARIABLE, lexer.meaning, lexer.start);
-                step();
+                lexer.step();
                 variables = 1;
             } else if (lexer.kind == K_OPEN) {
                 for (int n = 0; n <= TOKENS_MOST && (n == 0 || lexer.kind == K_COMMA); n++) {
-                    step();
+                    lexer.step();
                     add(D_VARIABLE, lexer.meaning, lexer.start);
                     need(K_VARIABLE);
                     variables++;
@@ -807,7 +770,7 @@ public final class LeanHouse {
         }
 
         private void exceptionDec() {
-            step();
+            lexer.step();
             con(D_EXCEPTION, D_EXCEPTION_END);
         }
 
@@ -817,7 +780,7 @@ public final class LeanHouse {
             need(K_NAME);
             int argument = 0;
             if (lexer.kind == W_OF) {
-                step();
+                lexer.step();
                 type();
                 argument = 1;
             }
@@ -828,7 +791,7 @@ public final class LeanHouse {
         private void type() {
             product();
             if (lexer.kind == K_ARROW && enter()) {
-                step();
+                lexer.step();
                 type();
                 add(T_ARROW, 0, 0);
                 open--;
@@ -839,7 +802,7 @@ public final class LeanHouse {
             int parts = 1;
             typeAtom();
             for (int n = 0; n <= TOKENS_MOST && lexer.kind == K_STAR; n++) {
-                step();
+                lexer.step();
                 if (parts == FIELDS_MOST && beginsType(lexer.kind)) fail(MANY);
                 typeAtom();
                 parts++;
@@ -849,41 +812,39 @@ public final class LeanHouse {
 
         private void typeAtom() {
             int kind = lexer.kind;
+            int ahead = 1;
             if (kind == K_VARIABLE) {
                 add(T_VARIABLE, lexer.meaning, lexer.start);
-                step();
+                lexer.step();
             } else if (kind == K_NAME || kind == W_REF) {
-                typeName(0);
+                ahead = 0;
             } else if (kind == K_OPEN && enter()) {
                 int parts = 0;
                 for (int n = 0; n <= TOKENS_MOST && (n == 0 || lexer.kind == K_COMMA); n++) {
-                    step();
+                    lexer.step();
                     type();
                     parts++;
                 }
-                need(K_CLOSE);
+                if (lexer.kind == K_CLOSE) lexer.step();
+                else fail(SYNTAX);
                 open--;
-                if (parts > 1) typeName(parts);
+                if (parts > 1 && lexer.kind != K_NAME && lexer.kind != W_REF) fail(SYNTAX);
+                ahead = parts;
             } else {
                 fail(SYNTAX);
             }
-            for (int n = 0; n <= TOKENS_MOST && (lexer.kind == K_NAME || lexer.kind == W_REF); n++) typeName(1);
-        }
-
-        private void typeName(int types) {
-            if (lexer.kind != K_NAME && lexer.kind != W_REF) {
-                fail(SYNTAX);
-                return;
+            for (int n = 0; n <= TOKENS_MOST && (lexer.kind == K_NAME || lexer.kind == W_REF); n++) {
+                put(link, add(T_NAME, lexer.meaning, lexer.start), ahead);
+                lexer.step();
+                ahead = 1;
             }
-            put(link, add(T_NAME, lexer.meaning, lexer.start), types);
-            step();
         }
 
         private void pat() {
             consPat();
             if (lexer.kind == K_COLON) {
                 int colon = lexer.start;
-                step();
+                lexer.step();
                 type();
                 add(P_TYPED, 0, colon);
             }
@@ -896,7 +857,7 @@ public final class LeanHouse {
                 int sign = lexer.start;
                 put(op, mark, P_CONS);
                 add(P_CONS_MID, 0, sign);
-                step();
+                lexer.step();
                 consPat();
                 add(P_CONS_END, 0, sign);
                 open--;
@@ -910,11 +871,11 @@ public final class LeanHouse {
             }
             int name = lexer.meaning;
             int where = lexer.start;
-            step();
+            lexer.step();
             if (lexer.kind == W_AS) {
                 if (!enter()) return;
                 add(P_AS, name, where);
-                step();
+                lexer.step();
                 pat();
                 add(P_AS_END, 0, where);
                 open--;
@@ -932,15 +893,15 @@ public final class LeanHouse {
             switch (lexer.kind) {
                 case K_UNDER:
                     add(P_ANY, 0, where);
-                    step();
+                    lexer.step();
                     break;
                 case K_NAME:
                     add(P_NAME, lexer.meaning, where);
-                    step();
+                    lexer.step();
                     break;
                 case K_NUMBER:
                     add(P_NUMBER, lexer.meaning, where);
-                    step();
+                    lexer.step();
                     break;
                 case K_OPEN:
                     if (enter()) roundPat();
@@ -955,7 +916,7 @@ public final class LeanHouse {
         }
 
         private void roundPat() {
-            step();
+            lexer.step();
             if (lexer.kind == K_CLOSE) {
                 add(P_UNIT, 0, 0);
             } else {
@@ -963,7 +924,7 @@ public final class LeanHouse {
                 pat();
                 int fields = 1;
                 for (int n = 0; n <= TOKENS_MOST && lexer.kind == K_COMMA; n++) {
-                    step();
+                    lexer.step();
                     if (fields == FIELDS_MOST && beginsAtpat(lexer.kind)) fail(MANY);
                     add(P_FIELD, fields, 0);
                     pat();
@@ -978,11 +939,11 @@ public final class LeanHouse {
 
         private void listPat() {
             add(P_LIST, 0, 0);
-            step();
+            lexer.step();
             int items = 0;
             if (lexer.kind != K_LISTED) {
                 for (int n = 0; n <= TOKENS_MOST && (n == 0 || lexer.kind == K_COMMA); n++) {
-                    if (n > 0) step();
+                    if (n > 0) lexer.step();
                     int where = lexer.start;
                     add(P_ITEM, n, where);
                     pat();
@@ -1006,7 +967,7 @@ public final class LeanHouse {
                 exp();
                 add(R_END, n, expAt);
                 if (lexer.kind != K_BAR) return;
-                step();
+                lexer.step();
             }
         }
 
@@ -1033,7 +994,7 @@ public final class LeanHouse {
                     if (lexer.kind == W_HANDLE && enter()) {
                         put(op, mark, E_TRY);
                         add(E_HANDLE, 0, 0);
-                        step();
+                        lexer.step();
                         match();
                         add(E_HANDLE_END, 0, 0);
                         open--;
@@ -1045,7 +1006,7 @@ public final class LeanHouse {
         private void fnExp() {
             if (!enter()) return;
             int mark = add(E_FN, 0, 0);
-            step();
+            lexer.step();
             match();
             put(link, add(E_FN_END, 0, 0), mark);
             open--;
@@ -1053,7 +1014,7 @@ public final class LeanHouse {
 
         private void caseExp() {
             if (!enter()) return;
-            step();
+            lexer.step();
             exp();
             need(W_OF);
             add(E_CASE, 0, 0);
@@ -1065,7 +1026,7 @@ public final class LeanHouse {
         private void ifExp() {
             if (!enter()) return;
             int ifAt = lexer.start;
-            step();
+            lexer.step();
             exp();
             need(W_THEN);
             add(E_THEN, 0, ifAt);
@@ -1082,7 +1043,7 @@ public final class LeanHouse {
             if (!enter()) return;
             int whileAt = lexer.start;
             add(E_WHILE, 0, 0);
-            step();
+            lexer.step();
             exp();
             need(W_DO);
             add(E_DO, 0, whileAt);
@@ -1094,7 +1055,7 @@ public final class LeanHouse {
         private void raiseExp() {
             if (!enter()) return;
             int raiseAt = lexer.start;
-            step();
+            lexer.step();
             exp();
             add(E_RAISE, 0, raiseAt);
             open--;
@@ -1126,7 +1087,7 @@ public final class LeanHouse {
                 int where = lexer.start;
                 settle(base, kind);
                 if (kind == K_COLON) {
-                    step();
+                    lexer.step();
                     type();
                     add(E_TYPED, 0, where);
                 } else {
@@ -1136,7 +1097,7 @@ public final class LeanHouse {
                     waits++;
                     if (kind == W_ANDALSO) add(E_AND_MID, 0, where);
                     if (kind == W_ORELSE) add(E_OR_MID, 0, where);
-                    step();
+                    lexer.step();
                     boolean wide = kind == W_ANDALSO || kind == W_ORELSE || kind == K_ASSIGN;
                     if (wide && beginsWide(lexer.kind)) exp();
                     else operand();
@@ -1186,11 +1147,11 @@ public final class LeanHouse {
             else if (kind == K_NUMBER) add(E_NUMBER, lexer.meaning, where);
             else if (kind == K_STRING) add(E_STRING, lexer.meaning, where);
             else add(E_KNOWN, kind == W_REF ? FUN_REF : kind == K_FETCH ? FUN_FETCH : FUN_NEGATE, where);
-            step();
+            lexer.step();
         }
 
         private void roundExp() {
-            step();
+            lexer.step();
             if (lexer.kind == K_CLOSE) {
                 add(E_UNIT, 0, 0);
             } else {
@@ -1198,7 +1159,7 @@ public final class LeanHouse {
                 if (lexer.kind == K_COMMA) {
                     int fields = 1;
                     for (int n = 0; n <= TOKENS_MOST && lexer.kind == K_COMMA; n++) {
-                        step();
+                        lexer.step();
                         int kind = lexer.kind;
                         if (fields == FIELDS_MOST && (beginsAtom(kind) || beginsWide(kind))) fail(MANY);
                         exp();
@@ -1216,18 +1177,18 @@ public final class LeanHouse {
         private void sequence() {
             for (int n = 0; n <= TOKENS_MOST && lexer.kind == K_SEMI; n++) {
                 add(E_PASSED, 0, 0);
-                step();
+                lexer.step();
                 exp();
             }
             add(E_SEQUENCE, 0, 0);
         }
 
         private void listExp() {
-            step();
+            lexer.step();
             int elements = 0;
             if (lexer.kind != K_LISTED) {
                 for (int n = 0; n <= TOKENS_MOST && (n == 0 || lexer.kind == K_COMMA); n++) {
-                    if (n > 0) step();
+                    if (n > 0) lexer.step();
                     int where = lexer.start;
                     exp();
                     if (n > 0) add(E_ELEMENT, n, where);
@@ -1241,13 +1202,13 @@ public final class LeanHouse {
 
         private void letExp() {
             add(E_LET, 0, 0);
-            step();
-            decs(false);
+            lexer.step();
+            decs(0);
             need(W_IN);
             exp();
             for (int n = 0; n <= TOKENS_MOST && lexer.kind == K_SEMI; n++) {
                 add(E_PASSED, 0, 0);
-                step();
+                lexer.step();
                 exp();
             }
             need(W_END);
@@ -1263,7 +1224,7 @@ public final class LeanHouse {
         static final int GENERALISE = 2;
 
         private static final int NODES = 212992;
-        private static final int KINDS = 64;
+        private static final int KINDS = TYPE_PRODUCT + FIELDS_MOST + 1;
         private static final int VARIABLE = -1;
         private static final int LINKED = -2;
         private static final int GENERAL = 1 << 20;
@@ -1293,11 +1254,11 @@ public final class LeanHouse {
             nodes = 0;
             partsSize = 0;
             level = 0;
-            for (int k = 0; k < KINDS; k++) put(arity, k, 0);
+            for (int k = 0; k < KINDS; k++) put(arity, k, k < TYPE_PRODUCT ? 0 : k - TYPE_PRODUCT);
             put(arity, TYPE_ARROW, 2);
             put(arity, TYPE_LIST, 1);
             put(arity, TYPE_REF, 1);
-            for (int k = 0; k < KINDS_KNOWN; k++) plain(k);
+            for (int k = 0; k < KINDS_KNOWN; k++) put(kind, fresh(0), k);
         }
 
         void setArity(int type, int count) {
@@ -1305,31 +1266,29 @@ public final class LeanHouse {
         }
 
         int arityOf(int type) {
-            return type >= TYPE_PRODUCT ? type - TYPE_PRODUCT : at(arity, type);
-        }
-
-        private int plain(int what) {
-            int n = nodes;
-            if (n >= NODES) return 0;
-            nodes++;
-            put(kind, n, what);
-            put(says, n, 0);
-            put(mark, n, 0);
-            return n;
+            return at(arity, type);
         }
 
         int fresh(int height) {
-            int n = plain(VARIABLE);
+            int n = nodes;
+            if (n >= NODES) return 0;
+            nodes++;
+            put(kind, n, VARIABLE);
             put(says, n, height);
+            put(mark, n, 0);
             return n;
         }
 
         /** A type of the kind with the parts that stand in the row from a place on. */
         int make(int what, int[] from, int first) {
-            int count = arityOf(what);
+            int count = at(arity, what);
+            int n = nodes;
             if (count == 0 && what < KINDS_KNOWN) return what;
-            int n = plain(what);
+            if (n >= NODES) return 0;
+            nodes++;
+            put(kind, n, what);
             put(says, n, partsSize);
+            put(mark, n, 0);
             for (int k = 0; k < count; k++) put(parts, partsSize + k, at(from, first + k));
             partsSize += count;
             return n;
@@ -1400,7 +1359,7 @@ public final class LeanHouse {
         }
 
         private void join(int a, int b) {
-            int count = arityOf(at(kind, a));
+            int count = at(arity, at(kind, a));
             if (count == 0) return;
             int p = at(says, a);
             int q = at(says, b);
@@ -1439,7 +1398,7 @@ public final class LeanHouse {
                 int t = at(turn, depth);
                 int k = t >> 1;
                 int what = at(kind, node);
-                if (what != VARIABLE && k < arityOf(what)) {
+                if (what != VARIABLE && k < at(arity, what)) {
                     put(turn, depth, t + 2);
                     int next = find(at(parts, at(says, node) + k));
                     int seen = at(mark, next);
@@ -1456,21 +1415,15 @@ public final class LeanHouse {
                     continue;
                 }
                 boolean ground = what != VARIABLE && (t & 1) == 0;
-                if (what == VARIABLE && touch(node, how, height)) found = true;
+                if (what == VARIABLE && how != CHECK && at(says, node) > height) {
+                    put(says, node, how == LOWER ? height : GENERAL);
+                    found = true;
+                }
                 put(mark, node, ground ? GROUND : stamp + 1);
                 depth--;
                 if (!ground && depth >= 0) put(turn, depth, at(turn, depth) | 1);
             }
             return how == CHECK || found;
-        }
-
-        /** What a walk does to a variable: whether it is general then. */
-        private boolean touch(int node, int how, int height) {
-            int own = at(says, node);
-            if (how == LOWER && own > height) put(says, node, height);
-            if (how != GENERALISE || own <= height) return false;
-            put(says, node, GENERAL);
-            return true;
         }
 
         /** Writes a type as codes into a row, parts ahead: how many, or NONE if it has too many parts. */
@@ -1484,11 +1437,11 @@ public final class LeanHouse {
                 int node = at(path, depth);
                 int k = at(turn, depth);
                 int what = at(kind, node);
-                if (what != VARIABLE && k < arityOf(what)) {
+                if (what != VARIABLE && k < at(arity, what)) {
                     if (depth + size > PARTS_MOST) return NONE;
                     put(turn, depth, k + 1);
                     depth++;
-                    put(path, depth, part(node, k));
+                    put(path, depth, find(at(parts, at(says, node) + k)));
                     put(turn, depth, 0);
                     continue;
                 }
@@ -1523,7 +1476,7 @@ public final class LeanHouse {
                 } else if (code >= FIRST_NODE) {
                     node = code - FIRST_NODE;
                 } else {
-                    top -= arityOf(code);
+                    top -= at(arity, code);
                     node = make(code, path, top);
                 }
                 put(path, top, node);
@@ -1782,11 +1735,11 @@ public final class LeanHouse {
         /** Which of the words that a function holds is the variable, or NONE. */
         int slotOf(int f, int mark) {
             int slot = 0;
-            int h = firstHeld(f);
+            int h = at(functions, f * FUNCTION_ROW + F_FIRST);
             for (int n = 0; n < HELD && h >= 0; n++) {
-                if (heldMark(h) == mark) return slot;
+                if (at(held, h * 2) == mark) return slot;
                 slot++;
-                h = nextHeld(h);
+                h = at(held, h * 2 + 1);
             }
             return NONE;
         }
@@ -1867,11 +1820,14 @@ public final class LeanHouse {
             stamp = 1;
             for (int k = 0; k < parser.marks && fault == 0; k++) {
                 int op = at(parser.op, k);
-                if (op < E_CASE) plain(op, k);
+                if (op == E_OPERATOR) operator(k);
+                else if (op < E_THEN) plain(op, k);
+                else if (op < E_CASE) branches(op, at(parser.places, k));
                 else if (op < P_MARK) rules(op, k);
                 else if (op < T_VARIABLE) pattern(op, k);
                 else if (op < D_VAL) type(op, k);
-                else if (op < D_DATATYPE || op == C_ARGUMENT) dec(op, k);
+                else if (op < C_CLAUSE) dec(op, k);
+                else if (op < D_DATATYPE) clause(op, k);
                 else outermost(op, k);
             }
             result = at(stack, 0);
@@ -1931,9 +1887,6 @@ public final class LeanHouse {
                 case E_APPLY:
                     apply(where);
                     break;
-                case E_OPERATOR:
-                    operator(say, where);
-                    break;
                 case E_AND:
                 case E_OR:
                     bothSides(TYPE_BOOL, TYPE_BOOL, TYPE_BOOL, where);
@@ -1962,7 +1915,6 @@ public final class LeanHouse {
                     put(flags, top - 1, 0);
                     break;
                 default:
-                    branches(op, where);
                     break;
             }
         }
@@ -2074,12 +2026,13 @@ public final class LeanHouse {
         private void bothSides(int left, int right, int made, int where) {
             int b = pop();
             int a = pop();
-            same(a, left, where);
-            if (fault == 0) same(b, right, where);
+            if (!types.equal(a, left) || !types.equal(b, right)) fail(TYPE, where);
             push(made, 0);
         }
 
-        private void operator(int kind, int where) {
+        private void operator(int k) {
+            int where = at(parser.places, k);
+            int kind = at(parser.says, k);
             switch (kind) {
                 case K_JOIN:
                     bothSides(TYPE_STRING, TYPE_STRING, TYPE_STRING, where);
@@ -2179,19 +2132,20 @@ public final class LeanHouse {
         private void ruleMatched(int type, int where) {
             int matched = at(held, helds - 5);
             if (matched < 0) put(held, helds - 5, type);
-            else same(matched, type, where);
+            else if (!types.equal(matched, type)) fail(TYPE, where);
         }
 
         private void ruleGiven(int type, int where) {
             int given = at(held, helds - 1);
             if (given < 0) put(held, helds - 1, type);
-            else same(given, type, where);
+            else if (!types.equal(given, type)) fail(TYPE, where);
         }
 
-        private void declare(int name, int where, int k) {
+        private void declare(int name, int type, int k) {
+            int where = at(parser.places, k);
             if (scope.standsTwice(name, patFrom)) fail(AGAIN, where);
             else if (scope.visible >= VARIABLES_MOST) fail(MANY, where);
-            scope.addVariable(name, types.fresh(types.level), k);
+            scope.addVariable(name, type, k);
         }
 
         private void pattern(int op, int k) {
@@ -2239,8 +2193,9 @@ public final class LeanHouse {
                     break;
                 case P_AS:
                     if (scope.con(say) >= 0) fail(AGAIN, where);
-                    declare(say, where, k);
-                    push(scope.variableType(scope.top - 1), 0);
+                    int own = types.fresh(types.level);
+                    declare(say, own, k);
+                    push(own, 0);
                     break;
                 case P_AS_END:
                 case P_TYPED:
@@ -2255,9 +2210,10 @@ public final class LeanHouse {
         private void patternName(int name, int where, int k) {
             int con = scope.con(name);
             if (con < 0) {
+                int own = types.fresh(types.level);
                 put(parser.link, k, FOR_VARIABLE);
-                declare(name, where, k);
-                push(scope.variableType(scope.top - 1), 0);
+                declare(name, own, k);
+                push(own, 0);
                 return;
             }
             put(parser.link, k, FOR_CON + con);
@@ -2338,7 +2294,7 @@ public final class LeanHouse {
                     beginDec(at(parser.link, k));
                     patFrom = scope.top;
                     if (scope.con(say) >= 0) fail(AGAIN, where);
-                    declare(say, where, k);
+                    declare(say, types.fresh(types.level), k);
                     break;
                 case D_REC_END:
                     same(scope.variableType(scope.top - 1), pop(), where);
@@ -2361,7 +2317,6 @@ public final class LeanHouse {
                     endFun(at(parser.link, k));
                     break;
                 default:
-                    clause(op, k);
                     break;
             }
         }
@@ -2372,7 +2327,7 @@ public final class LeanHouse {
             int wanted = pop();
             release();
             int first = release();
-            same(wanted, type, where);
+            if (!types.equal(wanted, type)) fail(TYPE, where);
             types.level--;
             scope.turnNames(first);
             scope.visible += scope.top - first;
@@ -2393,14 +2348,12 @@ public final class LeanHouse {
             int k = at(parser.link, dec);
             for (int n = 0; n < parser.marks && k >= 0; n++) {
                 int name = at(parser.says, k);
-                int where = at(parser.places, k);
-                if (scope.con(name) >= 0) fail(AGAIN, where);
-                declare(name, where, k);
+                if (scope.con(name) >= 0) fail(AGAIN, at(parser.places, k));
                 put(parser.home, k, scope.beginFunction(k));
                 int type = types.fresh(types.level);
                 int atpats = at(parser.link, k + 1);
                 for (int a = 0; a < atpats; a++) type = types.arrow(types.fresh(types.level), type);
-                same(scope.variableType(scope.top - 1), type, where);
+                declare(name, type, k);
                 k = at(parser.link, k);
             }
         }
@@ -5327,6 +5280,7 @@ public final class LeanHouse {
     private final byte[] text = new byte[TEXT_MOST];
     private final int[] memory = new int[MEMORY];
     private final int[] counts = new int[5];
+    private final Lexer lexer;
     private final Parser parser;
     private final Checker checker;
     private final Scope scope;
@@ -5346,7 +5300,7 @@ public final class LeanHouse {
     private boolean isProgram;
 
     public LeanHouse() {
-        Lexer lexer = new Lexer(text);
+        lexer = new Lexer(text);
         Types types = new Types();
         scope = new Scope(types);
         parser = new Parser(lexer);
@@ -5391,8 +5345,8 @@ public final class LeanHouse {
         foundFault = 0;
         foundPlace = NONE;
         if (!parser.parse(size)) {
-            foundFault = parser.fault;
-            foundPlace = parser.place;
+            foundFault = lexer.trouble;
+            foundPlace = lexer.start;
         } else if (!checker.check()) {
             foundFault = checker.fault;
             foundPlace = checker.place;
