@@ -1228,7 +1228,7 @@ public final class LeanHouse {
         private static final int VARIABLE = -1;
         private static final int LINKED = -2;
         private static final int GENERAL = 1 << 20;
-        private static final int GROUND = Integer.MAX_VALUE;
+        private static final int GROUND = 0x7fffffff;
         // A scheme is a row of codes: what is below FIRST_NODE is a kind, then nodes, then general variables.
         private static final int FIRST_NODE = 256;
         private static final int FIRST_GENERAL = FIRST_NODE + NODES;
@@ -2495,13 +2495,14 @@ public final class LeanHouse {
     private static final int O_THROW = 21;
     private static final int O_STEP = 22;
     private static final int O_END = 23;
-    private static final int O_MATCH = 24;
-    private static final int O_MATCH_HELD = 25;
-    private static final int O_FIELD = 26;
-    private static final int O_CON = 27;
-    private static final int O_SAME = 28;
-    private static final int O_KEEP = 29;
-    private static final int O_BIND = 30;
+    private static final int O_JOIN = 24;
+    private static final int O_MATCH = 25;
+    private static final int O_MATCH_HELD = 26;
+    private static final int O_FIELD = 27;
+    private static final int O_CON = 28;
+    private static final int O_SAME = 29;
+    private static final int O_KEEP = 30;
+    private static final int O_BIND = 31;
 
     /** Marks into orders: every place on the pile is known ahead, counted from the function's word. */
     private static final class Coder {
@@ -2639,8 +2640,7 @@ public final class LeanHouse {
                     depth--;
                     break;
                 case E_OPERATOR:
-                    if (say == K_CONS) add(O_CONS, 0, 0);
-                    else add(O_OPERATOR, say, 0);
+                    add(say == K_CONS ? O_CONS : say == K_JOIN ? O_JOIN : O_OPERATOR, say, 0);
                     depth--;
                     break;
                 case E_TUPLE:
@@ -2748,11 +2748,11 @@ public final class LeanHouse {
         /** Where a variable is: a place of the frame, or below 0 the words that the function holds. */
         private int source(int mark) {
             if (at(owner, mark) == function) return at(where, mark);
-            if (scope.ownMark(function) == mark) return stages(mark) > 1 ? ~scope.holds(function) : 0;
+            if (scope.ownMark(function) == mark) return stagesOf(mark) > 1 ? ~scope.holds(function) : 0;
             return ~scope.slotOf(function, mark);
         }
 
-        private int stages(int mark) {
+        private int stagesOf(int mark) {
             return at(parser.op, mark) == D_FUNCTION ? at(parser.link, mark + 1) : 1;
         }
 
@@ -3054,7 +3054,7 @@ public final class LeanHouse {
         private void stages() {
             int holding = scope.holds(function);
             int self = scope.holdsItself(function) ? 1 : 0;
-            int last = stages(scope.ownMark(function)) - 1;
+            int last = stagesOf(scope.ownMark(function)) - 1;
             for (int n = 0; n < last; n++) {
                 int before = holding + self + n;
                 add(O_NEED, before + 3, 0);
@@ -3069,7 +3069,7 @@ public final class LeanHouse {
         }
 
         private void matchArgument(int number) {
-            int last = stages(scope.ownMark(function)) - 1;
+            int last = stagesOf(scope.ownMark(function)) - 1;
             int self = scope.holdsItself(function) ? 1 : 0;
             if (number == last) add(O_MATCH, 1, 0);
             else add(O_MATCH_HELD, scope.holds(function) + self + number, 0);
@@ -3093,22 +3093,20 @@ public final class LeanHouse {
         private int tries;
         private int made;
         private int stepsMost;
-        int ending;
-        int value;
-        int steps;
-        int collections;
-        int pileMost;
+        private int called;
+        private int ending;
+        private int value;
+        private int steps;
+        private int collections;
+        private int pileMost;
 
         Machine(Coder coder, int[] memory) {
             this.coder = coder;
             this.memory = memory;
         }
 
-        int used() {
-            return free - space;
-        }
-
-        int go(int mostSteps, int heapWords) {
+        /** Runs the orders: how it ends; what is seen of it, and its value, go into the counts. */
+        int go(int mostSteps, int heapWords, int[] counts) {
             stepsMost = mostSteps;
             heap = heapWords;
             space = HEAP_A;
@@ -3123,15 +3121,26 @@ public final class LeanHouse {
             collections = 0;
             value = UNIT_WORD;
             ending = NOT_ENDED;
+            called = 0;
             put(memory, CELL_OUT, 0);
             for (long n = 0; n < TURNS_MOST && ending < 0; n++) {
                 int k = next;
                 int order = at(coder.op, k);
                 next++;
-                if (order >= O_MATCH) match(order, at(coder.one, k), at(coder.two, k));
-                else if (order >= O_JUMP) control(order, at(coder.one, k), at(coder.two, k));
-                else simple(order, at(coder.one, k));
+                int say = at(coder.one, k);
+                if (order >= O_MATCH) match(order, say, at(coder.two, k));
+                else if (order == O_APPLY) apply(say != 0);
+                else if (order >= O_TRY) trouble(order, say);
+                else if (order >= O_JUMP) control(order, say, at(coder.two, k));
+                else simple(order, say);
+                if (called != 0) known();
             }
+            put(counts, 0, steps);
+            put(counts, 1, collections);
+            put(counts, 2, free - space);
+            put(counts, 3, pileMost - PILE_BASE);
+            put(counts, 4, at(memory, CELL_OUT));
+            put(counts, 5, value);
             return ending;
         }
 
@@ -3221,9 +3230,6 @@ public final class LeanHouse {
                     if (by == 0) raise(CON_DIV * 4 + CONSTANT);
                     else replace(2, (kind == W_DIV ? Math.floorDiv(a >> 1, by) : Math.floorMod(a >> 1, by)) * 2 + 1);
                     break;
-                case K_JOIN:
-                    join();
-                    break;
                 case K_ASSIGN:
                     put(memory, (a >> 2) + 1, b);
                     replace(2, UNIT_WORD);
@@ -3248,19 +3254,14 @@ public final class LeanHouse {
         private void join() {
             int left = at(memory, top(2) >> 2) >> 3;
             int right = at(memory, top(1) >> 2) >> 3;
-            int to = needString(left + right);
+            int to = need(1 + (left + right + 3 >> 2));
             if (to < 0) return;
+            put(memory, to, (left + right) * 8 + HEAD_STRING);
             int a = top(2) >> 2;
             int b = top(1) >> 2;
             for (int k = 0; k < left; k++) setByte(to, k, byteOf(a, k));
             for (int k = 0; k < right; k++) setByte(to, left + k, byteOf(b, k));
             replace(2, to * 4);
-        }
-
-        private int needString(int bytes) {
-            int to = need(1 + (bytes + 3 >> 2));
-            if (to >= 0) put(memory, to, bytes * 8 + HEAD_STRING);
-            return to;
         }
 
         private int byteOf(int string, int k) {
@@ -3288,9 +3289,6 @@ public final class LeanHouse {
                 case O_SLIDE:
                     replace(say + 1, top(1));
                     break;
-                case O_APPLY:
-                    apply(say != 0);
-                    break;
                 case O_RETURN:
                     int result = top(1);
                     next = at(memory, frame + 2) >> 1;
@@ -3317,7 +3315,6 @@ public final class LeanHouse {
                     for (int k = 0; k < say; k++) put(memory, other + k, at(memory, own + k));
                     break;
                 default:
-                    trouble(order, say);
                     break;
             }
         }
@@ -3342,6 +3339,9 @@ public final class LeanHouse {
                     break;
                 case O_STEP:
                     step();
+                    break;
+                case O_JOIN:
+                    join();
                     break;
                 default:
                     value = top(1);
@@ -3404,7 +3404,7 @@ public final class LeanHouse {
             if (ending >= 0) return;
             int function = top(2);
             if ((function & 3) != 0) {
-                known(function, top(1));
+                called = function;
                 return;
             }
             int code = at(memory, (function >> 2) + 1) >> 1;
@@ -3420,7 +3420,11 @@ public final class LeanHouse {
             next = code;
         }
 
-        private void known(int function, int argument) {
+        /** What is known ahead, or a constructor, does its work in one. */
+        private void known() {
+            int function = called;
+            int argument = top(1);
+            called = 0;
             if ((function & CLASS_MASK) == (CON_FUNCTION & CLASS_MASK)) {
                 box((function & ~CLASS_MASK) >> 2);
                 return;
@@ -3467,8 +3471,9 @@ public final class LeanHouse {
             switch (function) {
                 case FUN_STR:
                     int digits = write(number);
-                    int to = needString(digits);
+                    int to = need(1 + (digits + 3 >> 2));
                     if (to < 0) return;
+                    put(memory, to, digits * 8 + HEAD_STRING);
                     for (int k = 0; k < digits; k++) setByte(to, k, byteIn(figures, digits - 1 - k));
                     replace(2, to * 4);
                     break;
@@ -3477,8 +3482,9 @@ public final class LeanHouse {
                         raise(CON_CHR * 4 + CONSTANT);
                         return;
                     }
-                    int one = needString(1);
+                    int one = need(2);
                     if (one < 0) return;
+                    put(memory, one, 8 + HEAD_STRING);
                     setByte(one, 0, number);
                     replace(2, one * 4);
                     break;
@@ -3666,7 +3672,7 @@ public final class LeanHouse {
             blockStart = WORDS;
             loading = 0;
             fixes = 0;
-            ownLabels = Coder.ORDERS;
+            ownLabels = Library.ROUTINES;
         }
 
         int label() {
@@ -3693,13 +3699,13 @@ public final class LeanHouse {
         }
 
         private void lay(int word) {
-            if (here >= MEMORY) return;
             put(memory, here, word);
-            here++;
+            if (here < MEMORY) here++;
         }
 
         private void slot() {
-            lay(0);
+            put(memory, here, 0);
+            if (here < MEMORY) here++;
             loading = 0;
         }
 
@@ -3713,21 +3719,17 @@ public final class LeanHouse {
             return kind == I_SW || kind == I_SB;
         }
 
-        private static int target(int word) {
-            return word >> 16 & 31;
-        }
-
         /** The register that a word writes, or 0; of a jump and a store none. */
         private static int written(int word) {
             int kind = word >>> 26;
             if (kind == 0) return word >> 11 & 31;
-            return isStore(word) ? 0 : target(word);
+            return kind == I_SW || kind == I_SB ? 0 : word >> 16 & 31;
         }
 
         private static boolean touches(int word, int register) {
             int kind = word >>> 26;
             if (kind == I_J || kind == I_JAL) return false;
-            return (word >> 21 & 31) == register || target(word) == register || kind == 0 && (word >> 11 & 31) == register;
+            return (word >> 21 & 31) == register || (word >> 16 & 31) == register || kind == 0 && (word >> 11 & 31) == register;
         }
 
         private void emit(int word) {
@@ -3742,7 +3744,7 @@ public final class LeanHouse {
                 }
             }
             lay(word);
-            loading = isLoad(word) ? target(word) : 0;
+            loading = isLoad(word) ? word >> 16 & 31 : 0;
             if (how != FILLING && loading != 0) slot();
         }
 
@@ -3751,10 +3753,10 @@ public final class LeanHouse {
             if (here - 2 < blockStart) return false;
             int load = at(memory, here - 1);
             int word = at(memory, here - 2);
-            if (word == 0 || isLoad(word) || isStore(word) || touches(word, target(load))) return false;
+            if (word == 0 || isLoad(word) || isStore(word) || touches(word, load >> 16 & 31)) return false;
             if (written(word) == (load >> 21 & 31)) return false;
             int ahead = here - 3 >= blockStart ? at(memory, here - 3) : 0;
-            return !isLoad(ahead) || !touches(load, target(ahead));
+            return !isLoad(ahead) || !touches(load, ahead >> 16 & 31);
         }
 
         /** A jump or branch with its slot. */
@@ -3783,7 +3785,7 @@ public final class LeanHouse {
             if (own != 0 && touches(word, own)) return false;
             if (word >>> 26 == I_JAL && touches(last, RA)) return false;
             int ahead = here - 2 >= blockStart ? at(memory, here - 2) : 0;
-            return !isLoad(ahead) || !touches(word, target(ahead));
+            return !isLoad(ahead) || !touches(word, ahead >> 16 & 31);
         }
 
         void three(int function, int to, int a, int b) {
@@ -3799,29 +3801,29 @@ public final class LeanHouse {
         }
 
         void lw(int to, int offset, int base) {
-            immediate(I_LW, to, base, offset);
+            emit(I_LW << 26 | base << 21 | to << 16 | offset & 65535);
         }
 
         void sw(int from, int offset, int base) {
-            immediate(I_SW, from, base, offset);
+            emit(I_SW << 26 | base << 21 | from << 16 | offset & 65535);
         }
 
         void add(int to, int from, int number) {
-            immediate(I_ADDIU, to, from, number);
+            emit(I_ADDIU << 26 | from << 21 | to << 16 | number & 65535);
         }
 
         void move(int to, int from) {
-            three(F_ADDU, to, from, 0);
+            emit(from << 21 | to << 11 | F_ADDU);
         }
 
         /** A number into a register. */
         void set(int to, int number) {
             if (number >= -32768 && number <= 32767) {
-                add(to, 0, number);
+                emit(I_ADDIU << 26 | to << 16 | number & 65535);
                 return;
             }
-            immediate(I_LUI, to, 0, number >>> 16);
-            if ((number & 65535) != 0) immediate(I_ORI, to, to, number);
+            emit(I_LUI << 26 | to << 16 | number >>> 16);
+            if ((number & 65535) != 0) emit(I_ORI << 26 | to << 21 | to << 16 | number & 65535);
         }
 
         /** The address of the words of an order, made odd, into a register. */
@@ -3831,8 +3833,7 @@ public final class LeanHouse {
                 put(fixAt, fixes, here);
                 put(fixTo, fixes, label);
                 fixes++;
-                if (n == 0) immediate(I_LUI, to, 0, 0);
-                else immediate(I_ORI, to, to, 0);
+                emit(n == 0 ? I_LUI << 26 | to << 16 : I_ORI << 26 | to << 21 | to << 16);
             }
             blockStart = here;
         }
@@ -3889,46 +3890,42 @@ public final class LeanHouse {
         private static final int SAVED_SIZE = CELL_SAVED * 4 + 8;
         private static final int FIGURES_END = DIGITS * 4 + 16;
 
+        static final int R_PUSH = Coder.ORDERS + 0;
+        static final int R_NEED = Coder.ORDERS + 1;
+        static final int R_MOVED = Coder.ORDERS + 2;
+        static final int R_COLLECT = Coder.ORDERS + 3;
+        static final int R_LITERAL = Coder.ORDERS + 4;
+        static final int R_TUPLE = Coder.ORDERS + 5;
+        static final int R_CONS = Coder.ORDERS + 6;
+        static final int R_COPY = Coder.ORDERS + 7;
+        static final int R_BIND = Coder.ORDERS + 8;
+        static final int R_NEW_STRING = Coder.ORDERS + 9;
+        static final int R_COPY_STRING = Coder.ORDERS + 10;
+        static final int R_JOIN = Coder.ORDERS + 11;
+        static final int R_FIGURES = Coder.ORDERS + 12;
+        static final int R_DIVIDE = Coder.ORDERS + 13;
+        static final int R_RAISE = Coder.ORDERS + 14;
+        static final int R_OPEN = Coder.ORDERS + 15;
+        static final int R_OPENED = Coder.ORDERS + 16;
+        static final int R_APPLY = Coder.ORDERS + 17;
+        static final int R_APPLY_LAST = Coder.ORDERS + 18;
+        static final int R_GIVE_BACK = Coder.ORDERS + 19;
+        static final int R_KNOWN = Coder.ORDERS + 20;
+        static final int R_RESULT = Coder.ORDERS + 21;
+        static final int R_BOX = Coder.ORDERS + 22;
+        static final int R_OUT = Coder.ORDERS + 23;
+        static final int R_NO_STEPS = Coder.ORDERS + 24;
+        static final int R_FINISH = Coder.ORDERS + 25;
+        static final int R_FUNCTIONS = Coder.ORDERS + 26;
+        static final int ROUTINES = R_FUNCTIONS + FUN_REF + 1;
+
         private final Assembler a;
-        int push;
-        int need;
-        int literal;
-        int tuple;
-        int cons;
-        int divide;
-        int join;
-        int apply;
-        int applyLast;
-        int giveBack;
-        int copy;
-        int open;
-        int opened;
-        int raise;
-        int bind;
-        int noSteps;
-        int finish;
-        private int newString;
-        private int figures;
-        private int result;
 
         Library(Assembler assembler) {
             a = assembler;
         }
 
-        /** All routines; the program's words follow. */
-        void lay() {
-            start();
-            ends();
-            layPush();
-            layNeed();
-            layObjects();
-            layStrings();
-            layDivide();
-            layRaise();
-            layCalls();
-        }
-
-        private void start() {
+        void start() {
             int program = 0;
             a.set(PP, PILE_BASE * 4);
             a.set(FREE, HEAP_A * 4);
@@ -3947,20 +3944,20 @@ public final class LeanHouse {
             a.jump(program);
         }
 
-        private void ends() {
-            noSteps = a.labelHere();
+        void ends() {
+            a.land(R_NO_STEPS);
             a.set(V0, STEPS);
-            finish = a.labelHere();
+            a.land(R_FINISH);
             a.stop();
         }
 
-        private void layPush() {
+        void layPush() {
             int room = a.label();
             int done = a.label();
-            push = a.labelHere();
+            a.land(R_PUSH);
             a.branch(I_BNE, PP, FULL, room);
             a.set(V0, PILE);
-            a.jump(finish);
+            a.jump(R_FINISH);
             a.land(room);
             a.sw(A0, 0, PP);
             a.add(PP, PP, 4);
@@ -3972,31 +3969,29 @@ public final class LeanHouse {
         }
 
         /** So many free bytes (A0): their address in V0. Keeps A0, A1 and T9. */
-        private void layNeed() {
-            int moved = layMoved();
-            int collect = layCollect(moved);
+        void layNeed() {
             int room = a.label();
             int enough = a.label();
             int steps = a.label();
-            need = a.labelHere();
+            a.land(R_NEED);
             a.three(F_SUBU, T0, LIMIT, FREE);
             a.three(F_SLTU, T0, T0, A0);
             a.branch(I_BEQ, T0, 0, room);
             a.branch(I_BNE, LEFT, 0, steps);
-            a.jump(noSteps);
+            a.jump(R_NO_STEPS);
             a.land(steps);
             a.lw(T1, CELL_COLLECTIONS * 4, 0);
             a.add(LEFT, LEFT, -1);
             a.add(T1, T1, 1);
             a.sw(T1, CELL_COLLECTIONS * 4, 0);
             a.move(K1, RA);
-            a.jumpAndLink(collect);
+            a.jumpAndLink(R_COLLECT);
             a.move(RA, K1);
             a.three(F_SUBU, T0, LIMIT, FREE);
             a.three(F_SLTU, T0, T0, A0);
             a.branch(I_BEQ, T0, 0, enough);
             a.set(V0, HEAP);
-            a.jump(finish);
+            a.jump(R_FINISH);
             a.land(room);
             a.land(enough);
             a.move(V0, FREE);
@@ -4024,10 +4019,10 @@ public final class LeanHouse {
         }
 
         /** The word for the word in A2 after the collection, into V1. */
-        private int layMoved() {
+        void layMoved() {
             int gone = a.label();
             int copies = a.label();
-            int moved = a.labelHere();
+            a.land(R_MOVED);
             a.immediate(I_ANDI, T0, A2, 3);
             a.move(V1, A2);
             a.branch(I_BNE, T0, 0, gone);
@@ -4050,14 +4045,13 @@ public final class LeanHouse {
             a.sw(V1, 0, A2);
             a.land(gone);
             a.back(RA);
-            return moved;
         }
 
-        private int layCollect(int moved) {
+        void layCollect() {
             int scan = a.label();
             int fields = a.label();
             int done = a.label();
-            int collect = a.labelHere();
+            a.land(R_COLLECT);
             a.move(K0, RA);
             a.lw(T0, CELL_SPACE * 4, 0);
             a.lw(T1, CELL_OTHER * 4, 0);
@@ -4071,7 +4065,7 @@ public final class LeanHouse {
             int words = a.labelHere();
             a.branch(I_BEQ, T7, PP, scan);
             a.lw(A2, 0, T7);
-            a.jumpAndLink(moved);
+            a.jumpAndLink(R_MOVED);
             a.sw(V1, 0, T7);
             a.add(T7, T7, 4);
             a.jump(words);
@@ -4089,13 +4083,12 @@ public final class LeanHouse {
             a.land(fields);
             a.branch(I_BEQ, T8, T7, scan);
             a.lw(A2, 0, T8);
-            a.jumpAndLink(moved);
+            a.jumpAndLink(R_MOVED);
             a.sw(V1, 0, T8);
             a.add(T8, T8, 4);
             a.jump(fields);
             a.land(done);
             a.back(K0);
-            return collect;
         }
 
         /** Words from T2 on into those from T3 on, up to T4. */
@@ -4108,25 +4101,25 @@ public final class LeanHouse {
             a.branch(I_BNE, T3, T4, next);
         }
 
-        private void layObjects() {
-            literal = a.labelHere();
+        void layObjects() {
+            a.land(R_LITERAL);
             a.lw(T6, 0, A1);
             a.move(T9, RA);
             size();
             a.move(A0, T5);
-            a.jumpAndLink(need);
+            a.jumpAndLink(R_NEED);
             a.move(T2, A1);
             a.move(T3, V0);
             a.three(F_ADDU, T4, V0, A0);
             copyWords();
             a.move(A0, V0);
             a.move(RA, T9);
-            a.jump(push);
-            tuple = a.labelHere();
+            a.jump(R_PUSH);
+            a.land(R_TUPLE);
             a.move(T9, RA);
             a.shift(F_SLL, A0, A1, 2);
             a.add(A0, A0, 4);
-            a.jumpAndLink(need);
+            a.jumpAndLink(R_NEED);
             a.shift(F_SLL, T0, A1, 3);
             a.add(T0, T0, HEAD_TUPLE);
             a.sw(T0, 0, V0);
@@ -4139,8 +4132,7 @@ public final class LeanHouse {
             a.sw(V0, 0, PP);
             a.add(PP, PP, 4);
             a.back(T9);
-            layCons();
-            copy = a.labelHere();
+            a.land(R_COPY);
             a.lw(T2, 0, FP);
             a.lw(T3, -4, PP);
             a.add(T2, T2, 8);
@@ -4148,22 +4140,22 @@ public final class LeanHouse {
             a.three(F_ADDU, T4, T3, A1);
             copyWords();
             a.back(RA);
-            bind = a.labelHere();
+            a.land(R_BIND);
             a.move(T9, RA);
             a.set(T2, 0);
             int next = a.labelHere();
             a.lw(A0, KEPT * 4, T2);
-            a.jumpAndLink(push);
+            a.jumpAndLink(R_PUSH);
             a.add(T2, T2, 4);
             a.branch(I_BNE, T2, A1, next);
             a.back(T9);
         }
 
-        private void layCons() {
-            cons = a.labelHere();
+        void layCons() {
+            a.land(R_CONS);
             a.move(T9, RA);
             a.set(A0, 20);
-            a.jumpAndLink(need);
+            a.jumpAndLink(R_NEED);
             a.set(T0, 2 * 8 + HEAD_TUPLE);
             a.lw(T1, -8, PP);
             a.lw(T2, -4, PP);
@@ -4179,15 +4171,15 @@ public final class LeanHouse {
             a.back(T9);
         }
 
-        private void layStrings() {
-            newString = a.labelHere();
+        void layStrings() {
+            a.land(R_NEW_STRING);
             a.sw(RA, SAVED_RETURN, 0);
             a.sw(T3, SAVED_SIZE, 0);
             a.add(A0, T3, 3);
             a.shift(F_SRL, A0, A0, 2);
             a.shift(F_SLL, A0, A0, 2);
             a.add(A0, A0, 4);
-            a.jumpAndLink(need);
+            a.jumpAndLink(R_NEED);
             a.lw(T3, SAVED_SIZE, 0);
             a.lw(RA, SAVED_RETURN, 0);
             a.shift(F_SLL, T0, T3, 3);
@@ -4195,7 +4187,7 @@ public final class LeanHouse {
             a.sw(T0, 0, V0);
             a.back(RA);
             int copied = a.label();
-            int copyString = a.labelHere();
+            a.land(R_COPY_STRING);
             a.lw(T1, 0, T0);
             a.add(T0, T0, 4);
             a.shift(F_SRL, T1, T1, 3);
@@ -4209,7 +4201,7 @@ public final class LeanHouse {
             a.jump(next);
             a.land(copied);
             a.back(RA);
-            join = a.labelHere();
+            a.land(R_JOIN);
             a.move(T9, RA);
             a.lw(T0, -8, PP);
             a.lw(T1, -4, PP);
@@ -4218,23 +4210,22 @@ public final class LeanHouse {
             a.shift(F_SRL, T0, T0, 3);
             a.shift(F_SRL, T1, T1, 3);
             a.three(F_ADDU, T3, T0, T1);
-            a.jumpAndLink(newString);
+            a.jumpAndLink(R_NEW_STRING);
             a.lw(T0, -8, PP);
             a.add(T4, V0, 4);
-            a.jumpAndLink(copyString);
+            a.jumpAndLink(R_COPY_STRING);
             a.lw(T0, -4, PP);
-            a.jumpAndLink(copyString);
+            a.jumpAndLink(R_COPY_STRING);
             a.add(PP, PP, -4);
             a.sw(V0, -4, PP);
             a.back(T9);
-            layFigures();
         }
 
         /** The figures of the number in A1: they begin at T1 and end ahead of T2. */
-        private void layFigures() {
+        void layFigures() {
             int above = a.label();
             int done = a.label();
-            figures = a.labelHere();
+            a.land(R_FIGURES);
             a.shift(F_SRA, T0, A1, 1);
             a.move(T3, T0);
             a.branchNotBelow(T0, above);
@@ -4260,12 +4251,11 @@ public final class LeanHouse {
         }
 
         /** div (A1 0) and mod (A1 1), rounded down. */
-        private void layDivide() {
+        void layDivide() {
             int byZero = a.label();
             int exact = a.label();
             int quotient = a.label();
-            raise = a.label();
-            divide = a.labelHere();
+            a.land(R_DIVIDE);
             a.lw(T0, -8, PP);
             a.lw(T1, -4, PP);
             a.shift(F_SRA, T0, T0, 1);
@@ -4290,16 +4280,16 @@ public final class LeanHouse {
             a.back(RA);
             a.land(byZero);
             a.set(A0, CON_DIV * 4 + CONSTANT);
-            a.jump(raise);
+            a.jump(R_RAISE);
         }
 
-        private void layRaise() {
+        void layRaise() {
             int handled = a.label();
-            a.land(raise);
+            a.land(R_RAISE);
             a.branch(I_BNE, TRIES, 0, handled);
             a.move(V1, A0);
             a.set(V0, RAISED);
-            a.jump(finish);
+            a.jump(R_FINISH);
             a.land(handled);
             a.move(PP, TRIES);
             a.lw(T0, 0, PP);
@@ -4311,17 +4301,17 @@ public final class LeanHouse {
             a.add(T1, T1, -1);
             a.add(FP, T2, -1);
             a.back(T1);
-            open = a.labelHere();
+            a.land(R_OPEN);
             a.move(T9, RA);
             a.add(A0, TRIES, 1);
-            a.jumpAndLink(push);
+            a.jumpAndLink(R_PUSH);
             a.move(A0, A1);
-            a.jumpAndLink(push);
+            a.jumpAndLink(R_PUSH);
             a.add(A0, FP, 1);
-            a.jumpAndLink(push);
+            a.jumpAndLink(R_PUSH);
             a.add(TRIES, PP, -12);
             a.back(T9);
-            opened = a.labelHere();
+            a.land(R_OPENED);
             a.lw(T0, -16, PP);
             a.lw(T1, -4, PP);
             a.add(TRIES, T0, -1);
@@ -4330,37 +4320,36 @@ public final class LeanHouse {
             a.back(RA);
         }
 
-        private void layCalls() {
-            int known = a.label();
+        void layCalls() {
             int object = a.label();
             int objectLast = a.label();
-            apply = a.labelHere();
+            a.land(R_APPLY);
             step();
             a.lw(T0, -8, PP);
             a.immediate(I_ANDI, T1, T0, 3);
             a.branch(I_BEQ, T1, 0, object);
-            a.jump(known);
+            a.jump(R_KNOWN);
             a.land(object);
             a.add(A0, RA, 1);
-            a.jumpAndLink(push);
+            a.jumpAndLink(R_PUSH);
             a.add(A0, FP, 1);
-            a.jumpAndLink(push);
+            a.jumpAndLink(R_PUSH);
             a.lw(T0, -16, PP);
             a.add(FP, PP, -16);
             enterObject();
-            applyLast = a.labelHere();
+            a.land(R_APPLY_LAST);
             step();
             a.lw(T0, -8, PP);
             a.immediate(I_ANDI, T1, T0, 3);
             a.branch(I_BEQ, T1, 0, objectLast);
-            a.jump(known);
+            a.jump(R_KNOWN);
             a.land(objectLast);
             a.lw(T2, -4, PP);
             a.sw(T0, 0, FP);
             a.sw(T2, 4, FP);
             a.add(PP, FP, 16);
             enterObject();
-            giveBack = a.labelHere();
+            a.land(R_GIVE_BACK);
             a.lw(T0, -4, PP);
             a.lw(T1, 8, FP);
             a.lw(T2, 12, FP);
@@ -4369,12 +4358,11 @@ public final class LeanHouse {
             a.add(T1, T1, -1);
             a.add(FP, T2, -1);
             a.back(T1);
-            layKnown(known);
         }
 
         void step() {
             a.over(I_BNE, LEFT, 0);
-            a.jump(noSteps);
+            a.jump(R_NO_STEPS);
             a.add(LEFT, LEFT, -1);
         }
 
@@ -4385,17 +4373,14 @@ public final class LeanHouse {
         }
 
         /** What is known ahead: the argument in A1, where to go on in T9, the value into A0. */
-        private void layKnown(int known) {
+        void layKnown() {
             int table = a.labelHere();
-            int first = a.label();
-            for (int k = 1; k <= FUN_REF; k++) a.label();
-            for (int k = 0; k <= FUN_REF; k++) a.jump(first + k);
-            result = a.labelHere();
+            for (int k = 0; k <= FUN_REF; k++) a.jump(R_FUNCTIONS + k);
+            a.land(R_RESULT);
             a.sw(A0, -8, PP);
             a.add(PP, PP, -4);
             a.back(T9);
-            int box = layBox();
-            a.land(known);
+            a.land(R_KNOWN);
             int function = a.label();
             a.move(T9, RA);
             a.lw(A1, -4, PP);
@@ -4404,25 +4389,22 @@ public final class LeanHouse {
             a.immediate(I_ANDI, T3, T0, 4095);
             a.shift(F_SRL, T3, T3, 2);
             a.branch(I_BNE, T1, T2, function);
-            a.jump(box);
+            a.jump(R_BOX);
             a.land(function);
             a.set(T2, a.addressOf(table));
             a.shift(F_SLL, T3, T3, 3);
             a.three(F_ADDU, T2, T2, T3);
             a.back(T2);
-            a.land(first + FUN_REF);
+            a.land(R_FUNCTIONS + FUN_REF);
             a.set(T3, REF_CON);
-            a.jump(box);
-            layPlain(first);
-            layOutput(first);
-            layPartial(first);
+            a.jump(R_BOX);
         }
 
-        private int layBox() {
-            int box = a.labelHere();
+        void layBox() {
+            a.land(R_BOX);
             a.sw(T3, SAVED, 0);
             a.set(A0, 8);
-            a.jumpAndLink(need);
+            a.jumpAndLink(R_NEED);
             a.lw(T3, SAVED, 0);
             a.lw(T0, -4, PP);
             a.shift(F_SLL, T3, T3, 3);
@@ -4430,37 +4412,36 @@ public final class LeanHouse {
             a.sw(T3, 0, V0);
             a.sw(T0, 4, V0);
             a.move(A0, V0);
-            a.jump(result);
-            return box;
+            a.jump(R_RESULT);
         }
 
-        private void layPlain(int first) {
-            a.land(first + FUN_NEGATE);
+        void layPlain() {
+            a.land(R_FUNCTIONS + FUN_NEGATE);
             a.set(T0, 2);
             a.three(F_SUBU, A0, T0, A1);
-            a.jump(result);
-            a.land(first + FUN_FETCH);
+            a.jump(R_RESULT);
+            a.land(R_FUNCTIONS + FUN_FETCH);
             a.lw(A0, 4, A1);
-            a.jump(result);
-            a.land(first + FUN_NOT);
+            a.jump(R_RESULT);
+            a.land(R_FUNCTIONS + FUN_NOT);
             a.set(T0, TRUE_WORD + FALSE_WORD);
             a.three(F_SUBU, A0, T0, A1);
-            a.jump(result);
-            a.land(first + FUN_SIZE);
+            a.jump(R_RESULT);
+            a.land(R_FUNCTIONS + FUN_SIZE);
             a.lw(T0, 0, A1);
             a.shift(F_SRL, T0, T0, 3);
             a.shift(F_SLL, T0, T0, 1);
             a.add(A0, T0, 1);
-            a.jump(result);
-            a.land(first + FUN_MANY);
+            a.jump(R_RESULT);
+            a.land(R_FUNCTIONS + FUN_MANY);
             a.lw(T0, CELL_INPUTS * 4, 0);
             a.shift(F_SLL, T0, T0, 1);
             a.add(A0, T0, 1);
-            a.jump(result);
+            a.jump(R_RESULT);
         }
 
-        private void layOutput(int first) {
-            int out = a.labelHere();
+        void layOutput() {
+            a.land(R_OUT);
             int kept = a.label();
             a.lw(T5, CELL_OUT * 4, 0);
             a.immediate(I_SLTIU, T6, T5, KEPT_MOST);
@@ -4471,7 +4452,7 @@ public final class LeanHouse {
             a.sw(T5, CELL_OUT * 4, 0);
             a.back(RA);
             int put = a.label();
-            a.land(first + FUN_PRINT);
+            a.land(R_FUNCTIONS + FUN_PRINT);
             a.lw(T0, 0, A1);
             a.add(T1, A1, 4);
             a.shift(F_SRL, T0, T0, 3);
@@ -4479,27 +4460,27 @@ public final class LeanHouse {
             int next = a.labelHere();
             a.branch(I_BEQ, T1, T2, put);
             a.immediate(I_LBU, A0, T1, 0);
-            a.jumpAndLink(out);
+            a.jumpAndLink(R_OUT);
             a.add(T1, T1, 1);
             a.jump(next);
-            a.land(first + FUN_PUT);
-            a.jumpAndLink(figures);
+            a.land(R_FUNCTIONS + FUN_PUT);
+            a.jumpAndLink(R_FIGURES);
             a.set(T5, '\n');
             a.immediate(I_SB, T5, T2, 0);
             a.add(T2, T2, 1);
             a.jump(next);
             a.land(put);
             a.set(A0, UNIT_WORD);
-            a.jump(result);
+            a.jump(R_RESULT);
         }
 
-        private void layPartial(int first) {
+        void layPartial() {
             int subscript = a.label();
             int noByte = a.label();
-            a.land(first + FUN_STR);
-            a.jumpAndLink(figures);
+            a.land(R_FUNCTIONS + FUN_STR);
+            a.jumpAndLink(R_FIGURES);
             a.three(F_SUBU, T3, T2, T1);
-            a.jumpAndLink(newString);
+            a.jumpAndLink(R_NEW_STRING);
             a.set(T2, FIGURES_END);
             a.three(F_SUBU, T1, T2, T3);
             a.add(T4, V0, 4);
@@ -4510,19 +4491,19 @@ public final class LeanHouse {
             a.add(T4, T4, 1);
             a.branch(I_BNE, T1, T2, next);
             a.move(A0, V0);
-            a.jump(result);
-            a.land(first + FUN_CHR);
+            a.jump(R_RESULT);
+            a.land(R_FUNCTIONS + FUN_CHR);
             a.shift(F_SRA, T0, A1, 1);
             a.immediate(I_SLTIU, T1, T0, 256);
             a.branch(I_BEQ, T1, 0, noByte);
             a.set(T3, 1);
-            a.jumpAndLink(newString);
+            a.jumpAndLink(R_NEW_STRING);
             a.lw(T0, -4, PP);
             a.move(A0, V0);
             a.shift(F_SRA, T0, T0, 1);
             a.immediate(I_SB, T0, V0, 4);
-            a.jump(result);
-            a.land(first + FUN_SUB);
+            a.jump(R_RESULT);
+            a.land(R_FUNCTIONS + FUN_SUB);
             a.lw(T0, 4, A1);
             a.lw(T1, 8, A1);
             a.lw(T2, 0, T0);
@@ -4534,25 +4515,28 @@ public final class LeanHouse {
             a.immediate(I_LBU, T0, T0, 4);
             a.shift(F_SLL, T0, T0, 1);
             a.add(A0, T0, 1);
-            a.jump(result);
-            layGiven(first + FUN_GIVEN, subscript);
+            a.jump(R_RESULT);
+            a.land(subscript);
+            a.set(A0, CON_SUBSCRIPT * 4 + CONSTANT);
+            a.jump(R_RAISE);
             a.land(noByte);
             a.set(A0, CON_CHR * 4 + CONSTANT);
-            a.jump(raise);
+            a.jump(R_RAISE);
         }
 
-        private void layGiven(int given, int subscript) {
-            a.land(given);
+        void layGiven() {
+            int subscript = a.label();
+            a.land(R_FUNCTIONS + FUN_GIVEN);
             a.lw(T2, CELL_INPUTS * 4, 0);
             a.shift(F_SRA, T1, A1, 1);
             a.three(F_SLTU, T3, T1, T2);
             a.branch(I_BEQ, T3, 0, subscript);
             a.shift(F_SLL, T1, T1, 2);
             a.lw(A0, INPUT * 4, T1);
-            a.jump(result);
+            a.jump(R_RESULT);
             a.land(subscript);
             a.set(A0, CON_SUBSCRIPT * 4 + CONSTANT);
-            a.jump(raise);
+            a.jump(R_RAISE);
         }
     }
 
@@ -4570,14 +4554,35 @@ public final class LeanHouse {
 
         void compile(int how) {
             a.open(how);
-            library.lay();
+            library.start();
+            library.ends();
+            library.layPush();
+            library.layMoved();
+            library.layCollect();
+            library.layNeed();
+            library.layObjects();
+            library.layCons();
+            library.layStrings();
+            library.layFigures();
+            library.layDivide();
+            library.layRaise();
+            library.layCalls();
+            library.layKnown();
+            library.layBox();
+            library.layPlain();
+            library.layOutput();
+            library.layPartial();
+            library.layGiven();
             for (int k = 0; k < coder.size; k++) {
                 a.land(k);
                 int order = at(coder.op, k);
                 int say = at(coder.one, k);
                 int more = at(coder.two, k);
                 if (order >= O_MATCH) match(order, say, more);
-                else if (order >= O_JUMP) control(order, say, more, k);
+                else if (order >= O_TRY) trouble(order, say);
+                else if (order == O_FILL) fill(say, more, k);
+                else if (order >= O_JUMP) control(order, say, more);
+                else if (order == O_OPERATOR) operator(say);
                 else simple(order, say);
             }
             a.close();
@@ -4592,39 +4597,32 @@ public final class LeanHouse {
             switch (order) {
                 case O_CONSTANT:
                     a.set(A0, say);
-                    a.jumpAndLink(library.push);
+                    a.jumpAndLink(Library.R_PUSH);
                     break;
                 case O_LITERAL:
-                    with(say, library.literal);
+                    with(say, Library.R_LITERAL);
                     break;
                 case O_LOCAL:
                     a.lw(A0, say * 4, FP);
-                    a.jumpAndLink(library.push);
+                    a.jumpAndLink(Library.R_PUSH);
                     break;
                 case O_HELD:
                     a.lw(T0, 0, FP);
                     a.lw(A0, 8 + say * 4, T0);
-                    a.jumpAndLink(library.push);
+                    a.jumpAndLink(Library.R_PUSH);
                     break;
                 case O_TUPLE:
-                    with(say, library.tuple);
-                    break;
-                case O_CONS:
-                    a.jumpAndLink(library.cons);
+                    with(say, Library.R_TUPLE);
                     break;
                 default:
-                    operator(say);
+                    a.jumpAndLink(Library.R_CONS);
                     break;
             }
         }
 
         private void operator(int kind) {
             if (kind == W_DIV || kind == W_MOD) {
-                with(kind == W_DIV ? 0 : 1, library.divide);
-                return;
-            }
-            if (kind == K_JOIN) {
-                a.jumpAndLink(library.join);
+                with(kind == W_DIV ? 0 : 1, Library.R_DIVIDE);
                 return;
             }
             a.lw(T0, -8, PP);
@@ -4671,7 +4669,7 @@ public final class LeanHouse {
             a.three(F_SUBU, T2, T3, T2);
         }
 
-        private void control(int order, int say, int more, int k) {
+        private void control(int order, int say, int more) {
             switch (order) {
                 case O_JUMP:
                     a.jump(say);
@@ -4692,14 +4690,14 @@ public final class LeanHouse {
                     a.sw(T0, -4, PP);
                     break;
                 case O_APPLY:
-                    a.jumpAndLink(say != 0 ? library.applyLast : library.apply);
+                    a.jumpAndLink(say != 0 ? Library.R_APPLY_LAST : Library.R_APPLY);
                     break;
                 case O_RETURN:
-                    a.jump(library.giveBack);
+                    a.jump(Library.R_GIVE_BACK);
                     break;
                 case O_NEED:
                     a.set(A0, say * 4);
-                    a.jumpAndLink(library.need);
+                    a.jumpAndLink(Library.R_NEED);
                     break;
                 case O_FUNCTION:
                     a.set(T0, (more + 1) * 8 + HEAD_FUNCTION);
@@ -4708,16 +4706,10 @@ public final class LeanHouse {
                     a.sw(T1, 4, V0);
                     a.move(A0, V0);
                     a.add(V0, V0, 8 + 4 * more);
-                    a.jumpAndLink(library.push);
-                    break;
-                case O_FILL:
-                    fill(say, more, k);
-                    break;
-                case O_COPY:
-                    with(say * 4, library.copy);
+                    a.jumpAndLink(Library.R_PUSH);
                     break;
                 default:
-                    trouble(order, say);
+                    with(say * 4, Library.R_COPY);
                     break;
             }
         }
@@ -4738,26 +4730,29 @@ public final class LeanHouse {
             switch (order) {
                 case O_TRY:
                     a.setCode(A1, say);
-                    a.jumpAndLink(library.open);
+                    a.jumpAndLink(Library.R_OPEN);
                     break;
                 case O_TRIED:
-                    a.jumpAndLink(library.opened);
+                    a.jumpAndLink(Library.R_OPENED);
                     break;
                 case O_RAISE:
                     a.lw(A0, -4, PP);
-                    a.jump(library.raise);
+                    a.jump(Library.R_RAISE);
                     break;
                 case O_THROW:
                     a.set(A0, say);
-                    a.jump(library.raise);
+                    a.jump(Library.R_RAISE);
                     break;
                 case O_STEP:
                     library.step();
                     break;
+                case O_JOIN:
+                    a.jumpAndLink(Library.R_JOIN);
+                    break;
                 default:
                     a.lw(V1, -4, PP);
                     a.set(V0, VALUE);
-                    a.jump(library.finish);
+                    a.jump(Library.R_FINISH);
                     break;
             }
         }
@@ -4802,7 +4797,7 @@ public final class LeanHouse {
                     a.sw(T0, (KEPT + more) * 4, 0);
                     break;
                 default:
-                    with(say * 4, library.bind);
+                    with(say * 4, Library.R_BIND);
                     break;
             }
         }
@@ -4828,13 +4823,11 @@ public final class LeanHouse {
             this.memory = memory;
         }
 
-        int registerOf(int k) {
-            return at(register, k);
-        }
-
-        /** Runs the words from the first one on till they stop it: what they leave in V0. */
-        int go() {
+        /** Runs the words till they stop: how it ends; what is seen of it, and its value, go into the counts. */
+        int go(int steps, int heap, int[] counts) {
             for (int k = 0; k < 32; k++) put(register, k, 0);
+            put(memory, CELL_SIZE, heap * 4);
+            put(memory, CELL_STEPS, steps);
             here = WORDS * 4;
             next = here + 4;
             late = 0;
@@ -4854,6 +4847,12 @@ public final class LeanHouse {
                 here = next;
                 next = after;
             }
+            put(counts, 0, steps - at(register, LEFT));
+            put(counts, 1, at(memory, CELL_COLLECTIONS));
+            put(counts, 2, at(register, FREE) - at(memory, CELL_SPACE) >> 2);
+            put(counts, 3, (at(register, MOST) >> 2) - PILE_BASE);
+            put(counts, 4, at(memory, CELL_OUT));
+            put(counts, 5, at(register, V1));
             return stopped ? at(register, V0) : DIFFERS;
         }
 
@@ -4895,7 +4894,7 @@ public final class LeanHouse {
                     write(to, a < b ? 1 : 0);
                     break;
                 case F_SLTU:
-                    write(to, a + Integer.MIN_VALUE < b + Integer.MIN_VALUE ? 1 : 0);
+                    write(to, a + 0x80000000 < b + 0x80000000 ? 1 : 0);
                     break;
                 case F_MFHI:
                     write(to, high);
@@ -4918,8 +4917,8 @@ public final class LeanHouse {
                 low = a / b;
                 high = a % b;
             } else if (function == F_DIVU && b != 0) {
-                low = Integer.divideUnsigned(a, b);
-                high = Integer.remainderUnsigned(a, b);
+                low = (int) ((a & 0xffffffffL) / (b & 0xffffffffL));
+                high = (int) ((a & 0xffffffffL) % (b & 0xffffffffL));
             }
         }
 
@@ -4932,7 +4931,7 @@ public final class LeanHouse {
                     write(to, a + number);
                     break;
                 case I_SLTIU:
-                    write(to, a + Integer.MIN_VALUE < number + Integer.MIN_VALUE ? 1 : 0);
+                    write(to, a + 0x80000000 < number + 0x80000000 ? 1 : 0);
                     break;
                 case I_ANDI:
                     write(to, a & word & 65535);
@@ -5279,7 +5278,7 @@ public final class LeanHouse {
 
     private final byte[] text = new byte[TEXT_MOST];
     private final int[] memory = new int[MEMORY];
-    private final int[] counts = new int[5];
+    private final int[] counts = new int[6];
     private final Lexer lexer;
     private final Parser parser;
     private final Checker checker;
@@ -5294,7 +5293,6 @@ public final class LeanHouse {
     private int foundFault;
     private int foundPlace;
     private int ending;
-    private int value;
     private int outputKept;
     private int compiled;
     private boolean isProgram;
@@ -5382,33 +5380,15 @@ public final class LeanHouse {
         if (heap < HEAP_LEAST || heap > HEAP_MOST) throw new IllegalArgumentException("no such heap");
         if (!isProgram) throw new IllegalStateException("there is no program");
         put(memory, CELL_INPUTS, inputSize);
-        if (how == 0) interpret(steps, heap);
-        else process(how, steps, heap);
-        put(counts, 4, at(memory, CELL_OUT));
+        if (how == 0) {
+            ending = machine.go(steps, heap, counts);
+        } else {
+            if (compiled != how) compiler.compile(how);
+            compiled = how;
+            ending = processor.go(steps, heap, counts);
+        }
         outputKept = Math.min(KEPT_MOST, at(counts, 4));
         return ending;
-    }
-
-    private void interpret(int steps, int heap) {
-        ending = machine.go(steps, heap);
-        value = machine.value;
-        put(counts, 0, machine.steps);
-        put(counts, 1, machine.collections);
-        put(counts, 2, machine.used());
-        put(counts, 3, machine.pileMost - PILE_BASE);
-    }
-
-    private void process(int how, int steps, int heap) {
-        if (compiled != how) compiler.compile(how);
-        compiled = how;
-        put(memory, CELL_SIZE, heap * 4);
-        put(memory, CELL_STEPS, steps);
-        ending = processor.go();
-        value = processor.registerOf(V1);
-        put(counts, 0, steps - processor.registerOf(LEFT));
-        put(counts, 1, at(memory, CELL_COLLECTIONS));
-        put(counts, 2, (processor.registerOf(FREE) - at(memory, CELL_SPACE)) / 4);
-        put(counts, 3, processor.registerOf(MOST) / 4 - PILE_BASE);
     }
 
     public int seen(int what) throws IndexOutOfBoundsException, IllegalStateException {
@@ -5427,7 +5407,7 @@ public final class LeanHouse {
         if (!isProgram) throw new IllegalStateException("there is no program");
         if (what == 0) return writer.writeType(checker.result);
         if (ending != VALUE && ending != RAISED) throw new IllegalStateException("there is no value");
-        return writer.writeValue(value);
+        return writer.writeValue(at(counts, 5));
     }
 
     public int resultAt(int k) throws IndexOutOfBoundsException {
