@@ -1233,12 +1233,12 @@ public final class LeanHouse {
         private static final int FIRST_NODE = 256;
         private static final int FIRST_GENERAL = FIRST_NODE + NODES;
 
+        final int[] left = new int[NODES];
+        final int[] right = new int[NODES];
         private final int[] kind = new int[NODES];
         private final int[] says = new int[NODES];
         private final int[] parts = new int[NODES];
         private final int[] mark = new int[NODES];
-        private final int[] left = new int[NODES];
-        private final int[] right = new int[NODES];
         private final int[] path = new int[NODES];
         private final int[] turn = new int[NODES];
         private final int[] arity = new int[KINDS];
@@ -4998,16 +4998,14 @@ public final class LeanHouse {
 
     /** Writes types and values as bytes of the RESULT. */
     private static final class Writer {
-        private static final int ITEMS = 425984;
+        private static final int TURNS_MOST = 1000000;
         private static final int VARIABLES = 2048;
         private static final int PLAIN = 0;
         private static final int LEFT_OF_ARROW = 1;
         private static final int PART = 2;
-        private static final int NESTS = 3;
-        // What waits is a type and where it stands, or a sign, or a type's name.
+        // What waits, in rows that the types lend, is a type and where it stands, or a sign, or a type's name.
         private static final int SIGN = 3;
         private static final int NAMED = 4;
-        private static final int KINDS = 5;
         private static final int COMMA = 1;
         private static final int STAR = 2;
         private static final int ARROW = 3;
@@ -5018,7 +5016,6 @@ public final class LeanHouse {
         private final Lexer lexer;
         private final int[] memory;
         private final byte[] bytes = new byte[WRITTEN_MOST + 2];
-        private final int[] items = new int[ITEMS];
         private final int[] variables = new int[VARIABLES];
         private int waits;
         private int variableCount;
@@ -5081,10 +5078,10 @@ public final class LeanHouse {
             variableCount = 0;
             waits = 0;
             wait(type, PLAIN);
-            for (int n = 0; n < ITEMS && waits > 0 && !cut; n++) {
+            for (int n = 0; n < TURNS_MOST && waits > 0 && !cut; n++) {
                 waits--;
-                int what = at(items, waits * 2);
-                int how = at(items, waits * 2 + 1);
+                int what = at(types.left, waits);
+                int how = at(types.right, waits);
                 if (how == SIGN) spaced(what);
                 else if (how == NAMED) named(what);
                 else node(types.find(what), how);
@@ -5093,8 +5090,8 @@ public final class LeanHouse {
         }
 
         private void wait(int what, int how) {
-            put(items, waits * 2, what);
-            put(items, waits * 2 + 1, how);
+            put(types.left, waits, what);
+            put(types.right, waits, how);
             waits++;
         }
 
