@@ -559,6 +559,7 @@ public final class LeanHouse {
     private static final class Parser {
         static final int MARKS = 10240;
         private static final int WAITING = 1024;
+        private static final int STRONGEST = 8;
 
         final int[] op = new int[MARKS];
         final int[] says = new int[MARKS];
@@ -1079,10 +1080,12 @@ public final class LeanHouse {
             return kind == W_ORELSE || kind == W_ANDALSO || kind == K_CONS;
         }
 
+        /** Operators; behind what has : TYPE stand only weaker ones, behind what begins with a word none. */
         private void low() {
             int base = waits;
+            int strongest = STRONGEST;
             operand();
-            for (int n = 0; n <= TOKENS_MOST && strength(lexer.kind) > 0; n++) {
+            for (int n = 0; n <= TOKENS_MOST && strength(lexer.kind) > 0 && strength(lexer.kind) <= strongest; n++) {
                 int kind = lexer.kind;
                 int where = lexer.start;
                 settle(base, kind);
@@ -1090,6 +1093,7 @@ public final class LeanHouse {
                     lexer.step();
                     type();
                     add(E_TYPED, 0, where);
+                    strongest = strength(K_COLON);
                 } else {
                     if (fromRight(kind) && !enter()) return;
                     put(waiting, waits, kind);
@@ -1098,9 +1102,10 @@ public final class LeanHouse {
                     if (kind == W_ANDALSO) add(E_AND_MID, 0, where);
                     if (kind == W_ORELSE) add(E_OR_MID, 0, where);
                     lexer.step();
-                    boolean wide = kind == W_ANDALSO || kind == W_ORELSE || kind == K_ASSIGN;
-                    if (wide && beginsWide(lexer.kind)) exp();
+                    boolean wide = beginsWide(lexer.kind) && (kind == W_ANDALSO || kind == W_ORELSE || kind == K_ASSIGN);
+                    if (wide) exp();
                     else operand();
+                    strongest = wide ? 0 : STRONGEST;
                 }
             }
             settle(base, NONE);

@@ -236,6 +236,13 @@ public final class LeanHouseTest {
         fault(2, "in (1 : (int, bool)\u00a7)");
         fault(2, "in raise 1 handle\u00a7");
         fault(2, "in x \u00a7then");
+        fault(2, "in 1 : int \u00a7+ 2");
+        fault(2, "in 1 : int \u00a7= 2");
+        fault(2, "in [1 : int \u00a7:: nil]");
+        fault(2, "in ref 1 : int ref \u00a7:= 2");
+        fault(2, "in x := if true then 1 else 2 : int \u00a7= 3");
+        type("in true : bool andalso 1 = 2 : bool orelse false", "bool");
+        type("in 1 + 2 : int : int", "int");
         type("val x = 1; val y = 2 in x + y", "int");
         type("in fn x => x := if true then 1 else 2", "int ref -> unit");
         type("in fn x => x := raise Div", "'a ref -> unit");
