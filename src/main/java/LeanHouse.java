@@ -4550,6 +4550,7 @@ public final class LeanHouse {
         private final Coder coder;
         private final Assembler a;
         private final Library library;
+        private final int[] landing = new int[Coder.ORDERS];
 
         Compiler(Coder coder, int[] memory) {
             this.coder = coder;
@@ -4578,8 +4579,9 @@ public final class LeanHouse {
             library.layOutput();
             library.layPartial();
             library.layGiven();
+            findLandings();
             for (int k = 0; k < coder.size; k++) {
-                a.land(k);
+                if (at(landing, k) != 0) a.land(k);
                 int order = at(coder.op, k);
                 int say = at(coder.one, k);
                 int more = at(coder.two, k);
@@ -4591,6 +4593,16 @@ public final class LeanHouse {
                 else simple(order, say);
             }
             a.close();
+        }
+
+        /** Only where a jump leads may nothing be moved from ahead to behind. */
+        private void findLandings() {
+            for (int k = 0; k < coder.size; k++) put(landing, k, k == 0 ? 1 : 0);
+            for (int k = 0; k < coder.size; k++) {
+                int order = at(coder.op, k);
+                if (order == O_JUMP || order == O_IF_FALSE || order == O_FUNCTION || order == O_TRY) put(landing, at(coder.one, k), 1);
+                else if (order == O_CON || order == O_SAME) put(landing, at(coder.two, k) >> 8, 1);
+            }
         }
 
         private void with(int number, int routine) {
