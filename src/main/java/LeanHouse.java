@@ -304,6 +304,7 @@ public final class LeanHouse {
         private final int[] nexts = new int[NAMES_MOST];
         private int names;
         private int poolSize;
+        private int knownSize;
         private int textSize;
         private int here;
         private int tokens;
@@ -315,6 +316,18 @@ public final class LeanHouse {
 
         Lexer(byte[] text) {
             this.text = text;
+            for (int k = 0; k < HEADS; k++) put(heads, k, NONE);
+            int size = 0;
+            for (int k = 0; k < KNOWN_NAMES.length(); k++) {
+                char c = KNOWN_NAMES.charAt(k);
+                if (c != ' ') {
+                    putByte(scratch, size++, c);
+                } else {
+                    intern(size);
+                    size = 0;
+                }
+            }
+            knownSize = poolSize;
         }
 
         void open(int size) {
@@ -339,20 +352,15 @@ public final class LeanHouse {
             return byteIn(pool, at(nameAt, name) + k);
         }
 
+        /** Names of the program before go; in each chain they stand ahead of those known ahead. */
         private void forget() {
-            for (int k = 0; k < HEADS; k++) put(heads, k, NONE);
-            names = 0;
-            poolSize = 0;
-            int size = 0;
-            for (int k = 0; k < KNOWN_NAMES.length(); k++) {
-                char c = KNOWN_NAMES.charAt(k);
-                if (c != ' ') {
-                    putByte(scratch, size++, c);
-                } else {
-                    intern(size);
-                    size = 0;
-                }
+            for (int k = 0; k < HEADS; k++) {
+                int name = at(heads, k);
+                for (int n = 0; n < NAMES_MOST && name >= NAMES_KNOWN; n++) name = at(nexts, name);
+                put(heads, k, name);
             }
+            names = NAMES_KNOWN;
+            poolSize = knownSize;
         }
 
         /** The number of the name whose bytes stand in the scratch row. */
@@ -1539,10 +1547,11 @@ public final class LeanHouse {
 
         Scope(Types types) {
             this.types = types;
+            for (int k = 0; k < NAMES_MOST; k++) put(conOf, k, NONE);
         }
 
         void open() {
-            for (int k = 0; k < NAMES_MOST; k++) put(conOf, k, NONE);
+            for (int k = 0; k < conCount; k++) put(conOf, conName(k), NONE);
             top = 0;
             visible = 0;
             schemeTop = 0;
@@ -1821,8 +1830,7 @@ public final class LeanHouse {
             fault = 0;
             place = NONE;
             typeMode = IN_ANNOTATION;
-            for (int k = 0; k < NAMES_MOST; k++) put(variableStamp, k, 0);
-            stamp = 1;
+            stamp++;
             for (int k = 0; k < parser.marks && fault == 0; k++) {
                 int op = at(parser.op, k);
                 if (op == E_OPERATOR) operator(k);
@@ -2551,7 +2559,7 @@ public final class LeanHouse {
             function = Scope.MAIN;
             depth = 0;
             literals = LITERALS;
-            for (int k = 0; k < NAMES_MOST; k++) put(literal, k, NONE);
+            for (int k = 0; k < lexer.named(); k++) put(literal, k, NONE);
             for (int k = 0; k < parser.marks; k++) put(owner, k, NONE);
             for (int k = 0; k < parser.marks; k++) {
                 int kind = at(parser.op, k);
