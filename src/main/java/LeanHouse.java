@@ -1906,6 +1906,8 @@ public final class LeanHouse {
                     break;
                 case E_TYPED:
                     int told = pop();
+                    // VALUED may it stay, but it is no constructor any more.
+                    put(flags, top - 1, at(flags, top - 1) & VALUED);
                     same(at(stack, top - 1), told, where);
                     break;
                 case E_TUPLE:
