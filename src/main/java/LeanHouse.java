@@ -1088,7 +1088,10 @@ public final class LeanHouse {
             return kind == W_ORELSE || kind == W_ANDALSO || kind == K_CONS;
         }
 
-        /** Operators; behind what has : TYPE stand only weaker ones, behind what begins with a word none. */
+        /**
+         * Operators; behind what has : TYPE stand only weaker ones. What begins with a word takes all
+         * that it can; behind it may only stand := again, if it ends by : TYPE and is the right side of one.
+         */
         private void low() {
             int base = waits;
             int strongest = STRONGEST;
@@ -1113,7 +1116,7 @@ public final class LeanHouse {
                     boolean wide = beginsWide(lexer.kind) && (kind == W_ANDALSO || kind == W_ORELSE || kind == K_ASSIGN);
                     if (wide) exp();
                     else operand();
-                    strongest = wide ? 0 : STRONGEST;
+                    strongest = !wide ? STRONGEST : kind == K_ASSIGN ? strength(K_ASSIGN) : 0;
                 }
             }
             settle(base, NONE);

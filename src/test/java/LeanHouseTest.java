@@ -241,6 +241,10 @@ public final class LeanHouseTest {
         fault(2, "in [1 : int \u00a7:: nil]");
         fault(2, "in ref 1 : int ref \u00a7:= 2");
         fault(2, "in x := if true then 1 else 2 : int \u00a7= 3");
+        fault(5, "in ref 1 := if true then 1 else 2 : int \u00a7:= 3");
+        fault(5, "in ref 1 := raise Div : exn \u00a7:= raise Div : exn := 3");
+        fault(2, "in true orelse if true then true else true : bool \u00a7:= 3");
+        fault(2, "in ref 1 := if true then 1 else 2 : int \u00a7+ 3");
         type("in true : bool andalso 1 = 2 : bool orelse false", "bool");
         type("in 1 + 2 : int : int", "int");
         type("val x = 1; val y = 2 in x + y", "int");
