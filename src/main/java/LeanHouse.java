@@ -1249,6 +1249,7 @@ public final class LeanHouse {
         private static final int FIRST_NODE = 256;
         private static final int FIRST_GENERAL = FIRST_NODE + NODES;
 
+        // What is to be made equal waits in these two; the writer borrows them.
         final int[] left = new int[NODES];
         final int[] right = new int[NODES];
         private final int[] kind = new int[NODES];
@@ -5033,13 +5034,6 @@ public final class LeanHouse {
         private static final int PLAIN = 0;
         private static final int LEFT_OF_ARROW = 1;
         private static final int PART = 2;
-        // What waits, in rows that the types lend, is a type and where it stands, or a sign, or a type's name.
-        private static final int SIGN = 3;
-        private static final int NAMED = 4;
-        private static final int COMMA = 1;
-        private static final int STAR = 2;
-        private static final int ARROW = 3;
-        private static final int CLOSE = 4;
 
         private final Types types;
         private final Scope scope;
@@ -5047,7 +5041,7 @@ public final class LeanHouse {
         private final int[] memory;
         private final byte[] bytes = new byte[WRITTEN_MOST + 2];
         private final int[] variables = new int[VARIABLES];
-        private int waits;
+        private int opened;
         private int variableCount;
         private int written;
         private boolean cut;
@@ -5103,91 +5097,81 @@ public final class LeanHouse {
             }
         }
 
+        /**
+         * The types that are open in one another wait in rows that the types lend, each with how it
+         * stands and how many of its parts have come. None is within itself, so each waits but once:
+         * there is room for them all, however deep and wide they are.
+         */
         int writeType(int type) {
             open();
             variableCount = 0;
-            waits = 0;
-            wait(type, PLAIN);
-            for (int n = 0; n < TURNS_MOST && waits > 0 && !cut; n++) {
-                waits--;
-                int what = at(types.left, waits);
-                int how = at(types.right, waits);
-                if (how == SIGN) spaced(what);
-                else if (how == NAMED) named(what);
-                else node(types.find(what), how);
+            opened = 0;
+            beginType(types.find(type), PLAIN);
+            for (int n = 0; n < TURNS_MOST && opened > 0 && !cut; n++) {
+                int node = at(types.left, opened - 1);
+                int says = at(types.right, opened - 1);
+                int kind = types.kindOf(node);
+                int k = says >> 2;
+                if (k < types.arityOf(kind)) {
+                    put(types.right, opened - 1, says + 4);
+                    if (k > 0) between(kind);
+                    beginType(types.part(node, k), partStands(kind, k));
+                } else {
+                    opened--;
+                    endType(kind, says & 3);
+                }
             }
             return close();
         }
 
-        private void wait(int what, int how) {
-            put(types.left, waits, what);
-            put(types.right, waits, how);
-            waits++;
-        }
-
-        private void spaced(int what) {
-            if (what == CLOSE) {
-                sign(')');
-                return;
-            }
-            if (what == COMMA) {
-                sign(',');
-            } else {
-                sign(' ');
-                sign(what == STAR ? '*' : '-');
-                if (what == ARROW) sign('>');
-            }
-            sign(' ');
-        }
-
-        private void named(int kind) {
-            sign(' ');
-            name(scope.typeName(kind));
-        }
-
-        private void node(int node, int how) {
+        private void beginType(int node, int how) {
             if (types.isVariable(node)) {
                 variable(node);
                 return;
             }
             int kind = types.kindOf(node);
-            boolean round = kind == TYPE_ARROW ? how != PLAIN : kind >= TYPE_PRODUCT && how == PART;
-            if (round) {
-                sign('(');
-                wait(CLOSE, SIGN);
-            }
-            if (kind == TYPE_ARROW) {
-                wait(types.part(node, 1), PLAIN);
-                wait(ARROW, SIGN);
-                wait(types.part(node, 0), LEFT_OF_ARROW);
-            } else if (kind >= TYPE_PRODUCT) {
-                parts(node, kind, PART, STAR);
-            } else {
-                applied(node, kind);
-            }
+            if (isRound(kind, how) || isListed(kind)) sign('(');
+            put(types.left, opened, node);
+            put(types.right, opened, how);
+            opened++;
         }
 
-        private void applied(int node, int kind) {
-            int arity = types.arityOf(kind);
-            if (arity == 0) {
-                name(scope.typeName(kind));
-                return;
-            }
-            wait(kind, NAMED);
-            if (arity == 1) {
-                wait(types.part(node, 0), PART);
-                return;
-            }
-            sign('(');
-            wait(CLOSE, SIGN);
-            parts(node, kind, PLAIN, COMMA);
+        private void endType(int kind, int how) {
+            if (isRound(kind, how) || isListed(kind)) sign(')');
+            if (kind == TYPE_ARROW || kind >= TYPE_PRODUCT) return;
+            if (types.arityOf(kind) > 0) sign(' ');
+            name(scope.typeName(kind));
         }
 
-        private void parts(int node, int kind, int how, int between) {
-            for (int k = types.arityOf(kind) - 1; k >= 0; k--) {
-                wait(types.part(node, k), how);
-                if (k > 0) wait(between, SIGN);
+        /** Whether ( ) stands around a type of the kind. */
+        private static boolean isRound(int kind, int how) {
+            return kind == TYPE_ARROW ? how != PLAIN : kind >= TYPE_PRODUCT && how == PART;
+        }
+
+        /** Whether ( ) stands around the types ahead of the NAME. */
+        private boolean isListed(int kind) {
+            return kind != TYPE_ARROW && kind < TYPE_PRODUCT && types.arityOf(kind) > 1;
+        }
+
+        private int partStands(int kind, int k) {
+            if (kind == TYPE_ARROW) return k == 0 ? LEFT_OF_ARROW : PLAIN;
+            return isListed(kind) ? PLAIN : PART;
+        }
+
+        private void between(int kind) {
+            if (isListed(kind)) {
+                comma();
+                return;
             }
+            sign(' ');
+            sign(kind == TYPE_ARROW ? '-' : '*');
+            if (kind == TYPE_ARROW) sign('>');
+            sign(' ');
+        }
+
+        private void comma() {
+            sign(',');
+            sign(' ');
         }
 
         private void variable(int node) {
@@ -5262,7 +5246,7 @@ public final class LeanHouse {
         private void tuple(int where, int fields, int depth) {
             sign('(');
             for (int k = 0; k < fields && !cut; k++) {
-                if (k > 0) spaced(COMMA);
+                if (k > 0) comma();
                 value(at(memory, where + 1 + k), depth + 1, false);
             }
             sign(')');
@@ -5273,7 +5257,7 @@ public final class LeanHouse {
             int cell = where * 4;
             for (int n = 0; n < HEAP_MOST && cell != NIL_WORD && !cut; n++) {
                 int tuple = at(memory, (cell >> 2) + 1) >> 2;
-                if (n > 0) spaced(COMMA);
+                if (n > 0) comma();
                 value(at(memory, tuple + 1), depth + 1, false);
                 cell = at(memory, tuple + 2);
             }
