@@ -200,10 +200,9 @@ public final class LeanHouseDeepTypesTest {
         deep("t of 93, all", 93, t -> filled("t", 93, t, 0, 92));
         deep("t of 93, the first", 93, t -> filled("t", 93, t, 0, 0));
         deep("t of 93, the last", 93, t -> filled("t", 93, t, 92, 92));
-        deep("t of 93, the 40th", 93, t -> filled("t", 93, t, 39, 39));
         deep("t of 2, the first", 2, t -> filled("t", 2, t, 0, 0));
         deep("t of 2, both", 2, t -> filled("t", 2, t, 0, 1));
-        deep("lists, 90 deep", 1, t -> wrapped(u -> new Tree("list", u), t, 90));
+        deep("lists, 40 deep", 1, t -> wrapped(u -> new Tree("list", u), t, 40));
     }
 
     private static void plain() {
@@ -262,6 +261,6 @@ public final class LeanHouseDeepTypesTest {
         thread.start();
         thread.join();
         System.out.println(checked + " answers about deep types looked at, " + wrong + " wrong");
-        if (wrong > 0 || checked < 500) System.exit(1);
+        if (wrong > 0 || checked < 550) System.exit(1);
     }
 }
