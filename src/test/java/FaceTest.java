@@ -155,6 +155,40 @@ public final class FaceTest extends Houses {
         same("type", house.tell(0), 3);
     }
 
+    /** Each read begins as new, whatever the programs before, and the faults in them, have left. */
+    private static void readAgain() {
+        String[][] pairs = {{"val x = 1 in x", "in \u00a7x"}, {"fun f y = y in f", "in \u00a7f"}, {"val rec f = fn y => y in f", "in \u00a7f"},
+            {"exception E in 1", "in \u00a7E"}, {"datatype t = A in 1", "in (1 : \u00a7t)"}, {"datatype t = A of int in 1", "in fn (\u00a7t x) => x"},
+            {"in fn x => x", "in \u00a7x"}, {"in fn (x, y) => \u00a7z", "in \u00a7x"}, {"in fn x => fn y => x \u00a7+ true", "in (\u00a7x, y)"},
+            {"datatype t = A of \u00a7u", "in (1 : \u00a7t)"}, {"exception E of \u00a7u in 1", "in \u00a7E"}, {"in let val x = 1 in \u00a7y end", "in \u00a7x"}};
+        for (String[] pair : pairs) {
+            House house = new House();
+            house.read(pair[0].replace("\u00a7", ""));
+            same("read of " + pair[1], house.read(pair[1].replace("\u00a7", "")), false);
+            same("fault of " + pair[1] + " behind " + pair[0], faultOf(house), "3 at " + pair[1].indexOf('\u00a7'));
+        }
+        String deep = "in " + times("fn x=>", 39) + "y";
+        String[] left = {deep, deep, deep, "in " + times("(", 40) + "#", "in " + times("[", 41), "in 1" + times("+(1", 39), "val x = " + times("let val x = ", 39) + "y",
+            "fun f x = case x of (y, (z, 1 + true", "datatype ('a, 'b) t = A of 'a and u = B of 'b", "in 1 andalso 2 orelse fn x => y", "in (1, 2, true + 1, 2", "in 1 :: 2 :: 3 ::"};
+        String good = "val a = 1 fun f x y = fn z => (a, x, y, z) fun g 0 = nil | g n = f n n n :: g (n - 1) in g 2";
+        House house = new House();
+        for (int k = 0; k < left.length; k++) same("read of " + left[k], house.read(left[k]), false);
+        same("good", house.read(good), true);
+        told("type", house, 0, "(int * int * int * int) list", 30);
+        for (int how : hows()) {
+            same("run", house.run(how, 100, 200), 0);
+            told("value", house, 1, "[(1, 2, 2, 2), (1, 1, 1, 1)]", 30);
+            same("steps", house.seen(0), 9);
+        }
+        // Programs with many types, one behind the other.
+        String many = "val y=(" + times("nil,", 29) + "nil)in(" + times("y;", 780) + "y)";
+        House types = new House();
+        for (int k = 0; k < 5; k++) same("read", types.read(many), true);
+        same("good", types.read("in fn x=>(x,x)"), true);
+        told("type", types, 0, "'a -> 'a * 'a", 20);
+        same("fault", types.read("in 1+true") + faultOf(types), "false5 at 4");
+    }
+
     /** "Promise 5: The latest read()'s fault (what 0; 0 none), its place (1; NONE) .. another what." */
     private static void fault() {
         House house = new House();
@@ -179,14 +213,14 @@ public final class FaceTest extends Houses {
         int[] given = {0x3fffffff, 0x40000000, 0x7fffffff, 0x80000000, 0xbfffffff, 0xc0000000, -1};
         String[] due = {"1073741823", "~1073741824", "~1", "0", "1073741823", "~1073741824", "~1"};
         for (int k = 0; k < 7; k++) same("give", house.give(given[k]), k + 1);
-        for (int how = 0; how < 3; how++) {
+        for (int how : hows()) {
             same("run", house.run(how, 10, 16), 0);
             told("given", house, 1, "(" + String.join(", ", due) + ")", 100);
         }
         same("take", house.take(), 7);
         same("take", house.take(), 0);
         same("count", house.count(1), 0);
-        for (int how = 0; how < 3; how++) {
+        for (int how : hows()) {
             same("run", house.run(how, 10, 16), 1);
             told("raised", house, 1, "Subscript", 12);
         }
@@ -195,7 +229,7 @@ public final class FaceTest extends Houses {
         for (int k = 1; k <= 100; k++) same("give", other.give(k * 3), k);
         for (int n : new int[] {0, 1, -1, LEAST, MOST}) same("give", answer(() -> other.give(n)), STATE);
         same("as it was", other.count(1), 100);
-        for (int how = 0; how < 3; how++) {
+        for (int how : hows()) {
             other.run(how, 10, 16);
             told("given", other, 1, "(3, 300, 100)", 20);
         }
@@ -223,20 +257,20 @@ public final class FaceTest extends Houses {
         House house = fresh("in (print \"a\"; 1)");
         for (House one : new House[] {none, house}) {
             for (int how : new int[] {-1, 3, LEAST, MOST}) same("how " + how, answer(() -> one.run(how, 1, 16)), ARGUMENT);
-            for (int how = 0; how < 3; how++) {
+            for (int how : hows()) {
                 int way = how;
                 for (int steps : new int[] {0, -1, 20001, LEAST, MOST}) same("steps " + steps, answer(() -> one.run(way, steps, 16)), ARGUMENT);
                 for (int heap : new int[] {15, 0, -1, 4097, LEAST, MOST}) same("heap " + heap, answer(() -> one.run(way, 1, heap)), ARGUMENT);
                 same("all", answer(() -> one.run(way, 0, 0)), ARGUMENT);
             }
         }
-        for (int how = 0; how < 3; how++) {
+        for (int how : hows()) {
             int way = how;
             same("no program", answer(() -> none.run(way, 1, 16)), STATE);
             same("no program", answer(() -> none.run(way, 20000, 4096)), STATE);
         }
         same("no run yet", answer(() -> house.seen(0)), STATE);
-        for (int how = 0; how < 3; how++) {
+        for (int how : hows()) {
             same("least", house.run(how, 1, 16), 0);
             same("most", house.run(how, 20000, 4096), 0);
             same("steps", house.run(how, 20000, 16), 0);
@@ -271,7 +305,7 @@ public final class FaceTest extends Houses {
         for (int end = 0; end < 5; end++) {
             int due = end;
             same("read", house.read(texts[end]), true);
-            for (int how = 0; how < 3; how++) {
+            for (int how : hows()) {
                 same("end " + end + ", how " + how, house.run(how, 5000, 16), due);
                 same("tell", answer(() -> house.tell(1)), due == 0 ? "1" : due == 1 ? "3" : STATE);
                 same("type", answer(() -> house.tell(0)).length() < 3, true);
@@ -291,7 +325,7 @@ public final class FaceTest extends Houses {
                 same("seen " + what, answer(() -> one.seen(k)), STATE);
             }
         }
-        for (int how = 0; how < 3; how++) {
+        for (int how : hows()) {
             house.run(how, 100, 100);
             String all = "";
             for (int k = 0; k < 5; k++) all += " " + house.seen(k);
@@ -317,7 +351,7 @@ public final class FaceTest extends Houses {
         for (int bytes : new int[] {1999, 2000, 2001, 2002, 2047, 5000}) {
             House house = fresh("val i = ref 0 val s = \"abcdefghij\" in (while !i < " + bytes / 10 + " do (print s; i := !i + 1); print \""
                 + "0123456789".substring(0, bytes % 10) + "\")");
-            for (int how = 0; how < 3; how++) {
+            for (int how : hows()) {
                 same("run", house.run(how, STEPS_MOST, HEAP_MOST), 0);
                 same("bytes", house.seen(4), bytes);
                 int kept = Math.min(bytes, 2000);
@@ -330,7 +364,7 @@ public final class FaceTest extends Houses {
         }
         // A print and a put across the 2,000th byte.
         House house = fresh("val i = ref 0 in (while !i < 199 do (print \"abcdefghij\"; i := !i + 1); print \"1234567\"; put ~1073741824; put 5; !i)");
-        for (int how = 0; how < 3; how++) {
+        for (int how : hows()) {
             house.run(how, STEPS_MOST, HEAP_MOST);
             same("bytes", house.seen(4), 1990 + 7 + 12 + 2);
             same("last", "" + (char) house.byteAt(1996) + (char) house.byteAt(1997) + (char) house.byteAt(1998) + (char) house.byteAt(1999), "7~10");
@@ -398,7 +432,7 @@ public final class FaceTest extends Houses {
         same("another what", answer(() -> house.tell(2)), INDEX);
         // A value that has been told stays as the run left it.
         House kept = fresh("val r = ref 1 in (r := 2; (r, \"ab\"))");
-        for (int how = 0; how < 3; how++) {
+        for (int how : hows()) {
             kept.run(how, 10, 16);
             told("value", kept, 1, "(ref 2, \"ab\")", 20);
             told("value again", kept, 1, "(ref 2, \"ab\")", 20);
@@ -476,11 +510,34 @@ public final class FaceTest extends Houses {
         for (int what : new int[] {-1, 3, LEAST, MOST}) same("count " + what, answer(() -> house.count(what)), INDEX);
     }
 
+    /** "An object is used for at most 512 calls after it has been made": all of them are answered as promised. */
+    private static void wholeLife() {
+        House house = new House();
+        String text = "val r = ref 0 in (while !r < 3 do (r := !r + 1; put (!r)); [!r, many ()])";
+        int turn = 0;
+        while (house.callsLeft() >= House.feeds(text) + 32) {
+            same("give", house.give(turn), turn + 1);
+            same("read", house.read(text), true);
+            for (int how : hows()) {
+                same("run", house.run(how, 100, 16), 0);
+                same("steps", house.seen(0), 1 + 4 + 4 + 3 * 3 + 1 + 1);
+                same("byte", house.byteAt(4), (int) '3');
+                told("value", house, 1, "[3, " + (turn + 1) + "]", 6);
+            }
+            turn++;
+        }
+        same("turns", turn > 10, true);
+        while (house.callsLeft() > 1) same("count", house.count(1), turn);
+        same("the last call", house.take(), turn);
+        same("calls left", house.callsLeft(), 0);
+    }
+
     public static void main(String[] args) {
         newObject();
         feed();
         end();
         read();
+        readAgain();
         fault();
         input();
         run();
@@ -489,6 +546,7 @@ public final class FaceTest extends Houses {
         tell();
         resultAt();
         count();
+        wholeLife();
         finish("the face");
     }
 }

@@ -137,6 +137,8 @@ public final class HeapTest extends Houses {
         words("fun f x y = (f x; y) in f 1", 2 + 4);
         words("fun f x y z = (f x; y) in f 1 2", 2 + 4 + 5);
         words("val a = 1 fun f x y z = (f a; y) in f 1 2", 3 + 5 + 6);
+        words("fun f x y = fn z => (f z z; z) in f 1", 2 + 4);
+        words("fun f x y = fn z => (f z z; z) in f 1 2", 2 + 4 + 3);
         words("fun f x y = g x and g x = f x 1 in f 2", 3 + 3 + 4);
         words("fun f x y = (f x; g x) and g x = f x 1 in f 2", 3 + 3 + 5);
         words("fun f 0 0 = 1 | f x y = f 0 0 in f 2", 2 + 4);
@@ -233,7 +235,8 @@ public final class HeapTest extends Houses {
         for (int k = 0; k < made.length; k++) {
             String text = "datatype 'a o = S of 'a exception E of string val i = 1 val v = " + made[k] + loop + "v)";
             House house = program(text, 3 * 20);
-            for (int how = 0; how < 3 && house != null; how++) {
+            if (house == null) return;
+        for (int how : hows()) {
                 same("end of " + text, house.run(how, STEPS_MOST, 24), 0);
                 same("collections of " + text, house.seen(1) > 50, true);
                 told("value of " + text, house, 1, due[k], 18);
@@ -242,7 +245,8 @@ public final class HeapTest extends Houses {
         String both = "val a = ref 1 val b = (a, a) val c = fn x => a := x val i = ref 0 in "
             + "(while !i < 100 do (" + tuple(5) + "; i := !i + 1); c 5; case b of (x, y) => (x := !x + 1; (!a, !x, !y)))";
         House house = program(both, 3 * 20);
-        for (int how = 0; how < 3 && house != null; how++) {
+        if (house == null) return;
+        for (int how : hows()) {
             same("end of " + both, house.run(how, STEPS_MOST, 18), 0);
             told("value of " + both, house, 1, "(6, 6, 6)", 12);
         }

@@ -1,4 +1,3 @@
-import java.nio.charset.StandardCharsets;
 import java.util.function.UnaryOperator;
 import java.util.regex.Matcher;
 import java.util.regex.Pattern;
@@ -8,12 +7,10 @@ import java.util.regex.Pattern;
  * and which can't be. A function f gives T of its argument's type to what it is given next, so
  * f 0 f .. f holds as many T in one another as f stands there.
  */
-public final class LeanHouseDeepTypesTest {
+public final class LeanHouseDeepTypesTest extends Houses {
     private static final int WRITTEN_MOST = 1900;
     private static final int TOKENS_MOST = 2000;
     private static final Pattern TOKEN = Pattern.compile("'?[A-Za-z][A-Za-z0-9_']*|[0-9]+|->|=>|\"[^\"]*\"|\\S");
-    private static int wrong;
-    private static int checked;
 
     /** A type of the test's own: "->", "*" or a NAME with what stands ahead of it; a variable is a NAME. */
     private static final class Tree {
@@ -27,13 +24,6 @@ public final class LeanHouseDeepTypesTest {
     }
 
     private static final Tree INT = new Tree("int");
-
-    private static void same(String what, Object got, Object due) {
-        checked++;
-        if (got.equals(due)) return;
-        wrong++;
-        System.out.println(what + ": answered " + got + ", due is " + due);
-    }
 
     /** Writes the type, in ( ) where the document has them; stops some time behind so many bytes. */
     private static void write(Tree t, StringBuilder s, int most) {
@@ -73,38 +63,21 @@ public final class LeanHouseDeepTypesTest {
         return s.length() <= WRITTEN_MOST ? s.toString() : s.substring(0, WRITTEN_MOST) + "..";
     }
 
-    private static boolean read(LeanHouse house, String text) {
-        byte[] bytes = text.getBytes(StandardCharsets.ISO_8859_1);
-        int[] row = new int[5];
-        int padded = (bytes.length + 19) / 20 * 20;
-        for (int k = 0; k < padded; k += 20) {
-            for (int n = 0; n < 20; n++) row[n / 4] = row[n / 4] << 8 | (k + n < bytes.length ? bytes[k + n] & 255 : 0);
-            house.feed(row[0], row[1], row[2], row[3], row[4]);
-        }
-        house.end(padded - bytes.length);
-        return house.read();
-    }
-
     private static void type(String what, String text, Tree due) {
-        LeanHouse house = new LeanHouse();
-        if (!read(house, text)) {
-            same(what, "fault " + house.fault(0) + " at " + house.fault(1) + " of " + text, "a type");
+        House house = new House();
+        if (!house.read(text)) {
+            same(what, "fault " + faultOf(house) + " of " + text, "a type");
             return;
         }
-        for (int turn = 0; turn < 2; turn++) {
-            int size = house.tell(0);
-            StringBuilder s = new StringBuilder();
-            for (int k = 0; k < size; k++) s.append((char) house.resultAt(k));
-            same(what + " told " + turn, s.toString(), written(due));
-        }
+        for (int turn = 0; turn < 2; turn++) told(what + " told " + turn, house, 0, written(due), house.callsLeft() / (2 - turn) - 2);
     }
 
     /** The place is where the mark stands, which is taken out. */
     private static void fault(String what, int fault, String marked) {
         int place = marked.indexOf('\u00a7');
-        LeanHouse house = new LeanHouse();
-        same(what, read(house, marked.substring(0, place) + marked.substring(place + 1)), false);
-        same(what + " fault", house.fault(0) + " at " + house.fault(1), fault + " at " + place);
+        House house = new House();
+        same(what, house.read(marked.substring(0, place) + marked.substring(place + 1)), false);
+        same(what + " fault", faultOf(house), fault + " at " + place);
     }
 
     private static int tokens(String text) {
@@ -260,7 +233,6 @@ public final class LeanHouseDeepTypesTest {
         }, "deep", 1L << 29);
         thread.start();
         thread.join();
-        System.out.println(checked + " answers about deep types looked at, " + wrong + " wrong");
-        if (wrong > 0 || checked < 550) System.exit(1);
+        finish("deep types");
     }
 }

@@ -1,4 +1,3 @@
-import java.nio.charset.StandardCharsets;
 import java.util.ArrayList;
 import java.util.List;
 
@@ -6,7 +5,7 @@ import java.util.List;
  * Programs made by rule from a seed, all well typed: each is run by how 0, 1 and 2 with several heaps
  * and steps, and all that can be seen of the three runs must be the same.
  */
-public final class LeanHouseHowsTest {
+public final class LeanHouseHowsTest extends Houses {
     private static final int INT = 0, BOOL = 1, STRING = 2, UNIT = 3, LIST = 4, PAIR = 5, FUN = 6, REF = 7, TREE = 8, TYPES = 9;
     private static final String[] WRITTEN = {"int", "bool", "string", "unit", "int list", "int * string", "int -> int", "int ref", "tree"};
 
@@ -267,69 +266,70 @@ public final class LeanHouseHowsTest {
         return s.append("in ").append(exp(below(TYPES), 4)).toString();
     }
 
-    private static boolean load(LeanHouse house, String text) {
-        byte[] bytes = text.getBytes(StandardCharsets.ISO_8859_1);
-        int[] row = new int[5];
-        int padded = (bytes.length + 19) / 20 * 20;
-        if (padded > 8192) return false;
-        for (int k = 0; k < padded; k += 20) {
-            for (int n = 0; n < 20; n++) row[n / 4] = row[n / 4] << 8 | (k + n < bytes.length ? bytes[k + n] & 255 : 0);
-            house.feed(row[0], row[1], row[2], row[3], row[4]);
-        }
-        house.end(padded - bytes.length);
-        return house.read();
-    }
-
-    private static String seen(LeanHouse house, int how, int steps, int heap) {
+    /** All that can be seen of a run; of what is put out and told as many bytes as the calls allow. */
+    private static String seen(House house, int how, int steps, int heap, int bytes) {
         StringBuilder s = new StringBuilder();
         int end = house.run(how, steps, heap);
         s.append("end ").append(end);
         for (int k = 0; k < 5; k++) s.append(' ').append(house.seen(k));
-        for (int k = 0; k < Math.min(2000, house.seen(4)); k++) s.append(' ').append(house.byteAt(k));
+        int kept = Math.min(2000, house.seen(4));
+        int picks = Math.min(kept, bytes / 2);
+        for (int k = 0; k < picks; k++) s.append(' ').append(house.byteAt(pick(k, picks, kept)));
         if (end < 2) {
             int size = house.tell(1);
-            s.append(" = ");
-            for (int k = 0; k < size; k++) s.append((char) house.resultAt(k));
+            s.append(" = ").append(size).append(' ');
+            picks = Math.min(size, bytes - picks);
+            for (int k = 0; k < picks; k++) s.append((char) house.resultAt(pick(k, picks, size)));
         }
         return s.toString();
+    }
+
+    private static void give(House house) {
+        house.take();
+        for (int k = 0; k < 4; k++) house.give(k * k - 3);
+    }
+
+    /** Whether it is a program: all are, but those with more variables or tokens than are allowed. */
+    private static boolean read(House house, String text) {
+        if (house.read(text)) return true;
+        if (house.fault(0) != MANY) same("fault of " + text, faultOf(house), "none");
+        return false;
     }
 
     public static void main(String[] args) {
         int programs = args.length > 0 ? Integer.parseInt(args[0]) : 1500;
         long first = args.length > 1 ? Long.parseLong(args[1]) : 1;
-        LeanHouse house = new LeanHouse();
-        for (int k = 0; k < 4; k++) house.give(k * k - 3);
-        int wrong = 0;
         int[] ends = new int[5];
         int unread = 0;
         int collected = 0;
         for (int p = 0; p < programs; p++) {
             String text = new LeanHouseHowsTest(first + p).program();
-            if (!load(house, text)) {
+            int bytes = 60;
+            if (House.feeds(text) + 3 * (bytes + 8) + 8 > House.CALLS_MOST) {
                 unread++;
-                if (house.fault(0) != 7) {
-                    wrong++;
-                    System.out.println("fault " + house.fault(0) + " at " + house.fault(1) + " of\n" + text);
-                }
                 continue;
             }
             int[] heaps = {16 + p % 60, 100, 4096};
             int[] steps = {1 + p % 50, 400, 20000};
             for (int k = 0; k < 3; k++) {
-                String zero = seen(house, 0, steps[k], heaps[k]);
-                ends[zero.charAt(4) - '0']++;
-                if (house.seen(1) > 0) collected++;
-                for (int how = 1; how <= 2; how++) {
-                    String other = seen(house, how, steps[k], heaps[k]);
-                    if (!other.equals(zero)) {
-                        wrong++;
-                        System.out.println("how " + how + " steps " + steps[k] + " heap " + heaps[k] + " of\n" + text + "\n" + zero + "\n" + other);
-                    }
+                House house = houseFor(text, 3 * (bytes + 8) + 8);
+                give(house);
+                if (!read(house, text)) {
+                    unread++;
+                    break;
                 }
+                String one = null;
+                for (int how : hows()) {
+                    String other = seen(house, how, steps[k], heaps[k], bytes);
+                    if (one != null) same("how " + how + ", steps " + steps[k] + ", heap " + heaps[k] + " of\n" + text, other, one);
+                    one = other;
+                }
+                ends[one.charAt(4) - '0']++;
+                if (house.seen(1) > 0) collected++;
             }
-            if (wrong > 5) break;
         }
         System.out.println("ends " + java.util.Arrays.toString(ends) + ", unread " + unread + ", collected " + collected);
-        if (wrong != 0 || ends[0] == 0 || ends[1] == 0 || ends[2] == 0 || ends[3] == 0) System.exit(1);
+        same("each end but that of the pile was met", ends[0] > 0 && ends[1] > 0 && ends[2] > 0 && ends[3] > 0, true);
+        finish("all three ways to run");
     }
 }

@@ -131,7 +131,7 @@ public final class PileTest extends Houses {
         String text = "val r = ref 0 fun same x = x fun f n = " + body + " in (f ";
         House house = program(text + "10; ())", 6);
         if (house == null) return;
-        for (int how = 0; how < 3; how++) {
+        for (int how : hows()) {
             same("end of " + text, house.run(how, STEPS_MOST, HEAP_MOST), 0);
             int few = house.seen(3);
             House other = program(text + "60; ())", 6);

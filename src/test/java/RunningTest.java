@@ -158,13 +158,13 @@ public final class RunningTest extends Houses {
             for (int index : new int[] {-1, 0, 1, n - 1, n, 100, 1073741823, -1073741824}) {
                 same("read", house.read("in given (" + written(index) + ")"), true);
                 boolean has = index >= 0 && index < n;
-                for (int how = 0; how < 3; how++) {
+                for (int how : hows()) {
                     same("given " + index + " of " + n + ", how " + how, house.run(how, 5, 16), has ? 0 : 1);
                 }
                 told("given " + index + " of " + n, house, 1, has ? "" + index * 10 : "Subscript", 20);
             }
             same("read", house.read("in many ()"), true);
-            for (int how = 0; how < 3; how++) {
+            for (int how : hows()) {
                 house.run(how, 5, 16);
                 told("many of " + n + ", how " + how, house, 1, "" + n, 10);
             }
@@ -269,7 +269,7 @@ public final class RunningTest extends Houses {
         String prints = "in (print \"a\"; print \"b\"; print \"c\"; print \"d\")";
         House house = program(prints, 100);
         if (house == null) return;
-        for (int how = 0; how < 3; how++) {
+        for (int how : hows()) {
             for (int n = 1; n <= 5; n++) {
                 same("end by " + n, house.run(how, n, 16), n < 4 ? 2 : 0);
                 same("steps by " + n, house.seen(0), Math.min(n, 4));
@@ -322,7 +322,8 @@ public final class RunningTest extends Houses {
     /** How it ends, then steps, collections and pile. */
     private static void endsBy(String text, int steps, int heap, String due) {
         House house = program(text, 15);
-        for (int how = 0; how < 3 && house != null; how++) {
+        if (house == null) return;
+        for (int how : hows()) {
             String got = house.run(how, steps, heap) + " " + house.seen(0) + " " + house.seen(1) + " " + house.seen(3);
             same("end, how " + how + ", of " + brief(text), got, due);
         }
@@ -335,7 +336,7 @@ public final class RunningTest extends Houses {
         house.give(5);
         house.give(-3);
         house.give(9);
-        for (int how = 0; how < 3; how++) {
+        for (int how : hows()) {
             StringBuilder s = new StringBuilder();
             int end = house.run(how, steps, heap);
             String value = STATE;

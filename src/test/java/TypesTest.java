@@ -292,6 +292,10 @@ public final class TypesTest extends Houses {
         fault(TYPE, "in fn x => let fun f y = fn z => (x, y, z) val g = f 1 in (g 2, g \u00a7true) end");
         type("val (x, f) = (1, fn y => y) in (f x, f true)", "int * bool");
         type("val x :: y = [fn z => z] in (x 1, x true)", "int * bool");
+        type("val f = 1 val rec f = fn x => x in (f 1, f true)", "int * bool");
+        type("val f = 1 fun f x = x in (f 1, f true)", "int * bool");
+        type("val f = 1 val f = fn x => x in (f 1, f true)", "int * bool");
+        type("fun f x = x val rec g = fn f => f val f = g in (f 1, f true)", "int * bool");
         type("val x as (y, z) = (nil, nil) in (1 :: y, true :: y, x, x)", "int list * bool list * ('a list * 'b list) * ('c list * 'd list)");
         fault(TYPE, "val f = (fn x => x) (fn x => x) in (f 1, f \u00a7true)");
         type("val f = (fn x => x) (fn x => x) in f", "'a -> 'a");

@@ -19,6 +19,7 @@ class Houses {
     static final int HEAP_MOST = 4096;
 
     private static House used = new House();
+    private static int turn;
     private static int wrong;
     private static int checked;
 
@@ -90,8 +91,13 @@ class Houses {
         program(text, 0);
     }
 
-    private static int pick(int k, int picks, int size) {
-        return k <= picks / 2 ? k : size - picks + k;
+    /** Which byte is looked at as the k-th of so many: the first ones, some of the middle, the last ones. */
+    static int pick(int k, int picks, int size) {
+        int third = picks / 3;
+        if (k < third) return k;
+        if (k >= picks - third) return size - picks + k;
+        int middle = picks - 2 * third;
+        return third + (k - third) * (size - 2 * third) / middle;
     }
 
     /** What is told, by as many of its bytes (the first and the last ones) as the calls allow. */
@@ -119,11 +125,21 @@ class Houses {
         if (house != null) told("type of " + brief(text), house, 0, type, calls);
     }
 
+    /**
+     * All three ways to run, each time another one first: it must not matter what another one, or
+     * another program, has left.
+     */
+    static int[] hows() {
+        turn++;
+        return new int[] {turn % 3, (turn + 1) % 3, (turn + 2) % 3};
+    }
+
     /** How it ends by all three ways to run, and the value (or the exception). */
     private static void comesTo(int end, String text, String value) {
         int calls = Math.min(value.length() + 4, 29);
         House house = program(text, 3 * calls);
-        for (int how = 0; how < 3 && house != null; how++) {
+        if (house == null) return;
+        for (int how : hows()) {
             same("end, how " + how + ", of " + brief(text), house.run(how, STEPS_MOST, HEAP_MOST), end);
             told("value, how " + how + ", of " + brief(text), house, 1, value, calls - 2);
         }
@@ -155,7 +171,8 @@ class Houses {
     static void puts(String text, String due) {
         int calls = Math.min(due.length() + 3, 29);
         House house = program(text, 3 * calls);
-        for (int how = 0; how < 3 && house != null; how++) {
+        if (house == null) return;
+        for (int how : hows()) {
             house.run(how, STEPS_MOST, HEAP_MOST);
             output("output, how " + how + ", of " + brief(text), house, due, calls - 1);
         }
@@ -164,7 +181,8 @@ class Houses {
     /** One number of those that are seen of a run that has all the steps and all the heap. */
     static void seen(int what, String text, int due) {
         House house = program(text, 6);
-        for (int how = 0; how < 3 && house != null; how++) {
+        if (house == null) return;
+        for (int how : hows()) {
             int end = house.run(how, STEPS_MOST, HEAP_MOST);
             same("seen " + what + ", how " + how + ", of " + brief(text), (end > 1 ? "end " + end + ", " : "") + house.seen(what), "" + due);
         }
@@ -185,7 +203,8 @@ class Houses {
     /** How it ends, then steps, collections, words and pile, with so many steps and so much heap. */
     static void ends(String text, int steps, int heap, String due) {
         House house = program(text, 15);
-        for (int how = 0; how < 3 && house != null; how++) {
+        if (house == null) return;
+        for (int how : hows()) {
             StringBuilder s = new StringBuilder();
             s.append(house.run(how, steps, heap));
             for (int k = 0; k < 4; k++) s.append(" ").append(house.seen(k));
