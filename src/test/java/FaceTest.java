@@ -180,6 +180,20 @@ public final class FaceTest extends Houses {
             told("value", house, 1, "[(1, 2, 2, 2), (1, 1, 1, 1)]", 30);
             same("steps", house.seen(0), 9);
         }
+        House waiting = new House();
+        for (int k = 0; k < 12; k++) same("read", waiting.read("in " + times("1=1+1*(", 40) + ")"), false);
+        same("good", waiting.read("in (1+2*3=7 andalso 2*3+1=7,1::2+3*4::nil)"), true);
+        waiting.run(0, 1, 16);
+        told("value", waiting, 1, "(true, [1, 14])", 20);
+        // Programs with many names, one behind the other.
+        StringBuilder names = new StringBuilder("in");
+        for (int k = 0; k < 1950; k++) names.append(' ').append((char) ('a' + k / 260)).append((char) ('A' + k % 26)).append(k / 26 % 10);
+        House named = new House();
+        same("read", named.read(names.substring(0, 7800)), false);
+        same("fault", faultOf(named), "3 at 3");
+        same("read", named.read(names.substring(0, 1200)), false);
+        same("good", named.read("val zz1=1 val zz2=(2,zz1)in(zz1,zz2)"), true);
+        told("type", named, 0, "int * (int * int)", 20);
         // Programs with many types, one behind the other.
         String many = "val y=(" + times("nil,", 29) + "nil)in(" + times("y;", 780) + "y)";
         House types = new House();
@@ -294,6 +308,17 @@ public final class FaceTest extends Houses {
             same("output", counts.seen(4), 8);
             same("by few steps", counts.run((how + 1) % 3, 5, 64), 2);
             same("by a small heap", counts.run((how + 2) % 3, 100, 16), 0);
+        }
+        // A handle that was open when a run was ended is so no more.
+        House handles = fresh("in ((while many () = 0 do ()) handle _ => (); (put 1; 1 div 0))");
+        for (int n = 0; n < 6; n++) {
+            for (int how : hows()) {
+                same("ended in a handle", handles.run(how, 50, 16), 2);
+                handles.give(1);
+                same("raised", handles.run((how + n) % 3, 50, 16), 1);
+                same("tell", handles.tell(1), 3);
+                handles.take();
+            }
         }
         ends();
     }

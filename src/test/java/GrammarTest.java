@@ -320,6 +320,10 @@ public final class GrammarTest extends Houses {
         value("in 1 + 2 :: 3 * 4 :: []", "[3, 12]");
         value("in (1 + 2 = 3, 4 < 2 * 3, 1 <> 1 - 1, 6 >= 2 + 3, 5 <= 2 + 2, 7 > 3 + 3)", "(true, true, true, true, false, true)");
         fault(TYPE, "in 1 :: [] \u00a7= []");
+        fault(TYPE, "in 1 \u00a7= 2 :: []");
+        fault(TYPE, "in 1 \u00a7< 2 :: 3 :: []");
+        fault(TYPE, "in true \u00a7andalso true :: []");
+        fault(TYPE, "in (1 \u00a7:: 2 = 3)");
         value("val b = ref true in (b := 1 = 2; !b)", "false");
         value("val l = ref [1] in (l := 2 :: [3]; !l)", "[2, 3]");
         type("in ref 1 := 2 : unit", "unit");

@@ -242,6 +242,7 @@ public final class HeapTest extends Houses {
                 told("value of " + text, house, 1, due[k], 18);
             }
         }
+        movedFunctions();
         String both = "val a = ref 1 val b = (a, a) val c = fn x => a := x val i = ref 0 in "
             + "(while !i < 100 do (" + tuple(5) + "; i := !i + 1); c 5; case b of (x, y) => (x := !x + 1; (!a, !x, !y)))";
         House house = program(both, 3 * 20);
@@ -250,6 +251,36 @@ public final class HeapTest extends Houses {
             same("end of " + both, house.run(how, STEPS_MOST, 18), 0);
             told("value of " + both, house, 1, "(6, 6, 6)", 12);
         }
+    }
+
+    private static void movedTo(String decs, String exp, String due) {
+        String text = decs + " val i = ref 0 fun waste 0 = () | waste n = (" + tuple(6) + "; waste (n - 1)) in (waste 100; " + exp + ")";
+        House house = program(text, 3 * 24);
+        if (house == null) return;
+        for (int how : hows()) {
+            same("end of " + text, house.run(how, STEPS_MOST, 44), 0);
+            same("collections of " + text, house.seen(1) > 10, true);
+            told("value of " + text, house, 1, due, 20);
+        }
+    }
+
+    /** Functions, and what they have in them, through collections. */
+    private static void movedFunctions() {
+        movedTo("fun h a b c d = [a, b, c, d] val v = h 1 2 3", "v 4", "[1, 2, 3, 4]");
+        movedTo("fun h a b c = [a, b, c] val v = h 1 val w = v 2", "(w 3; w 4)", "[1, 2, 4]");
+        movedTo("val x = 5 fun h a b = (a, b, x) val v = h \"ab\" val w = h \"c\"", "(v 1, w 2)", "((\"ab\", 1, 5), (\"c\", 2, 5))");
+        movedTo("fun f 0 = 7 | f n = g (n - 1) and g 0 = 8 | g n = f (n - 1)", "(f 3, g 3, f 4)", "(8, 7, 7)");
+        movedTo("val x = (1, 2) val rec f = fn 0 => x | n => f (n - 1)", "f 3", "(1, 2)");
+        movedTo("val x = ref 1 fun f n = (x := n; fn m => (x, m))", "f 3 4", "(ref 3, 4)");
+        movedTo("fun f x y = let fun g z = (x, y, z) in g end val a = f \"p\" val b = a \"q\"", "b \"r\"", "(\"p\", \"q\", \"r\")");
+        // With calls and handles open, one in another: what they have on the pile are no values.
+        ends("fun f 0 = 0 | f n = (" + tuple(9) + "; 1 + f (n - 1)) in f 30", 999, 16, "0 60 29 12 " + (1 + 29 * 6 + 5 + 9));
+        String waste = "fun waste 0 = 0 | waste n = (" + tuple(9) + "; waste (n - 1)) ";
+        value(waste + "in ((waste 500; raise Div) handle Match => 1) handle Div => waste 500 + 5", "5");
+        value(waste + "fun f 0 = (waste 500; raise Div) | f n = (f (n - 1) handle Match => 1) + 1 in f 20 handle Div => 6", "6");
+        value(waste + "fun f 0 = waste 500 | f n = (f (n - 1) handle Match => 1) + 1 in f 20", "20");
+        value(waste + "fun f 0 = (waste 500; raise Div) | f n = (f (n - 1) handle Div => waste 500) + 1 in f 20", "20");
+        value(waste + "fun f 0 = nil | f n = (waste 20; n :: (waste 20; f (n - 1))) in f 12", "[12, 11, 10, 9, 8, 7, 6, 5, 4, 3, 2, 1]");
     }
 
     public static void main(String[] args) {

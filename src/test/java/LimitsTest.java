@@ -132,6 +132,18 @@ public final class LimitsTest extends Houses {
         good("in " + inside(38, "let val x = fn y => y val z = if true then 1 else 2 fun f x = raise Div in f 1 end"));
         good("in " + inside(38, "(fn x => 1, case 1 of _ => 1, 1 handle _ => 1)"));
         good("in " + times("(1) handle _ => ", 39) + "1");
+        String[] closed = {"(_)", "()", "[_]", "[]", "[_, _]", "(_ :: _)", "(_, 2)", "(_ : int list)", "nil", "~1"};
+        for (String pat : closed) {
+            good("fun f " + inside(38, times(pat + ", ", 29) + pat) + " = 1 in 1");
+            good("val " + inside(38, times(pat + ", ", 29) + pat) + " = raise Div in 1");
+        }
+        good("fun f " + inside(37, "(a as _, b as (_, _), c as d as _, e as _ :: _)") + " = 1 in 1");
+        good("fun f " + inside(36, "(a as _, b as (_, _), [c, d], [[e]], (g as [_]) :: _)") + " = 1 in 1");
+        good("in ((raise Div) : " + inside(38, "(int) * (bool) * (unit) * int list") + ")");
+        good("in ((raise Div) : " + inside(38, times("(int) * ", 29) + "(int)") + ")");
+        good("in " + inside(38, times("[[1], [], [2]]; ", 30) + "1"));
+        good("in " + inside(38, times("let val x = (1) in (x) end; ", 30) + "1"));
+        good("in " + inside(38, times("(raise Div; case 1 of x => x); ", 10) + "1"));
         // fun, val and a clause's = open nothing.
         good("in " + inside(38, "let fun f x = (1) in 1 end"));
         fault(MANY, "in " + inside(38, "let fun f x = (\u00a7(1)) in 1 end"));
@@ -269,6 +281,9 @@ public final class LimitsTest extends Houses {
         fault(MANY, vals(98) + "fun f y = y in fn z => fn \u00a7w => z");
         good(vals(98) + "val (y, z) = let val (a, b) = (1, 2) in (a, b) end in y");
         fault(MANY, vals(98) + "val (y, z) = let val (a, b) = (1, 2) val \u00a7c = 3 in (a, b) end in y");
+        good(vals(98) + "val (y, z) = let val (a, b) = (fn (p, q) => 1, 2) in (a, b) end in 1");
+        fault(MANY, vals(98) + "val (y, z) = let val (a, b) = (fn (p, q, \u00a7r) => 1, 2) in (a, b) end in 1");
+        good(vals(98) + "val (y, z) = let val (a, b) = let val (c, d) = (fn (p, q) => 1, 2) in (c, d) end in (a, b) end in 1");
         good(vals(99) + "val y = (fn z => z) 1 in y");
         fault(MANY, vals(99) + "val y = (fn (z, \u00a7w) => z) (1, 2) in y");
         fault(MANY, vals(99) + "val y = 1 in fn \u00a7z => z");

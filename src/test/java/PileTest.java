@@ -71,6 +71,13 @@ public final class PileTest extends Houses {
         pile("fun f x = x in 1", 2);
         pile("fun f x = x and g x = x and h x = x in 1", 4);
         pile("in let fun f x = x and g x = x in 1 end + 2", 3);
+        pile("in let fun f x = x in 1 end + 2", 2);
+        pile("in let val rec f = fn x => x in 1 end + 2", 2);
+        pile("in let val _ = 1 in 2 end + 3", 2);
+        pile("in let val _ = 1 val _ = 2 in 3 end + 4", 3);
+        pile("in let in 1 end + 2", 2);
+        pile("in (let val _ = 1 in 2 end, let val _ = 1 in 2 end, let val _ = 1 in 2 end)", 4);
+        pile("in [not true, not true, not true, not true]", 5);
         pile("datatype t = A | B of int exception E in 1", 1);
         pile("in 1 handle _ => 2", 4);
         pile("in 1 + 2 handle _ => 2", 5);

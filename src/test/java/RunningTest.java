@@ -59,6 +59,52 @@ public final class RunningTest extends Houses {
         value("datatype t = A | B | C | D in case [A, B, C, D] of [D, _, _, _] => 1 | [_, C, _, _] => 2 | [_, _, _, D] => 3 | _ => 4", "3");
     }
 
+    /** Functions by fun and val rec, wherever they are declared, and what they are called with. */
+    private static void functions() {
+        value("val x = 5 val rec f = fn 0 => x | n => f (n - 1) + 1 in f 3", "8");
+        value("val x = 5 val y = 6 val rec f = fn z => z + y val rec g = fn z => f z + x in (g 1, f 2)", "(12, 8)");
+        value("fun g z = let val rec f = fn 0 => z | n => f (n - 1) + 1 in (f 3, f 4) end in (g 4, g 5)", "((7, 8), (8, 9))");
+        value("fun g z = let val w = z * 2 val rec f = fn x => x + w in f end val x = 1 in (g 4 5, g x 7)", "(13, 9)");
+        value("fun f x = x + 1 and g x = x * 2 and h x = x - 3 in (f 1, g 2, h 3)", "(2, 4, 0)");
+        value("val a = 10 fun f x = x + a and g x = f x * a and h x = g (f x) in (f 1, g 2, h 3, f 4)", "(11, 120, 230, 14)");
+        value("in let val a = 1 fun f x = g x + a and g 0 = 0 | g x = f (x - 1) in (f 3, g 3) end", "(4, 3)");
+        value("fun k z = let fun f x = x + z and g y = f y * 2 in (f, g) end in case (k 1, k 10) of ((f, g), (h, i)) => (f 1, g 1, h 1, i 1)", "(2, 4, 11, 22)");
+        value("fun f x = let val y = x + 1 in fn z => let val w = y * z in fn v => (x, y, z, w, v) end end in f 1 3 5", "(1, 2, 3, 6, 5)");
+        value("val a = 1 val b = 2 val c = 3 in (fn x => fn y => (c, fn z => (b, a, z, y, x))) 4 5", "(3, fn)");
+        value("val a = 1 val b = 2 val c = 3 in case (fn x => fn y => (c, fn z => (b, a, z, y, x))) 4 5 of (p, f) => f p", "(2, 1, 3, 5, 4)");
+        value("fun f a b c d = (d, c, b, a) val g = f 1 val h = g 2 val i = h 3 in (i 4, h 5 6, g 7 8 9)", "((4, 3, 2, 1), (6, 5, 2, 1), (9, 8, 7, 1))");
+        value("val p = 100 fun f a b c = if a = 0 then (p, b, c) else f (a - 1) c (b + p) in f 3 1 2", "(100, 102, 201)");
+        value("val p = 7 fun f a b = g (a + b) p and g a b = if a > 20 then a * b else f a b in f 1 2", "168");
+        value("val f = fn (x, y) => x - y in (f (5, 3), f (3, 5))", "(2, ~2)");
+        value("in (fn print => print + 1) 2", "3");
+        value("val put = fn x => x + 1 in put 4", "5");
+        // What is known ahead takes its two words off and puts one there, whatever is below.
+        value("in (1, ~ (1 + 1), not true, size \"ab\", str 3, chr 65, sub (\"ab\", 1), many (), !(ref 5), ref 6, print \"\", 7)",
+            "(1, ~2, false, 2, \"3\", \"A\", 98, 0, 5, ref 6, (), 7)");
+        value("in (3 + ~ (1 + 1), 3 - size \"ab\", \"a\" ^ str 5 ^ chr 66, 10 + !(ref 5), 1 + sub (\"ab\", 0) * 2)", "(1, 1, \"a5B\", 15, 195)");
+        value("datatype t = A of int | B of t in [A 1, B (A 2), A (1 + 2)]", "[A 1, B (A 2), A 3]");
+    }
+
+    /** Patterns in one another: each part is looked at where it is. */
+    private static void nestedPatterns() {
+        value("in case ((1, 2), (3, (4, 5), 6), 7) of ((a, b), (c, (d, e), f), g) => [a, b, c, d, e, f, g]", "[1, 2, 3, 4, 5, 6, 7]");
+        value("in case ([1, 2], [3, 4, 5]) of ([a, b], c :: d :: e) => (a, b, c, d, e) | _ => (0, 0, 0, 0, nil)", "(1, 2, 3, 4, [5])");
+        value("in case [(1, 2), (3, 4)] of [(a, b), (c, d)] => a + 10 * b + 100 * c + 1000 * d | _ => 0", "4321");
+        value("in case [[1, 2], [3]] of (a :: b) :: c :: nil => (a, b, c) | _ => (0, nil, nil)", "(1, [2], [3])");
+        value("in case [[1, 2], [3], []] of [[a, b], [c], []] => (a, b, c) | _ => (0, 0, 0)", "(1, 2, 3)");
+        String ahead = "datatype t = A of int * t * int list | B of t | C ";
+        value(ahead + "in case A (1, B (A (2, C, [3])), [4, 5]) of A (a, B (A (b, C, [c])), [d, e]) => [a, b, c, d, e] | _ => nil", "[1, 2, 3, 4, 5]");
+        value(ahead + "in case A (1, B (A (2, C, [3])), [4, 5]) of A (_, B (A (_, B _, _)), _) => 1 | A (_, B C, _) => 2 | A (_, B (A (x, C, _)), y :: _) => x + y | _ => 4", "6");
+        value("in case ((1, 2), [3, 4]) of (x as (a, b), y as c :: (z as [d])) => (x, a, b, y, c, z, d) | _ => ((0, 0), 0, 0, nil, 0, nil, 0)",
+            "((1, 2), 1, 2, [3, 4], 3, [4], 4)");
+        value("fun f (a, b) [c, d] (e :: g) = (a, b, c, d, e, g) | f _ _ _ = (0, 0, 0, 0, 0, nil) in (f (1, 2) [3, 4] [5, 6], f (1, 2) [3] [4])",
+            "((1, 2, 3, 4, 5, [6]), (0, 0, 0, 0, 0, []))");
+        value("val ((a, b), [c, (d, e)]) = ((1, 2), [(3, 4), (5, 6)]) in (a, b, c, d, e)", "(1, 2, (3, 4), 5, 6)");
+        value("val (a, (b, c), d) = (1, (2, 3), 4) val [e, f] = [a, d] in (a, b, c, d, e, f)", "(1, 2, 3, 4, 1, 4)");
+        value("fun f ((1, x), _) = x | f ((_, 2), (y, _)) = y | f ((x, _), (_, y)) = x * y in (f ((1, 5), (6, 7)), f ((3, 2), (6, 7)), f ((3, 4), (6, 7)))", "(5, 6, 21)");
+        value("exception E of (int * int) * int list in (raise E ((1, 2), [3])) handle E ((x, 3), _) => x | E ((_, x), [y]) => x * 10 + y", "23");
+    }
+
     /** "int has 31 bits and wraps; div and mod are rounded down (mod has the divisor's sign)". */
     private static void numbers() {
         value("in 1073741823 + 1", "~1073741824");
@@ -197,6 +243,10 @@ public final class RunningTest extends Houses {
         value("fun f g = g () in f (fn () => (raise Div) handle _ => 5)", "5");
         value("val f = (fn x => raise Div) handle _ => fn x => 2 in (f 1) handle Div => 3", "3");
         value("val x = (raise Div) handle y => y in (raise x) handle Div => 7", "7");
+        value("in ((1 handle _ => 2) + (raise Div)) handle Div => 5", "5");
+        value("in (((1 handle _ => 2); (2 handle _ => 3); raise Div) handle Div => raise Match) handle Match => 6", "6");
+        value("fun f n = (if n = 0 then raise Div else f (n - 1) handle Match => 1) handle Bind => 2 in (f 5) handle Div => 7", "7");
+        value("fun f 0 = 0 | f n = (f (n - 1) handle Div => 100) + 1 in (f 5, (f 3; raise Div) handle Div => 8)", "(5, 8)");
         // The exceptions are what they are, whoever made them.
         value("exception E exception F in [(raise E) handle E => 1 | F => 2, (raise F) handle E => 1 | F => 2]", "[1, 2]");
         value("exception E of int in (raise E 1) handle E 2 => 20 | E x => x + 30", "31");
@@ -395,6 +445,8 @@ public final class RunningTest extends Houses {
     public static void main(String[] args) {
         order();
         values();
+        functions();
+        nestedPatterns();
         numbers();
         matches();
         raisers();

@@ -246,6 +246,13 @@ public final class TypesTest extends Houses {
         fault(TYPE, "fun f x \u00a7= (f, x) in 1");
         fault(TYPE, "fun f x = g and g y \u00a7= f in 1");
         fault(TYPE, AHEAD + "fun f x \u00a7= S f in 1");
+        fault(TYPE, "in fn x => [(1, x), \u00a7(1, [x])]");
+        fault(TYPE, "in fn x => [(x, 1), \u00a7([x], 1)]");
+        fault(TYPE, "in fn x => [(1, (x, 2)), \u00a7(1, (ref x, 2))]");
+        fault(TYPE, "in fn x => fn y => [(1, x, y), \u00a7(1, [y], [x])]");
+        fault(TYPE, "in fn x => case (x, [x]) of (a, b) => [a, \u00a7b]");
+        fault(TYPE, "in fn x => case (1, x, ref (x, 2)) of (_, a, b) => (b \u00a7:= (b, 3))");
+        fault(TYPE, "in fn x => case [(x, [x], [[x]])] of [(a, b, c)] => (a \u00a7:: c)");
         fault(TYPE, "in fn x => case x of y :: z => y | w => \u00a7w");
         fault(TYPE, "in fn (x, y, z) => ([x, [y]], [y, [z]], [z, \u00a7[x]])");
         good("datatype t = T of t -> t in fn T x => x (T x)");
@@ -257,6 +264,14 @@ public final class TypesTest extends Houses {
         type("in fn (x : 'a, y : 'a) => 1", "'a * 'a -> int");
         type("in (fn (x : 'a) => x + 1, fn (y : 'a) => y)", "(int -> int) * (int -> int)");
         type("val f = fn (x : 'a) => x val g = fn (x : 'a) => x + 1 in (f, g)", "('a -> 'a) * (int -> int)");
+        type("val r = ref (nil : 'a list) val g = fn (x : 'a) => x + 1 in r", "'a list ref");
+        type("val r = ref (nil : 'a list) val rec g = fn (x : 'a) => x + 1 in r", "'a list ref");
+        type("val r = ref (nil : 'a list) fun g (x : 'a) = x + 1 in r", "'a list ref");
+        type("val r = ref (nil : 'a list); in (r, fn (x : 'a) => x + 1)", "'a list ref * (int -> int)");
+        type("val x = let val r = ref (nil : 'a list) fun f (x : 'a) = x + 1 in r end in x", "int list ref");
+        type("val x = let val r = ref (nil : 'a list) val rec f = fn (x : 'a) => x + 1 in r end in x", "int list ref");
+        fault(TYPE, "val rec f = fn x => let fun g (y : 'a) = y in (g 1, g \u00a7true) end in f");
+        fault(TYPE, "fun f x = let val rec g = fn (y : 'a) => y in (g 1, g \u00a7true) end in f");
         type("fun f (x : 'a) = x and g (y : 'a) = y + 1 in f", "int -> int");
         type("fun f (x : 'a) : 'b = x in f", "'a -> 'a");
         type("fun f (x : 'a) = let fun g (y : 'a) = y in g x end in (f 1, f true)", "int * bool");
@@ -303,6 +318,18 @@ public final class TypesTest extends Houses {
         type("val r = ref nil val x = r := [1] in r", "int list ref");
         fault(TYPE, "in case fn x => x of f => (f 1, f \u00a7true)");
         fault(TYPE, "in (fn f => (f 1, f \u00a7true)) (fn x => x)");
+        // What a type that can be seen around comes to have in it is not general, however deep it stands there.
+        fault(TYPE, "in fn x => let fun f z = [x, [z]] in (f 1, f \u00a7true) end");
+        fault(TYPE, "in fn x => let val f = fn z => (x := (1, [z]); z) in (f 1, f \u00a7true) end");
+        type("in fn x => let fun f z = [x, [z]] in f end", "'a list -> 'a -> 'a list list");
+        fault(TYPE, "in fn x => let val rec f = fn z => [x, z] in (f 1, f \u00a7true) end");
+        type("in fn x => let val rec f = fn z => (x, z) in (f 1, f true) end", "'a -> ('a * int) * ('a * bool)");
+        // What is not VALUED stays so for all that comes behind it.
+        fault(TYPE, "val r = ref nil fun f x = (r := [x]; x) in (f 1, f \u00a7true)");
+        fault(TYPE, "val r = ref nil val s = r in (s := [1]; s \u00a7:= [true])");
+        fault(TYPE, "val r = ref nil val f = fn x => (r := [x]; x) val g = fn x => f x in (g 1, g \u00a7true)");
+        fault(TYPE, "in let val r = ref nil fun f x = (r := [x]; x) in (f 1, f \u00a7true) end");
+        type("val r = ref nil fun f x = (r := [x]; x) in f", "'a -> 'a");
         // Constructors and functions known ahead have new types each time.
         type(AHEAD + "in (S 1, S true, N, N)", "int o * bool o * 'a o * 'b o");
         type(AHEAD + "in (L 1, R 1)", "(int, 'a) e * ('b, int) e");
