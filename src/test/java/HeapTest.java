@@ -203,6 +203,10 @@ public final class HeapTest extends Houses {
             + "val f = (a, b, c, d, e, e) in (" + tuple(6) + "; 7)";
         ends(shared, 50, 28, "3 3 1 22 18");
         ends(shared, 50, 29, "0 2 0 29 18");
+        // A function that waits for more arguments is no greater behind a collection than ahead of it.
+        ends("fun f x y = x val g = f 1 in (" + tuple(9) + "; " + tuple(9) + ")", 9, 16, "0 2 1 15 12");
+        ends("fun f x y z = x val g = f 1 2 in (" + tuple(9) + "; " + tuple(9) + ")", 9, 22, "0 3 1 16 12");
+        ends("fun f x y = (f x; x) val g = f 1 in (" + tuple(9) + "; " + tuple(9) + ")", 9, 20, "0 2 1 16 12");
         // What waits on the pile stays till it is taken off.
         ends("in (" + tuple(4) + ", " + tuple(4) + ", " + tuple(4) + ")", 5, 18, "3 1 1 15 6");
         ends("in (" + tuple(4) + ", " + tuple(4) + ", " + tuple(4) + ")", 5, 19, "0 0 0 19 6");

@@ -76,6 +76,14 @@ public final class RunningTest extends Houses {
         value("val p = 100 fun f a b c = if a = 0 then (p, b, c) else f (a - 1) c (b + p) in f 3 1 2", "(100, 102, 201)");
         value("val p = 7 fun f a b = g (a + b) p and g a b = if a > 20 then a * b else f a b in f 1 2", "168");
         value("val f = fn (x, y) => x - y in (f (5, 3), f (3, 5))", "(2, ~2)");
+        value("val a = 1 val b = 2 val c = 3 val d = 4 val e = 5 val f = 6 val g = 7 fun h x = (a, b, c, d, e, f, g, x) in h 8", "(1, 2, 3, 4, 5, 6, 7, 8)");
+        value("val a = 1 val b = 2 val c = 3 val d = 4 val e = 5 val f = 6 val g = 7 fun h x = fn y => (g, f, e, d, c, b, a, x, y) in h 8 9",
+            "(7, 6, 5, 4, 3, 2, 1, 8, 9)");
+        value("val a = 1 val b = 2 val c = 3 val d = 4 val e = 5 val f = 6 fun h x y z = (a, b, c, d, e, f, x, y, z) in h 7 8 9", "(1, 2, 3, 4, 5, 6, 7, 8, 9)");
+        value("fun f a b c d e g h = (h, g, e, d, c, b, a) in f 1 2 3 4 5 6 7", "(7, 6, 5, 4, 3, 2, 1)");
+        value("val a = 1 val b = 2 val c = 3 val d = 4 fun f x = (a; b; c; d; g x) and g 0 = (d, c, b, a) | g x = f (x - 1) in (f 1, g 2)",
+            "((4, 3, 2, 1), (4, 3, 2, 1))");
+        value("fun f a b c d e = let fun g x = (a, b, x) and h x = (c, d, e, x) and i x = (g x, h x) in i end in f 1 2 3 4 5 6", "((1, 2, 6), (3, 4, 5, 6))");
         value("in (fn print => print + 1) 2", "3");
         value("val put = fn x => x + 1 in put 4", "5");
         // What is known ahead takes its two words off and puts one there, whatever is below.
@@ -88,6 +96,8 @@ public final class RunningTest extends Houses {
     /** Patterns in one another: each part is looked at where it is. */
     private static void nestedPatterns() {
         value("in case ((1, 2), (3, (4, 5), 6), 7) of ((a, b), (c, (d, e), f), g) => [a, b, c, d, e, f, g]", "[1, 2, 3, 4, 5, 6, 7]");
+        value("in case (1, 2, 3, 4, 5, 6, 7, 8, 9, 10, 11, 12) of (a, b, c, d, e, f, g, h, i, j, k, l) => [l, k, j, i, h, g, f, e, d, c, b, a]",
+            "[12, 11, 10, 9, 8, 7, 6, 5, 4, 3, 2, 1]");
         value("in case ([1, 2], [3, 4, 5]) of ([a, b], c :: d :: e) => (a, b, c, d, e) | _ => (0, 0, 0, 0, nil)", "(1, 2, 3, 4, [5])");
         value("in case [(1, 2), (3, 4)] of [(a, b), (c, d)] => a + 10 * b + 100 * c + 1000 * d | _ => 0", "4321");
         value("in case [[1, 2], [3]] of (a :: b) :: c :: nil => (a, b, c) | _ => (0, nil, nil)", "(1, [2], [3])");
