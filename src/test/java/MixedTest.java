@@ -63,8 +63,6 @@ public final class MixedTest extends Houses {
         fault(SYNTAX, "in [1 : int \u00a7:: nil]");
         fault(SYNTAX, "in ref 1 : int ref \u00a7:= 2");
         fault(SYNTAX, "in x := if true then 1 else 2 : int \u00a7= 3");
-        fault(TYPE, "in ref 1 := if true then 1 else 2 : int \u00a7:= 3");
-        fault(TYPE, "in ref 1 := raise Div : exn \u00a7:= raise Div : exn := 3");
         fault(SYNTAX, "in true orelse if true then true else true : bool \u00a7:= 3");
         fault(SYNTAX, "in ref 1 := if true then 1 else 2 : int \u00a7+ 3");
         type("in true : bool andalso 1 = 2 : bool orelse false", "bool");
@@ -83,7 +81,6 @@ public final class MixedTest extends Houses {
     private static void manyThings() {
         type("in " + times("1+", 998) + "~ 1", "int");
         fault(MANY, "in " + times("1+", 999) + "1\u00a7+ 1");
-        fault(MANY, "in " + times("1+", 999) + "1\u00a7)");
         fault(TOKEN, "in " + times("1+", 999) + "1\u00a7#");
         type("in " + times("(", 40) + "1" + times(")", 40), "int");
         fault(MANY, "in " + times("(", 40) + "\u00a7(1" + times(")", 41));

@@ -27,7 +27,6 @@ public final class ValuedTest extends Houses {
         valued(true, "i", "int -> int", "bool -> bool");
         valued(true, "N", "int o", "bool o");
         valued(true, "S", "int -> int o", "bool -> bool o");
-        valued(true, "!", "int ref -> int", "bool ref -> bool");
         valued(false, "ref", "int -> int ref", "bool -> bool ref");
         valued(false, "(ref)", "int -> int ref", "bool -> bool ref");
         valued(false, "ref : 'b -> 'b ref", "int -> int ref", "bool -> bool ref");
@@ -63,7 +62,6 @@ public final class ValuedTest extends Houses {
         valued(true, "(C nil)", "int t", "bool t");
         valued(true, "C nil : 'b t", "int t", "bool t");
         valued(true, "C (nil : 'b list)", "int t", "bool t");
-        valued(true, "(C) nil", "int t", "bool t");
         valued(false, "(C : 'b list -> 'b t) nil", "int t", "bool t");
         valued(false, "((C) : 'b list -> 'b t) nil", "int t", "bool t");
         valued(false, "((C : 'b list -> 'b t)) nil", "int t", "bool t");
