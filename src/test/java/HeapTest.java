@@ -165,6 +165,11 @@ public final class HeapTest extends Houses {
         ends("val a = " + tuple(11) + " in 1 :: nil", 5, 16, "3 1 1 12 11");
         ends("val a = " + tuple(14) + " in [1]", 5, 16, "3 1 1 15 14");
         ends("in [1, 2, 3]", 5, 16, "0 0 0 15 4");
+        // "a list's elements first, then it is put together from the last one on".
+        ends("in [" + tuple(4) + ", " + tuple(4) + "]", 5, 16, "3 1 1 15 5");
+        ends("in [" + tuple(4) + ", " + tuple(4) + "]", 5, 20, "0 0 0 20 5");
+        ends("in " + tuple(4) + " :: " + tuple(4) + " :: nil", 5, 16, "3 1 1 15 5");
+        ends("in [" + tuple(4) + ", (" + tuple(6) + "; (3, 4, 5, 6))]", 5, 20, "0 1 1 20 7");
         ends("in [1, 2, 3, 4]", 5, 16, "3 1 1 15 5");
         // "Functions of one fun are made at once."
         ends("val a = " + tuple(11) + " fun f x = 1 and g x = 2 in 1", 5, 16, "0 0 0 16 11");

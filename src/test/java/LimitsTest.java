@@ -333,6 +333,9 @@ public final class LimitsTest extends Houses {
         good("fun f () = (" + row("nil", ", ", 30) + ") in 1");
         // x -> result: 'a, -> and the result's.
         good("fun f x = ((" + row("nil", ", ", 29) + "), (" + row("nil", ", ", 18) + ")) in 1");
+        good("fun f x = ((" + row("nil", ", ", 29) + "), (" + row("nil", ", ", 18) + "), 1) in 1");
+        good("fun f x = ((" + row("nil", ", ", 29) + "), (" + row("nil", ", ", 16) + "), x, x, fn y => 1) in 1");
+        fault(MANY, "fun \u00a7f x = ((" + row("nil", ", ", 29) + "), (" + row("nil", ", ", 16) + "), x, x, fn y => y, 1) in 1");
         fault(MANY, "fun \u00a7f x = ((" + row("nil", ", ", 29) + "), (" + row("nil", ", ", 18) + "), 1, 2) in 1");
         fault(MANY, "val rec \u00a7f = fn x => ((" + row("nil", ", ", 29) + "), (" + row("nil", ", ", 18) + "), 1, 2) in 1");
         fault(MANY, "val (a, \u00a7b) = (nil, " + nested + "nil)) in 1");
