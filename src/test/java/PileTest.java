@@ -127,26 +127,33 @@ public final class PileTest extends Houses {
         pile("fun f x y z = 1 in f 1 2 3", 1 + 4 + 3 + 1);
         pile("fun f _ _ _ = 1 in f 1 2 3", 1 + 4 + 1);
         pile("fun f (a, b) (c, d) = 1 in f (1, 2) (3, 4)", 1 + 4 + 4 + 1);
-        pile("fun f a as1 = 1 in f 1 (2 + (3 + (4 + 5)))", 1 + 1 + 2 + 2 + 2);
+        pile("fun f x y = 1 in f 1 (2 + (3 + (4 + 5)))", 1 + 4 + 2 + 1);
+        pile("fun f x y = 1 in f 1 (2 + (3 + (4 + (5 + (6 + (7 + 8))))))", 1 + 1 + 7);
         pile("fun f 1 x = 1 | f y z = 2 in f 2 3", 1 + 4 + 2 + 1);
         pile("fun f" + times(" _", 12) + " = 1 in f" + times(" 1", 12), 6);
         pile("fun f a b c d e g h i j k l m = 1 in f" + times(" 1", 12), 1 + 4 + 12 + 1);
     }
 
-    /** A function that calls itself a hundred times from a body: whether the pile stays as it was, or grows. */
+    /** A function that calls itself from its body, ten times and sixty times: whether the pile stays as it was, or grows. */
     private static void tail(boolean is, String body) {
         String text = "val r = ref 0 fun same x = x fun f n = " + body + " in (f ";
-        House house = program(text + "10; ())", 6);
-        if (house == null) return;
+        int few = greatest(text + "10; ())");
+        int many = greatest(text + "60; ())");
+        same("pile stays in " + body + ": " + few + " and " + many, many == few, is);
+    }
+
+    /** The greatest pile, which is the same by all three ways. */
+    private static int greatest(String text) {
+        House house = program(text, 9);
+        if (house == null) return -1;
+        int one = -1;
         for (int how : hows()) {
-            same("end of " + text, house.run(how, STEPS_MOST, HEAP_MOST), 0);
-            int few = house.seen(3);
-            House other = program(text + "60; ())", 6);
-            if (other == null) return;
-            other.run(how, STEPS_MOST, HEAP_MOST);
-            same("pile, how " + how + ", stays in " + body, other.seen(3) == few, is);
-            house = program(text + "10; ())", 12);
+            same("end, how " + how + ", of " + text, house.run(how, STEPS_MOST, HEAP_MOST), 0);
+            int other = house.seen(3);
+            if (one >= 0) same("pile, how " + how + ", of " + text, other, one);
+            one = other;
         }
+        return one;
     }
 
     /** "A call in TAIL position (the body of a fn or clause; then so branches of if, rules of case and handle, ..)". */

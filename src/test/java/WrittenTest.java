@@ -80,14 +80,12 @@ public final class WrittenTest extends Houses {
     /** "From the 21st of tuples, lists that are not empty, constructors and exceptions with argument and refs in one another on, #". */
     private static void nested() {
         for (int n = 18; n <= 22; n++) {
-            String cut = n > 20 ? "#" : null;
             int shown = Math.min(n, 20);
             written(times("(0, ", n) + "1" + times(")", n), times("(0, ", shown) + (n > 20 ? "#" : "1") + times(")", shown));
             written(times("[", n) + "1" + times("]", n), times("[", shown) + (n > 20 ? "#" : "1") + times("]", shown));
             String ones = times("S (", shown - 1) + "S " + (n > 20 ? "#" : "1") + times(")", shown - 1);
             written(times("S (", n) + "1" + times(")", n), ones);
             written(times("ref (", n) + "1" + times(")", n), ones.replace("S", "ref"));
-            same("cut", cut == null, n <= 20);
         }
         String[] leaves = {"1", "true", "()", "nil", "N", "Div", "\"abc\"", "print", "S", "fn x => x"};
         String[] due = {"1", "true", "()", "[]", "N", "Div", "\"abc\"", "fn", "fn", "fn"};
