@@ -363,38 +363,6 @@ public final class ModelTest extends Houses {
         return s + "in " + exp.text();
     }
 
-    /** What the model says of a program: end, steps, collections, words, pile, bytes put out; then the output; then the value. */
-    private static String[] byModel(List<Tree.Dec> decs, Tree exp, int steps, int heap) {
-        Model m = new Model(steps, heap, INPUT);
-        int end;
-        String value = "";
-        try {
-            Model.Env env = Model.Env.NOTHING;
-            for (Tree.Dec d : decs) env = d.declare(m, env);
-            exp.eval(m, env, -1, false);
-            end = 0;
-            value = Model.written(m.pile.get(m.pile.size() - 1));
-        } catch (Model.Raised r) {
-            end = 1;
-            value = Model.written(r.value);
-        } catch (Model.End e) {
-            end = e.how;
-        }
-        String seen = end + " " + m.steps + " " + m.collections + " " + m.used + " " + m.pileMost + " " + m.output.length();
-        return new String[] {seen, m.output.length() > 2000 ? m.output.substring(0, 2000) : m.output.toString(), value};
-    }
-
-    private static void compared(String text, House house, int how, int steps, int heap, String[] due) {
-        String about = "how " + how + ", steps " + steps + ", heap " + heap + " of\n" + text + "\n";
-        StringBuilder s = new StringBuilder();
-        int end = house.run(how, steps, heap);
-        s.append(end);
-        for (int k = 0; k < 5; k++) s.append(' ').append(house.seen(k));
-        same(about, s.toString(), due[0]);
-        output(about, house, due[1], 8);
-        if (end < 2) told(about, house, 1, due[2], 12);
-    }
-
     private static int[] ends = new int[5];
     private static int unread;
     private static int collected;
@@ -420,10 +388,10 @@ public final class ModelTest extends Houses {
         int[] heaps = {20 + maker.below(30), 40 + maker.below(60), HEAP_MOST};
         int[] steps = {1 + maker.below(40), 100 + maker.below(300), STEPS_MOST};
         for (int k = 0; k < 3; k++) {
-            String[] due = byModel(decs, exp, steps[k], heaps[k]);
+            String[] due = Model.comesTo(decs, exp, steps[k], heaps[k], INPUT);
             ends[due[0].charAt(0) - '0']++;
             if (!due[0].split(" ")[2].equals("0")) collected++;
-            for (int how : hows()) compared(text, house, how, steps[k], heaps[k], due);
+            for (int how : hows()) asByModel(text, house, how, steps[k], heaps[k], due);
         }
     }
 

@@ -211,4 +211,16 @@ class Houses {
             same("end, how " + how + ", of " + brief(text), s.toString(), due);
         }
     }
+
+    /** A run, by one of the ways, of a program that was read, held against what is due by the model: 28 calls at most. */
+    static void asByModel(String text, House house, int how, int steps, int heap, String[] due) {
+        String about = "how " + how + ", steps " + steps + ", heap " + heap + " of\n" + text + "\n";
+        StringBuilder s = new StringBuilder();
+        int end = house.run(how, steps, heap);
+        s.append(end);
+        for (int k = 0; k < 5; k++) s.append(' ').append(house.seen(k));
+        same(about, s.toString(), due[0]);
+        output(about, house, due[1], 8);
+        if (end < 2) told(about, house, 1, due[2], 12);
+    }
 }

@@ -93,6 +93,27 @@ final class Model {
         this.input = input;
     }
 
+    /** What is due of a program: end, steps, collections, words, pile, bytes put out; then the output; then the value. */
+    static String[] comesTo(List<Tree.Dec> decs, Tree exp, int steps, int heap, int[] input) {
+        Model m = new Model(steps, heap, input);
+        int end;
+        String value = "";
+        try {
+            Env env = Env.NOTHING;
+            for (Tree.Dec d : decs) env = d.declare(m, env);
+            exp.eval(m, env, -1, false);
+            end = 0;
+            value = written(m.pile.get(m.pile.size() - 1));
+        } catch (Raised r) {
+            end = 1;
+            value = written(r.value);
+        } catch (End e) {
+            end = e.how;
+        }
+        String seen = end + " " + m.steps + " " + m.collections + " " + m.used + " " + m.pileMost + " " + m.output.length();
+        return new String[] {seen, m.output.length() > 2000 ? m.output.substring(0, 2000) : m.output.toString(), value};
+    }
+
     void step() {
         if (steps == stepsMost) throw new End(STEPS_END);
         steps++;
